@@ -1,0 +1,1869 @@
+import java.util.Arrays;
+import java.util.NoSuchElementException;
+
+/** Processes that are only what one can see of them: see README.md for how to use it. */
+public final class ObservantYard {
+    private static final int MOST_AGENTS = 16;
+    private static final int MOST_BRANCHES = 6;
+    private static final int MOST_SYSTEMS = 6;
+    private static final int MOST_PARTS = 3;
+    private static final int MOST_STATES = 150;
+    private static final int MOST_OF_BOTH = 600;
+    private static final int MOST_FORMULAS = 40;
+    private static final int MOST_DEPTH = 8;
+    private static final int MOST_TO_CHECK = 24;
+    private static final int LONGEST_ROW = 5;
+
+    private static final int NAMES = 4;
+    /** As a channel or a value: the name that is kept. */
+    private static final int KEPT = 4;
+
+    /** Labels are held as slots in the same order: 0 silent, 1 to 16 sending, 17 to 32 receiving. */
+    private static final int SLOTS = 33;
+    private static final int FIRST_SENDING = 1;
+    private static final int FIRST_RECEIVING = 17;
+    private static final int SLOTS_OF_A_KIND = 16;
+
+    /** The most that three parts of six branches have: one only sends, two receive any name. */
+    private static final int MOST_STEPS = 126;
+
+    /** Two graphs side by side, and the words that hold a bit for each of their states. */
+    private static final int MOST_SIDE_BY_SIDE = 2 * MOST_STATES;
+    private static final int WIDE_WORDS = 5;
+    private static final int STATE_WORDS = 3;
+    private static final int BOTH_WORDS = 10;
+
+    private static final int NO_LABEL = -1;
+    private static final long MIX = 0x9E3779B97F4A7C15L;
+
+    private final Equations equations;
+    private final Network[] networks;
+    private final Builder builder;
+    private final Arena arena;
+    private final Refiner refiner;
+    private final TraceWalk traceWalk;
+    private final PairGame pairGame;
+    private final FormulaBook formulas;
+    private final Bench bench;
+    private int networkCount;
+
+    public ObservantYard() {
+        equations = new Equations();
+        networks = new Network[MOST_SYSTEMS];
+        builder = new Builder(equations);
+        arena = new Arena();
+        refiner = new Refiner(arena);
+        traceWalk = new TraceWalk(arena, refiner);
+        pairGame = new PairGame();
+        formulas = new FormulaBook();
+        bench = new Bench();
+    }
+
+    // ---- equations
+
+    public int addAgent() throws IllegalStateException {
+        if (equations.agentCount >= MOST_AGENTS) {
+            throw new IllegalStateException("there are 16 agents");
+        }
+        return equations.newAgent();
+    }
+
+    public int addBranch(int agent, char kind, int channel, int value, int next)
+            throws IndexOutOfBoundsException, IllegalArgumentException, IllegalStateException {
+        needAgent(agent);
+        needAgent(next);
+        if (kind != 't' && kind != 'e' && kind != 'o' && kind != 'i') {
+            throw new IllegalArgumentException("no such kind of branch");
+        }
+        if (channel < 0 || channel > KEPT || value < 0 || value > KEPT) {
+            throw new IllegalArgumentException("a channel or a value is from 0 to 4");
+        }
+        if (equations.branchCounts[agent] >= MOST_BRANCHES) {
+            throw new IllegalStateException("the agent has 6 branches");
+        }
+        forgetGraphs();
+        return equations.newBranch(agent, kind, channel, value, next);
+    }
+
+    public int dropBranch(int agent, int branch) throws IndexOutOfBoundsException {
+        needBranch(agent, branch);
+        forgetGraphs();
+        return equations.takeAway(agent, branch);
+    }
+
+    public int lead(int agent, int branch, int next) throws IndexOutOfBoundsException {
+        needBranch(agent, branch);
+        needAgent(next);
+        forgetGraphs();
+        return equations.leadTo(agent, branch, next);
+    }
+
+    public int countBranches(int agent) throws IndexOutOfBoundsException {
+        needAgent(agent);
+        return equations.branchCounts[agent];
+    }
+
+    // ---- systems
+
+    public int addSystem(int agent, int kept)
+            throws IndexOutOfBoundsException, IllegalArgumentException, IllegalStateException {
+        needAgent(agent);
+        needName(kept);
+        needRoomForSystem();
+        Network network = newNetwork();
+        network.begin(0, agent, kept);
+        network.partCount = 1;
+        return networkCount - 1;
+    }
+
+    public int addPart(int system, int agent, int kept)
+            throws IndexOutOfBoundsException, IllegalArgumentException, IllegalStateException {
+        needSystem(system);
+        needAgent(agent);
+        needName(kept);
+        Network network = networks[system];
+        if (network.partCount >= MOST_PARTS) {
+            throw new IllegalStateException("the system has 3 parts");
+        }
+        int part = network.partCount;
+        network.begin(part, agent, kept);
+        network.partCount = part + 1;
+        return part;
+    }
+
+    public int setPart(int system, int part, int agent, int kept)
+            throws IndexOutOfBoundsException, IllegalArgumentException {
+        needPart(system, part);
+        needAgent(agent);
+        needName(kept);
+        Network network = networks[system];
+        int agentBefore = network.agents[part];
+        network.begin(part, agent, kept);
+        return agentBefore;
+    }
+
+    public boolean hide(int system, int name, boolean isHidden)
+            throws IndexOutOfBoundsException, IllegalArgumentException {
+        needSystem(system);
+        needName(name);
+        Network network = networks[system];
+        boolean hiddenBefore = network.hidden[name];
+        if (hiddenBefore != isHidden) {
+            network.hidden[name] = isHidden;
+            network.isFresh = false;
+        }
+        return hiddenBefore;
+    }
+
+    public int copy(int system) throws IndexOutOfBoundsException, IllegalStateException {
+        needSystem(system);
+        needRoomForSystem();
+        newNetwork().takeOver(networks[system]);
+        return networkCount - 1;
+    }
+
+    public int countParts(int system) throws IndexOutOfBoundsException {
+        needSystem(system);
+        return networks[system].partCount;
+    }
+
+    // ---- graphs
+
+    public int countStates(int system) throws IndexOutOfBoundsException, ArithmeticException {
+        return fittingGraph(system).stateCount;
+    }
+
+    public int countSteps(int system, int state) throws IndexOutOfBoundsException, ArithmeticException {
+        needState(system, state);
+        return fittingGraph(system).width(state);
+    }
+
+    public int getLabel(int system, int state, int step)
+            throws IndexOutOfBoundsException, ArithmeticException, NoSuchElementException {
+        int place = placeOfStep(system, state, step);
+        return labelOf(fittingGraph(system).slotAt(place));
+    }
+
+    public int getTarget(int system, int state, int step)
+            throws IndexOutOfBoundsException, ArithmeticException, NoSuchElementException {
+        int place = placeOfStep(system, state, step);
+        return fittingGraph(system).targetAt(place);
+    }
+
+    public int getAgent(int system, int state, int part) throws IndexOutOfBoundsException, ArithmeticException {
+        return partIn(system, state, part) >> 2;
+    }
+
+    public int getKept(int system, int state, int part) throws IndexOutOfBoundsException, ArithmeticException {
+        return partIn(system, state, part) & 3;
+    }
+
+    public int countStuck(int system) throws IndexOutOfBoundsException, ArithmeticException {
+        return fittingGraph(system).stuckStates();
+    }
+
+    public boolean canChatter(int system) throws IndexOutOfBoundsException, ArithmeticException {
+        return fittingGraph(system).chatters();
+    }
+
+    public boolean canShow(int system, int label)
+            throws IndexOutOfBoundsException, IllegalArgumentException, ArithmeticException {
+        needSystem(system);
+        int slot = neededSlot(label);
+        return fittingGraph(system).stepsWith(slot) > 0;
+    }
+
+    public int stepsToStuck(int system) throws IndexOutOfBoundsException, ArithmeticException {
+        return fittingGraph(system).wayToStuck();
+    }
+
+    // ---- likeness and games
+
+    public boolean isAlike(int system, int other, char kind)
+            throws IndexOutOfBoundsException, IllegalArgumentException, ArithmeticException {
+        needSystem(system);
+        needSystem(other);
+        needLikeness(kind, true);
+        int second = laySideBySide(system, other);
+        return likeStates(0, second, kind);
+    }
+
+    public boolean areAlike(int system, int state, int other, char kind)
+            throws IndexOutOfBoundsException, IllegalArgumentException, ArithmeticException {
+        needState(system, state);
+        needState(system, other);
+        needLikeness(kind, true);
+        laySideBySide(system, system);
+        return likeStates(state, other, kind);
+    }
+
+    public int countClasses(int system, char kind)
+            throws IndexOutOfBoundsException, IllegalArgumentException, ArithmeticException {
+        needSystem(system);
+        needLikeness(kind, false);
+        laySideBySide(system, system);
+        refiner.settle(kind, 0, 0);
+        return refiner.blockCount;
+    }
+
+    public boolean simulates(int system, int other) throws IndexOutOfBoundsException, ArithmeticException {
+        needSystem(system);
+        needSystem(other);
+        return pairGame.survives(fittingGraph(other), fittingGraph(system), false);
+    }
+
+    public int roundsApart(int system, int other) throws IndexOutOfBoundsException, ArithmeticException {
+        needSystem(system);
+        needSystem(other);
+        int second = laySideBySide(system, other);
+        return refiner.settle('s', 0, second);
+    }
+
+    public int firstStep(int system, int other)
+            throws IndexOutOfBoundsException, ArithmeticException, NoSuchElementException {
+        needSystem(system);
+        needSystem(other);
+        int second = laySideBySide(system, other);
+        if (refiner.settle('s', 0, second) < 0) {
+            throw new NoSuchElementException("the systems cannot be told apart");
+        }
+        int own = refiner.slotApart(fittingGraph(system), 0, fittingGraph(other), second);
+        int others = refiner.slotApart(fittingGraph(other), second, fittingGraph(system), 0);
+        return own <= others ? labelOf(own) : 1000 + labelOf(others);
+    }
+
+    public int countTraces(int system, int length)
+            throws IndexOutOfBoundsException, IllegalArgumentException, ArithmeticException {
+        needSystem(system);
+        if (length < 1 || length > LONGEST_ROW) {
+            throw new IllegalArgumentException("a length is from 1 to 5");
+        }
+        laySideBySide(system, system);
+        refiner.settle('w', 0, 0);
+        return traceWalk.rowsOfLength(0, length);
+    }
+
+    // ---- formulas
+
+    public int addNot(int formula) throws IndexOutOfBoundsException, IllegalStateException {
+        needFormula(formula);
+        return newFormula(FormulaBook.NOT, 0, formula, formula);
+    }
+
+    public int addBoth(int formula, int other) throws IndexOutOfBoundsException, IllegalStateException {
+        needFormula(formula);
+        needFormula(other);
+        return newFormula(FormulaBook.BOTH, 0, formula, other);
+    }
+
+    public int addStep(char kind, int label, int formula)
+            throws IndexOutOfBoundsException, IllegalArgumentException, IllegalStateException {
+        needFormula(formula);
+        if (kind != 'd' && kind != 'w') {
+            throw new IllegalArgumentException("no such kind of step");
+        }
+        int slot = neededSlot(label);
+        return newFormula(kind == 'd' ? FormulaBook.STEP : FormulaBook.WEAK_STEP, slot, formula, formula);
+    }
+
+    public int addReach(int formula) throws IndexOutOfBoundsException, IllegalStateException {
+        needFormula(formula);
+        return newFormula(FormulaBook.REACH, 0, formula, formula);
+    }
+
+    public int getDepth(int formula) throws IndexOutOfBoundsException {
+        needFormula(formula);
+        return formulas.depths[formula];
+    }
+
+    public boolean holds(int system, int formula) throws IndexOutOfBoundsException, ArithmeticException {
+        needSystem(system);
+        needFormula(formula);
+        formulas.judge(fittingGraph(system), formula);
+        return formulas.isTrue(formula, 0);
+    }
+
+    public int countHolding(int system, int formula) throws IndexOutOfBoundsException, ArithmeticException {
+        needSystem(system);
+        needFormula(formula);
+        formulas.judge(fittingGraph(system), formula);
+        return formulas.trueStates(formula);
+    }
+
+    public int tellingFormula(int system, int other)
+            throws IndexOutOfBoundsException, ArithmeticException, NoSuchElementException {
+        needSystem(system);
+        needSystem(other);
+        int formula = formulas.firstUnlike(fittingGraph(system), fittingGraph(other));
+        if (formula < 0) {
+            throw new NoSuchElementException("no formula tells the systems apart");
+        }
+        return formula;
+    }
+
+    // ---- testers and figures
+
+    public boolean may(int system, int tester, int content) throws IndexOutOfBoundsException, ArithmeticException {
+        putOnBench(system, tester, content);
+        return bench.canContent();
+    }
+
+    public boolean must(int system, int tester, int content) throws IndexOutOfBoundsException, ArithmeticException {
+        putOnBench(system, tester, content);
+        return bench.alwaysContents();
+    }
+
+    public float silentShare(int system) throws IndexOutOfBoundsException, ArithmeticException {
+        Network graph = fittingGraph(system);
+        int all = graph.allSteps();
+        if (all == 0) {
+            throw new ArithmeticException("the system has no steps");
+        }
+        return (float) graph.stepsWith(0) / (float) all;
+    }
+
+    public double meanSteps(int system) throws IndexOutOfBoundsException, ArithmeticException {
+        Network graph = fittingGraph(system);
+        return (double) graph.allSteps() / (double) graph.stateCount;
+    }
+
+    public long checksum(int system) throws IndexOutOfBoundsException, ArithmeticException {
+        return fittingGraph(system).sum();
+    }
+
+    public boolean isSound() {
+        for (int first = 0; first < networkCount; first++) {
+            for (int second = first + 1; second < networkCount; second++) {
+                if (!isSoundFor(first, second)) {
+                    return false;
+                }
+            }
+        }
+        return true;
+    }
+
+    // ---- what the calls share
+
+    private void needAgent(int agent) {
+        if (agent < 0 || agent >= equations.agentCount) {
+            throw new IndexOutOfBoundsException("no such agent");
+        }
+    }
+
+    private void needBranch(int agent, int branch) {
+        needAgent(agent);
+        if (branch < 0 || branch >= equations.branchCounts[agent]) {
+            throw new IndexOutOfBoundsException("no such branch");
+        }
+    }
+
+    private void needSystem(int system) {
+        if (system < 0 || system >= networkCount) {
+            throw new IndexOutOfBoundsException("no such system");
+        }
+    }
+
+    private void needPart(int system, int part) {
+        needSystem(system);
+        if (part < 0 || part >= networks[system].partCount) {
+            throw new IndexOutOfBoundsException("no such part");
+        }
+    }
+
+    private void needState(int system, int state) {
+        needSystem(system);
+        Network graph = networks[system];
+        builder.refresh(graph);
+        if (state < 0 || graph.fits && state >= graph.stateCount) {
+            throw new IndexOutOfBoundsException("no such state");
+        }
+    }
+
+    private void needFormula(int formula) {
+        if (formula < 0 || formula >= formulas.count) {
+            throw new IndexOutOfBoundsException("no such formula");
+        }
+    }
+
+    private void needName(int name) {
+        if (name < 0 || name >= NAMES) {
+            throw new IllegalArgumentException("a name is from 0 to 3");
+        }
+    }
+
+    private void needLikeness(char kind, boolean withTraces) {
+        if (kind != 's' && kind != 'w' && kind != 'b' && !(withTraces && kind == 't')) {
+            throw new IllegalArgumentException("no such kind of likeness");
+        }
+    }
+
+    private int neededSlot(int label) {
+        int slot = slotOf(label);
+        if (slot == NO_LABEL) {
+            throw new IllegalArgumentException("no such label");
+        }
+        return slot;
+    }
+
+    private void needRoomForSystem() {
+        if (networkCount >= MOST_SYSTEMS) {
+            throw new IllegalStateException("there are 6 systems");
+        }
+    }
+
+    private Network newNetwork() {
+        Network network = new Network();
+        networks[networkCount] = network;
+        networkCount++;
+        return network;
+    }
+
+    private int newFormula(int kind, int slot, int formula, int other) {
+        int depth = 1 + Math.max(formulas.depths[formula], formulas.depths[other]);
+        if (formulas.count >= MOST_FORMULAS || depth > MOST_DEPTH) {
+            throw new IllegalStateException("there are 40 formulas, or it would be too deep");
+        }
+        return formulas.put(kind, slot, formula, other, depth);
+    }
+
+    private void forgetGraphs() {
+        for (int system = 0; system < networkCount; system++) {
+            networks[system].isFresh = false;
+        }
+    }
+
+    private Network fittingGraph(int system) {
+        needSystem(system);
+        Network graph = networks[system];
+        builder.refresh(graph);
+        if (!graph.fits) {
+            throw new ArithmeticException("more than 150 states");
+        }
+        return graph;
+    }
+
+    private int placeOfStep(int system, int state, int step) {
+        needState(system, state);
+        Network graph = fittingGraph(system);
+        if (step < 0 || step >= graph.width(state)) {
+            throw new NoSuchElementException("no such step");
+        }
+        return graph.start[state] + step;
+    }
+
+    private int partIn(int system, int state, int part) {
+        needState(system, state);
+        needPart(system, part);
+        Network graph = fittingGraph(system);
+        return graph.codes[state] >> graph.shiftOf(part) & 63;
+    }
+
+    /** Answers the number, in the arena, of the other system's first state. */
+    private int laySideBySide(int system, int other) {
+        Network first = fittingGraph(system);
+        Network second = fittingGraph(other);
+        arena.begin(first);
+        return system == other ? 0 : arena.join(second);
+    }
+
+    private boolean likeStates(int one, int other, char kind) {
+        if (kind == 't') {
+            refiner.settle('w', 0, 0);
+            return traceWalk.sameRows(one, other);
+        }
+        return refiner.settle(kind, one, other) < 0;
+    }
+
+    private void putOnBench(int system, int tester, int content) {
+        needSystem(system);
+        needSystem(tester);
+        needAgent(content);
+        Network tested = fittingGraph(system);
+        Network testing = fittingGraph(tester);
+        if (!bench.explore(tested, testing)) {
+            throw new ArithmeticException("more than 600 states of both");
+        }
+        bench.markContent(testing, content);
+    }
+
+    /** The game is asked apart from the classes, though both refine alike: the document names both. */
+    private boolean isSoundFor(int system, int other) {
+        Network first = networks[system];
+        Network second = networks[other];
+        builder.refresh(first);
+        builder.refresh(second);
+        if (!first.fits || !second.fits || first.stateCount + second.stateCount > MOST_TO_CHECK) {
+            return true;
+        }
+        arena.begin(first);
+        int start = arena.join(second);
+        if (!likeStates(0, start, 's')) {
+            return true;
+        }
+        return pairGame.survives(first, second, true)
+                && likeStates(0, start, 'b')
+                && likeStates(0, start, 'w')
+                && likeStates(0, start, 't')
+                && refiner.settle('s', 0, start) < 0
+                && formulas.firstUnlike(first, second) < 0;
+    }
+
+    // ---- labels and bits
+
+    private static int slotOf(int label) {
+        if (label == 0) {
+            return 0;
+        }
+        if (label < 100 || label > 299) {
+            return NO_LABEL;
+        }
+        int channel = label / 10 % 10;
+        int name = label % 10;
+        if (channel >= NAMES || name >= NAMES) {
+            return NO_LABEL;
+        }
+        return (label < 200 ? FIRST_SENDING : FIRST_RECEIVING) + NAMES * channel + name;
+    }
+
+    private static int labelOf(int slot) {
+        if (slot == 0) {
+            return 0;
+        }
+        boolean isSending = slot < FIRST_RECEIVING;
+        int names = slot - (isSending ? FIRST_SENDING : FIRST_RECEIVING);
+        return (isSending ? 100 : 200) + 10 * (names >> 2) + (names & 3);
+    }
+
+    /** Counts the bits below the lowest one; the word must not be 0. */
+    private static int lowestBit(long word) {
+        return Long.bitCount((word & -word) - 1);
+    }
+
+    private static boolean hasBit(long[] words, int base, int bit) {
+        return (words[base + (bit >> 6)] >>> (bit & 63) & 1) != 0;
+    }
+
+    private static void setBit(long[] words, int base, int bit) {
+        words[base + (bit >> 6)] |= 1L << (bit & 63);
+    }
+
+    private static boolean isEmpty(long[] words, int base, int length) {
+        for (int word = 0; word < length; word++) {
+            if (words[base + word] != 0) {
+                return false;
+            }
+        }
+        return true;
+    }
+
+    /** Whether all bits of the inner words are in the outer ones. */
+    private static boolean isWithin(long[] inner, int innerBase, long[] outer, int outerBase, int length) {
+        for (int word = 0; word < length; word++) {
+            if ((inner[innerBase + word] & ~outer[outerBase + word]) != 0) {
+                return false;
+            }
+        }
+        return true;
+    }
+
+    private static void unite(long[] into, int intoBase, long[] from, int fromBase, int length) {
+        for (int word = 0; word < length; word++) {
+            into[intoBase + word] |= from[fromBase + word];
+        }
+    }
+
+    private static boolean isSame(long[] one, int oneBase, long[] other, int otherBase, int length) {
+        for (int word = 0; word < length; word++) {
+            if (one[oneBase + word] != other[otherBase + word]) {
+                return false;
+            }
+        }
+        return true;
+    }
+
+    private static long mixed(long hash, long[] words, int base, int length) {
+        long result = hash;
+        for (int word = 0; word < length; word++) {
+            result = (result ^ words[base + word]) * MIX;
+            result ^= result >>> 29;
+        }
+        return result;
+    }
+
+    /** The agents and their branches, in rows of six. */
+    private static final class Equations {
+        final int[] branchCounts = new int[MOST_AGENTS];
+        final char[] kinds = new char[MOST_AGENTS * MOST_BRANCHES];
+        final int[] channels = new int[MOST_AGENTS * MOST_BRANCHES];
+        final int[] values = new int[MOST_AGENTS * MOST_BRANCHES];
+        final int[] nexts = new int[MOST_AGENTS * MOST_BRANCHES];
+        int agentCount;
+
+        int newAgent() {
+            agentCount++;
+            return agentCount - 1;
+        }
+
+        int newBranch(int agent, char kind, int channel, int value, int next) {
+            int branch = branchCounts[agent];
+            int place = agent * MOST_BRANCHES + branch;
+            kinds[place] = kind;
+            channels[place] = channel;
+            values[place] = value;
+            nexts[place] = next;
+            branchCounts[agent] = branch + 1;
+            return branch;
+        }
+
+        int takeAway(int agent, int branch) {
+            int left = branchCounts[agent] - 1;
+            int base = agent * MOST_BRANCHES;
+            for (int at = base + branch; at < base + left; at++) {
+                kinds[at] = kinds[at + 1];
+                channels[at] = channels[at + 1];
+                values[at] = values[at + 1];
+                nexts[at] = nexts[at + 1];
+            }
+            branchCounts[agent] = left;
+            return left;
+        }
+
+        int leadTo(int agent, int branch, int next) {
+            int place = agent * MOST_BRANCHES + branch;
+            int nextBefore = nexts[place];
+            nexts[place] = next;
+            return nextBefore;
+        }
+
+        int channelOf(int place, int kept) {
+            return channels[place] == KEPT ? kept : channels[place];
+        }
+
+        int valueOf(int place, int kept) {
+            return values[place] == KEPT ? kept : values[place];
+        }
+
+        boolean receives(int place, int name) {
+            return values[place] == KEPT || values[place] == name;
+        }
+
+        int keptAfter(int place, int kept, int name) {
+            return values[place] == KEPT ? name : kept;
+        }
+    }
+
+    /**
+     * A system: its parts and hidden names; and, while it is fresh, its graph: the states with their codes,
+     * and their steps in rows, each a slot and a target.
+     */
+    private static final class Network {
+        final int[] agents = new int[MOST_PARTS];
+        final int[] kept = new int[MOST_PARTS];
+        final boolean[] hidden = new boolean[NAMES];
+        int partCount;
+
+        final int[] codes = new int[MOST_STATES];
+        final int[] start = new int[MOST_STATES + 1];
+        final int[] steps = new int[MOST_STATES * MOST_STEPS];
+        private final int[] ways = new int[MOST_STATES];
+        private final boolean[] isCalm = new boolean[MOST_STATES];
+        int stateCount;
+        private int rowCount;
+        boolean fits;
+        boolean isFresh;
+
+        void begin(int part, int agent, int name) {
+            agents[part] = agent;
+            kept[part] = name;
+            isFresh = false;
+        }
+
+        void takeOver(Network other) {
+            for (int part = 0; part < other.partCount; part++) {
+                begin(part, other.agents[part], other.kept[part]);
+            }
+            for (int name = 0; name < NAMES; name++) {
+                hidden[name] = other.hidden[name];
+            }
+            partCount = other.partCount;
+        }
+
+        /** The first part stands highest, so that codes rise as the document compares states. */
+        int shiftOf(int part) {
+            return 6 * (partCount - 1 - part);
+        }
+
+        int firstCode() {
+            int code = 0;
+            for (int part = 0; part < partCount; part++) {
+                code |= (agents[part] << 2 | kept[part]) << shiftOf(part);
+            }
+            return code;
+        }
+
+        void beginGraph(int code) {
+            codes[0] = code;
+            start[0] = 0;
+            stateCount = 1;
+            rowCount = 0;
+            fits = true;
+            isFresh = true;
+        }
+
+        void takeRow(SortedRow row) {
+            int at = start[rowCount];
+            System.arraycopy(row.items, 0, steps, at, row.count);
+            rowCount++;
+            start[rowCount] = at + row.count;
+        }
+
+        int width(int state) {
+            return start[state + 1] - start[state];
+        }
+
+        int slotAt(int place) {
+            return steps[place] >> 8;
+        }
+
+        int targetAt(int place) {
+            return steps[place] & 255;
+        }
+
+        int allSteps() {
+            return start[stateCount];
+        }
+
+        /** The place of the state's first step with this slot or a higher one. */
+        int placeFrom(int state, int slot) {
+            int low = start[state];
+            int high = start[state + 1];
+            while (low < high) {
+                int middle = low + high >> 1;
+                if (steps[middle] >> 8 < slot) {
+                    low = middle + 1;
+                } else {
+                    high = middle;
+                }
+            }
+            return low;
+        }
+
+        int stepsWith(int slot) {
+            int result = 0;
+            int end = allSteps();
+            for (int place = 0; place < end; place++) {
+                if (slotAt(place) == slot) {
+                    result++;
+                }
+            }
+            return result;
+        }
+
+        int stuckStates() {
+            int result = 0;
+            for (int state = 0; state < stateCount; state++) {
+                if (width(state) == 0) {
+                    result++;
+                }
+            }
+            return result;
+        }
+
+        /** Strikes out the states whose silent steps all end: from what is left they go on for ever. */
+        boolean chatters() {
+            int calmStates = 0;
+            boolean grew = true;
+            for (int state = 0; state < stateCount; state++) {
+                isCalm[state] = false;
+            }
+            for (int pass = 0; pass <= stateCount && grew; pass++) {
+                grew = false;
+                for (int state = stateCount - 1; state >= 0; state--) {
+                    if (!isCalm[state] && leadsToCalm(state)) {
+                        isCalm[state] = true;
+                        calmStates++;
+                        grew = true;
+                    }
+                }
+            }
+            return calmStates < stateCount;
+        }
+
+        private boolean leadsToCalm(int state) {
+            for (int place = start[state]; place < start[state + 1] && slotAt(place) == 0; place++) {
+                if (!isCalm[targetAt(place)]) {
+                    return false;
+                }
+            }
+            return true;
+        }
+
+        /** States are numbered by rising distance, so that the first stuck one is the nearest. */
+        int wayToStuck() {
+            Arrays.fill(ways, -1);
+            ways[0] = 0;
+            for (int state = 0; state < stateCount; state++) {
+                if (width(state) == 0) {
+                    return ways[state];
+                }
+                for (int place = start[state]; place < start[state + 1]; place++) {
+                    int target = targetAt(place);
+                    if (ways[target] < 0) {
+                        ways[target] = ways[state] + 1;
+                    }
+                }
+            }
+            return -1;
+        }
+
+        long sum() {
+            long result = 7;
+            for (int state = 0; state < stateCount; state++) {
+                result = 31 * result + width(state);
+                for (int place = start[state]; place < start[state + 1]; place++) {
+                    result = 31 * result + labelOf(slotAt(place));
+                    result = 31 * result + targetAt(place);
+                }
+            }
+            return result;
+        }
+    }
+
+    /** Numbers in rising order, like ones once. */
+    private static final class SortedRow {
+        final int[] items;
+        int count;
+
+        SortedRow(int capacity) {
+            items = new int[capacity];
+        }
+
+        int placeOf(int item) {
+            int low = 0;
+            int high = count;
+            while (low < high) {
+                int middle = low + high >> 1;
+                if (items[middle] < item) {
+                    low = middle + 1;
+                } else {
+                    high = middle;
+                }
+            }
+            return low;
+        }
+
+        void put(int item) {
+            int place = placeOf(item);
+            if (place < count && items[place] == item || count >= items.length) {
+                return;
+            }
+            System.arraycopy(items, place, items, place + 1, count - place);
+            items[place] = item;
+            count++;
+        }
+    }
+
+    /** Finds the states of a system and their steps. */
+    private static final class Builder {
+        private static final int CODE_BITS = 18;
+        private static final int CODE_MASK = (1 << CODE_BITS) - 1;
+
+        private final Equations equations;
+        /** Codes with their numbers in the lowest 8 bits. */
+        private final SortedRow numbers = new SortedRow(MOST_STATES);
+        /** Slots with codes: the order in which states are found. */
+        private final SortedRow leads = new SortedRow(MOST_STEPS);
+        /** Slots with numbers: the order in which steps are told. */
+        private final SortedRow row = new SortedRow(MOST_STEPS);
+
+        Builder(Equations equations) {
+            this.equations = equations;
+        }
+
+        /** Builds the graph of a system, if anything was edited since it was built. */
+        void refresh(Network network) {
+            if (network.isFresh) {
+                return;
+            }
+            int code = network.firstCode();
+            network.beginGraph(code);
+            numbers.count = 0;
+            numbers.put(code << 8);
+            for (int state = 0; state < network.stateCount && network.fits; state++) {
+                leads.count = 0;
+                for (int part = 0; part < network.partCount; part++) {
+                    stepAlone(network, network.codes[state], network.shiftOf(part));
+                    for (int other = 0; other < network.partCount; other++) {
+                        if (other != part) {
+                            meet(network.codes[state], network.shiftOf(part), network.shiftOf(other));
+                        }
+                    }
+                }
+                numberLeads(network);
+                if (network.fits) {
+                    network.takeRow(row);
+                }
+            }
+        }
+
+        private void numberLeads(Network graph) {
+            row.count = 0;
+            for (int at = 0; at < leads.count && graph.fits; at++) {
+                int code = leads.items[at] & CODE_MASK;
+                int number = numberOf(code);
+                if (number < 0 && graph.stateCount >= MOST_STATES) {
+                    graph.fits = false;
+                } else {
+                    if (number < 0) {
+                        number = graph.stateCount;
+                        graph.codes[number] = code;
+                        graph.stateCount++;
+                        numbers.put(code << 8 | number);
+                    }
+                    row.put(leads.items[at] >> CODE_BITS << 8 | number);
+                }
+            }
+        }
+
+        private int numberOf(int code) {
+            int place = numbers.placeOf(code << 8);
+            if (place < numbers.count && numbers.items[place] >> 8 == code) {
+                return numbers.items[place] & 255;
+            }
+            return -1;
+        }
+
+        private void stepAlone(Network network, int code, int shift) {
+            int agent = code >> shift + 2 & 15;
+            int kept = code >> shift & 3;
+            int base = agent * MOST_BRANCHES;
+            for (int place = base; place < base + equations.branchCounts[agent]; place++) {
+                char kind = equations.kinds[place];
+                int channel = equations.channelOf(place, kept);
+                int name = equations.valueOf(place, kept);
+                int after = changed(code, shift, equations.nexts[place], kept);
+                if (kind == 'i') {
+                    receive(network, code, shift, place);
+                } else if (kind == 't' || kind == 'e' && name == kept) {
+                    leads.put(after);
+                } else if (kind == 'o' && !network.hidden[channel] && !network.hidden[name]) {
+                    leads.put(FIRST_SENDING + NAMES * channel + name << CODE_BITS | after);
+                }
+            }
+        }
+
+        private void receive(Network network, int code, int shift, int place) {
+            int kept = code >> shift & 3;
+            int channel = equations.channelOf(place, kept);
+            for (int name = 0; name < NAMES && !network.hidden[channel]; name++) {
+                if (!network.hidden[name] && equations.receives(place, name)) {
+                    int after = changed(code, shift, equations.nexts[place], equations.keptAfter(place, kept, name));
+                    leads.put(FIRST_RECEIVING + NAMES * channel + name << CODE_BITS | after);
+                }
+            }
+        }
+
+        private void meet(int code, int sender, int receiver) {
+            int agent = code >> sender + 2 & 15;
+            int kept = code >> sender & 3;
+            int base = agent * MOST_BRANCHES;
+            for (int place = base; place < base + equations.branchCounts[agent]; place++) {
+                if (equations.kinds[place] == 'o') {
+                    int sent = changed(code, sender, equations.nexts[place], kept);
+                    handOver(sent, receiver, equations.channelOf(place, kept), equations.valueOf(place, kept));
+                }
+            }
+        }
+
+        /** In this code the sender has gone on already. */
+        private void handOver(int code, int receiver, int channel, int name) {
+            int agent = code >> receiver + 2 & 15;
+            int kept = code >> receiver & 3;
+            int base = agent * MOST_BRANCHES;
+            for (int place = base; place < base + equations.branchCounts[agent]; place++) {
+                if (equations.kinds[place] == 'i' && equations.channelOf(place, kept) == channel
+                        && equations.receives(place, name)) {
+                    leads.put(changed(code, receiver, equations.nexts[place], equations.keptAfter(place, kept, name)));
+                }
+            }
+        }
+
+        private static int changed(int code, int shift, int agent, int kept) {
+            return code & ~(63 << shift) | (agent << 2 | kept) << shift;
+        }
+    }
+
+    /** One graph, or two side by side, with the labels that occur numbered densely, the silent one 0. */
+    private static final class Arena {
+        final int[] start = new int[MOST_SIDE_BY_SIDE + 1];
+        final int[] steps = new int[MOST_SIDE_BY_SIDE * MOST_STEPS];
+        private final int[] dense = new int[SLOTS];
+        int stateCount;
+        int labelCount;
+        /** How many words hold a bit for each state. */
+        int words;
+
+        void begin(Network graph) {
+            Arrays.fill(dense, -1);
+            dense[0] = 0;
+            labelCount = 1;
+            stateCount = 0;
+            start[0] = 0;
+            join(graph);
+        }
+
+        /** Answers the number of the graph's first state. */
+        int join(Network graph) {
+            int offset = stateCount;
+            int at = start[offset];
+            for (int state = 0; state < graph.stateCount; state++) {
+                for (int place = graph.start[state]; place < graph.start[state + 1]; place++) {
+                    steps[at] = denseLabel(graph.slotAt(place)) << 9 | offset + graph.targetAt(place);
+                    at++;
+                }
+                start[offset + state + 1] = at;
+            }
+            stateCount = offset + graph.stateCount;
+            words = stateCount + 63 >> 6;
+            return offset;
+        }
+
+        private int denseLabel(int slot) {
+            if (dense[slot] < 0) {
+                dense[slot] = labelCount;
+                labelCount++;
+            }
+            return dense[slot];
+        }
+
+        int labelAt(int place) {
+            return steps[place] >> 9;
+        }
+
+        int targetAt(int place) {
+            return steps[place] & 511;
+        }
+    }
+
+    /**
+     * Parts the states of the arena into blocks, round by round: after a round two states share a block
+     * if they did before and their signs, the labels with the blocks that they come to, are the same.
+     */
+    private static final class Refiner {
+        private static final int BUCKETS = 128;
+
+        private final Arena arena;
+        final int[] blocks = new int[MOST_SIDE_BY_SIDE];
+        private final int[] before = new int[MOST_SIDE_BY_SIDE];
+        /** The first state of each block. */
+        final int[] models = new int[MOST_SIDE_BY_SIDE];
+        private final int[] heads = new int[BUCKETS];
+        private final int[] chain = new int[MOST_SIDE_BY_SIDE];
+        private final int[] stack = new int[MOST_SIDE_BY_SIDE];
+        private final long[] seen = new long[WIDE_WORDS];
+        /** For each state and label the blocks that it comes to; after the last round, of the last blocks. */
+        final long[] signs = new long[MOST_SIDE_BY_SIDE * SLOTS * WIDE_WORDS];
+        /** For each state and label the states that it comes to with silent steps before and behind. */
+        private final long[] reached = new long[MOST_SIDE_BY_SIDE * SLOTS * WIDE_WORDS];
+        int blockCount;
+        int signWords;
+
+        Refiner(Arena arena) {
+            this.arena = arena;
+        }
+
+        /** Answers the round that parts the two states; -1 if none does, then the last blocks stand. */
+        int settle(char kind, int one, int other) {
+            blockCount = 1;
+            Arrays.fill(blocks, 0);
+            signWords = arena.labelCount * arena.words;
+            if (kind == 'w') {
+                reachSilently();
+                reachShowing();
+            }
+            for (int round = 1; round <= arena.stateCount; round++) {
+                boolean split = refine(kind);
+                if (blocks[one] != blocks[other]) {
+                    return round;
+                }
+                if (!split) {
+                    return -1;
+                }
+            }
+            return -1;
+        }
+
+        /** The lowest slot of a step of one first state that the other one could not answer one round before. */
+        int slotApart(Network asking, int askingOffset, Network answering, int answeringOffset) {
+            for (int place = asking.start[0]; place < asking.start[1]; place++) {
+                int slot = asking.slotAt(place);
+                int block = before[askingOffset + asking.targetAt(place)];
+                boolean answered = false;
+                for (int answer = answering.start[0]; answer < answering.start[1] && !answered; answer++) {
+                    answered = answering.slotAt(answer) == slot
+                            && before[answeringOffset + answering.targetAt(answer)] == block;
+                }
+                if (!answered) {
+                    return slot;
+                }
+            }
+            return SLOTS;
+        }
+
+        private boolean refine(char kind) {
+            Arrays.fill(signs, 0, arena.stateCount * signWords, 0L);
+            for (int state = 0; state < arena.stateCount; state++) {
+                if (kind == 'w') {
+                    signWeakly(state);
+                } else if (kind == 'b') {
+                    signBranching(state);
+                } else {
+                    signStrongly(state);
+                }
+            }
+            System.arraycopy(blocks, 0, before, 0, arena.stateCount);
+            int countBefore = blockCount;
+            numberBlocks();
+            return blockCount > countBefore;
+        }
+
+        /** Numbers blocks by their first states, so that a round without a split leaves all numbers. */
+        private void numberBlocks() {
+            Arrays.fill(heads, -1);
+            blockCount = 0;
+            for (int state = 0; state < arena.stateCount; state++) {
+                long hash = mixed(before[state], signs, state * signWords, signWords);
+                int bucket = (int) (hash ^ hash >>> 32) & BUCKETS - 1;
+                int block = heads[bucket];
+                for (int tries = 0; tries < blockCount && block >= 0 && !isLikeModel(state, block); tries++) {
+                    block = chain[block];
+                }
+                if (block < 0) {
+                    block = blockCount;
+                    blockCount++;
+                    models[block] = state;
+                    chain[block] = heads[bucket];
+                    heads[bucket] = block;
+                }
+                blocks[state] = block;
+            }
+        }
+
+        private boolean isLikeModel(int state, int block) {
+            int model = models[block];
+            return before[state] == before[model]
+                    && isSame(signs, state * signWords, signs, model * signWords, signWords);
+        }
+
+        private void signStrongly(int state) {
+            int base = state * signWords;
+            for (int place = arena.start[state]; place < arena.start[state + 1]; place++) {
+                setBit(signs, base + arena.labelAt(place) * arena.words, blocks[arena.targetAt(place)]);
+            }
+        }
+
+        private void signWeakly(int state) {
+            int base = state * signWords;
+            for (int label = 0; label < arena.labelCount; label++) {
+                int row = base + label * arena.words;
+                for (int word = 0; word < arena.words; word++) {
+                    for (long left = reached[row + word]; left != 0; left &= left - 1) {
+                        setBit(signs, row, blocks[64 * word + lowestBit(left)]);
+                    }
+                }
+            }
+        }
+
+        /** Silent steps within the block may come first: they change nothing that can be told yet. */
+        private void signBranching(int state) {
+            int base = state * signWords;
+            Arrays.fill(seen, 0L);
+            setBit(seen, 0, state);
+            stack[0] = state;
+            int found = 1;
+            for (int at = 0; at < found; at++) {
+                int here = stack[at];
+                for (int place = arena.start[here]; place < arena.start[here + 1]; place++) {
+                    int target = arena.targetAt(place);
+                    int label = arena.labelAt(place);
+                    if (label != 0 || blocks[target] != blocks[state]) {
+                        setBit(signs, base + label * arena.words, blocks[target]);
+                    } else if (!hasBit(seen, 0, target)) {
+                        setBit(seen, 0, target);
+                        stack[found] = target;
+                        found++;
+                    }
+                }
+            }
+        }
+
+        private void reachSilently() {
+            Arrays.fill(reached, 0, arena.stateCount * signWords, 0L);
+            for (int state = 0; state < arena.stateCount; state++) {
+                int row = state * signWords;
+                setBit(reached, row, state);
+                stack[0] = state;
+                int found = 1;
+                for (int at = 0; at < found; at++) {
+                    int here = stack[at];
+                    int end = arena.start[here + 1];
+                    for (int place = arena.start[here]; place < end && arena.labelAt(place) == 0; place++) {
+                        int target = arena.targetAt(place);
+                        if (!hasBit(reached, row, target)) {
+                            setBit(reached, row, target);
+                            stack[found] = target;
+                            found++;
+                        }
+                    }
+                }
+            }
+        }
+
+        private void reachShowing() {
+            for (int state = 0; state < arena.stateCount; state++) {
+                int base = state * signWords;
+                for (int word = 0; word < arena.words; word++) {
+                    for (long left = reached[base + word]; left != 0; left &= left - 1) {
+                        addShown(base, 64 * word + lowestBit(left));
+                    }
+                }
+            }
+        }
+
+        private void addShown(int base, int between) {
+            for (int place = arena.start[between]; place < arena.start[between + 1]; place++) {
+                int label = arena.labelAt(place);
+                if (label != 0) {
+                    int row = base + label * arena.words;
+                    unite(reached, row, reached, arena.targetAt(place) * signWords, arena.words);
+                }
+            }
+        }
+    }
+
+    /**
+     * Follows rows of shown labels through sets of blocks that are weakly alike: such blocks have the same
+     * rows, so that sets of them stand for sets of states.
+     */
+    private static final class TraceWalk {
+        /** Far above what any two systems need: each pair that is kept tells something new. */
+        private static final int MOST_PAIRS = 1 << 16;
+
+        private final Arena arena;
+        private final Refiner refiner;
+        private final long[] after = new long[SLOTS * WIDE_WORDS];
+        private final long[] afterOther = new long[SLOTS * WIDE_WORDS];
+        private final long[] grown = new long[WIDE_WORDS];
+        private final long[] grownOther = new long[WIDE_WORDS];
+        private long[] pairs = new long[64 * 2 * WIDE_WORDS];
+        private int pairCount;
+        private SetTable level = new SetTable();
+        private SetTable nextLevel = new SetTable();
+
+        TraceWalk(Arena arena, Refiner refiner) {
+            this.arena = arena;
+            this.refiner = refiner;
+        }
+
+        boolean sameRows(int one, int other) {
+            if (refiner.blocks[one] == refiner.blocks[other]) {
+                return true;
+            }
+            int words = arena.words;
+            pairCount = 0;
+            putPair(refiner.signs, one * refiner.signWords, refiner.signs, other * refiner.signWords);
+            for (int at = 0; at < pairCount; at++) {
+                follow(pairs, 2 * at * words, after);
+                follow(pairs, (2 * at + 1) * words, afterOther);
+                for (int label = 1; label < arena.labelCount; label++) {
+                    int row = label * words;
+                    boolean ends = isEmpty(after, row, words);
+                    if (ends != isEmpty(afterOther, row, words)) {
+                        return false;
+                    }
+                    if (!ends && !isKnown(row)) {
+                        putPair(after, row, afterOther, row);
+                    }
+                }
+            }
+            return true;
+        }
+
+        /** Each row of labels comes to just one set, so that rows are counted by sets. */
+        int rowsOfLength(int state, int length) {
+            int words = arena.words;
+            level.begin(words);
+            level.put(refiner.signs, state * refiner.signWords, 1);
+            for (int done = 1; done < length; done++) {
+                nextLevel.begin(words);
+                for (int at = 0; at < level.count; at++) {
+                    follow(level.sets, at * words, after);
+                    for (int label = 1; label < arena.labelCount; label++) {
+                        if (!isEmpty(after, label * words, words)) {
+                            nextLevel.put(after, label * words, level.weights[at]);
+                        }
+                    }
+                }
+                SetTable swapped = level;
+                level = nextLevel;
+                nextLevel = swapped;
+            }
+            return rowsBehindLevel();
+        }
+
+        private int rowsBehindLevel() {
+            int result = 0;
+            for (int at = 0; at < level.count; at++) {
+                follow(level.sets, at * arena.words, after);
+                for (int label = 1; label < arena.labelCount; label++) {
+                    if (!isEmpty(after, label * arena.words, arena.words)) {
+                        result += level.weights[at];
+                    }
+                }
+            }
+            return result;
+        }
+
+        /** Writes, for each label, the set that is come to from a set. */
+        private void follow(long[] sets, int base, long[] into) {
+            Arrays.fill(into, 0, refiner.signWords, 0L);
+            for (int word = 0; word < arena.words; word++) {
+                for (long left = sets[base + word]; left != 0; left &= left - 1) {
+                    int model = refiner.models[64 * word + lowestBit(left)];
+                    unite(into, 0, refiner.signs, model * refiner.signWords, refiner.signWords);
+                }
+            }
+        }
+
+        /** Whether the two sets behind a label have the same rows if all kept pairs have. */
+        private boolean isKnown(int row) {
+            if (isSame(after, row, afterOther, row, arena.words)) {
+                return true;
+            }
+            System.arraycopy(after, row, grown, 0, arena.words);
+            System.arraycopy(afterOther, row, grownOther, 0, arena.words);
+            grow(grown);
+            grow(grownOther);
+            return isSame(grown, 0, grownOther, 0, arena.words);
+        }
+
+        /** What holds one side of a pair has the same rows with the other side added. */
+        private void grow(long[] set) {
+            int words = arena.words;
+            boolean grew = true;
+            for (int pass = 0; pass <= MOST_SIDE_BY_SIDE && grew; pass++) {
+                grew = false;
+                for (int at = 0; at < pairCount; at++) {
+                    int one = 2 * at * words;
+                    int other = one + words;
+                    boolean hasOne = isWithin(pairs, one, set, 0, words);
+                    boolean hasOther = isWithin(pairs, other, set, 0, words);
+                    if (hasOne != hasOther) {
+                        unite(set, 0, pairs, hasOne ? other : one, words);
+                        grew = true;
+                    }
+                }
+            }
+        }
+
+        private void putPair(long[] one, int oneBase, long[] other, int otherBase) {
+            int words = arena.words;
+            int place = 2 * pairCount * words;
+            if (pairCount >= MOST_PAIRS) {
+                return;
+            }
+            if (place + 2 * words > pairs.length) {
+                pairs = Arrays.copyOf(pairs, 2 * pairs.length);
+            }
+            System.arraycopy(one, oneBase, pairs, place, words);
+            System.arraycopy(other, otherBase, pairs, place + words, words);
+            pairCount++;
+        }
+    }
+
+    /** Sets of blocks, like ones once, each with how many rows come to it. */
+    private static final class SetTable {
+        /** 32 labels, four times: no more rows, and so no more sets, are ever put in. */
+        private static final int MOST_SETS = 1 << 20;
+
+        long[] sets = new long[64 * STATE_WORDS];
+        int[] weights = new int[64];
+        /** Numbers of sets, 1 more each, by their hashes; always twice as many as weights. */
+        private int[] places = new int[128];
+        private int words;
+        int count;
+
+        void begin(int wordsOfSet) {
+            words = wordsOfSet;
+            count = 0;
+            Arrays.fill(places, 0);
+        }
+
+        void put(long[] from, int base, int weight) {
+            if (count >= weights.length) {
+                widen();
+            }
+            int place = placeOf(from, base);
+            int number = places[place] - 1;
+            if (number >= 0) {
+                weights[number] += weight;
+            } else if (count < weights.length) {
+                System.arraycopy(from, base, sets, count * words, words);
+                weights[count] = weight;
+                count++;
+                places[place] = count;
+            }
+        }
+
+        /** The place of a set like this one, or the free one where it belongs. */
+        private int placeOf(long[] from, int base) {
+            long hash = mixed(words, from, base, words);
+            int mask = places.length - 1;
+            int place = (int) (hash ^ hash >>> 32) & mask;
+            for (int tries = 0; tries <= mask && places[place] > 0; tries++) {
+                if (isSame(sets, (places[place] - 1) * words, from, base, words)) {
+                    return place;
+                }
+                place = place + 1 & mask;
+            }
+            return place;
+        }
+
+        private void widen() {
+            if (weights.length >= MOST_SETS) {
+                return;
+            }
+            sets = Arrays.copyOf(sets, 2 * sets.length);
+            weights = Arrays.copyOf(weights, 2 * weights.length);
+            places = new int[2 * places.length];
+            for (int number = 0; number < count; number++) {
+                places[placeOf(sets, number * words)] = number + 1;
+            }
+        }
+    }
+
+    /** Pairs of a state of each of two graphs: those are struck out, one by one, that cannot answer a step. */
+    private static final class PairGame {
+        private static final int UNSEEN = 0;
+        private static final int KEPT_PAIR = 1;
+        private static final int STRUCK = 2;
+
+        private final byte[] marks = new byte[MOST_STATES * MOST_STATES];
+        private final int[] found = new int[MOST_STATES * MOST_STATES];
+        private int foundCount;
+
+        /** Whether the answering graph copies the asking one and, if both ways, the other way round too. */
+        boolean survives(Network asking, Network answering, boolean bothWays) {
+            forgetPairs();
+            find(0, 0);
+            for (int at = 0; at < foundCount; at++) {
+                findBehind(asking, found[at] / MOST_STATES, answering, found[at] % MOST_STATES);
+            }
+            boolean struck = true;
+            for (int pass = 0; pass <= foundCount && struck && marks[0] == KEPT_PAIR; pass++) {
+                struck = false;
+                for (int at = foundCount - 1; at >= 0; at--) {
+                    if (marks[found[at]] == KEPT_PAIR && !stands(asking, answering, found[at], bothWays)) {
+                        marks[found[at]] = STRUCK;
+                        struck = true;
+                    }
+                }
+            }
+            return marks[0] == KEPT_PAIR;
+        }
+
+        private void forgetPairs() {
+            for (int at = 0; at < foundCount; at++) {
+                marks[found[at]] = UNSEEN;
+            }
+            foundCount = 0;
+        }
+
+        private void find(int one, int other) {
+            int pair = one * MOST_STATES + other;
+            if (marks[pair] == UNSEEN) {
+                marks[pair] = KEPT_PAIR;
+                found[foundCount] = pair;
+                foundCount++;
+            }
+        }
+
+        /** Only pairs behind like labels are ever asked for. */
+        private void findBehind(Network asking, int one, Network answering, int other) {
+            int end = answering.start[other + 1];
+            for (int place = asking.start[one]; place < asking.start[one + 1]; place++) {
+                int slot = asking.slotAt(place);
+                int answer = answering.placeFrom(other, slot);
+                for (; answer < end && answering.slotAt(answer) == slot; answer++) {
+                    find(asking.targetAt(place), answering.targetAt(answer));
+                }
+            }
+        }
+
+        private boolean stands(Network asking, Network answering, int pair, boolean bothWays) {
+            int one = pair / MOST_STATES;
+            int other = pair % MOST_STATES;
+            return answersAll(asking, one, answering, other, false)
+                    && (!bothWays || answersAll(answering, other, asking, one, true));
+        }
+
+        private boolean answersAll(Network asking, int one, Network answering, int other, boolean turned) {
+            for (int place = asking.start[one]; place < asking.start[one + 1]; place++) {
+                if (!answers(asking.slotAt(place), asking.targetAt(place), answering, other, turned)) {
+                    return false;
+                }
+            }
+            return true;
+        }
+
+        private boolean answers(int slot, int target, Network answering, int other, boolean turned) {
+            int end = answering.start[other + 1];
+            int place = answering.placeFrom(other, slot);
+            for (; place < end && answering.slotAt(place) == slot; place++) {
+                int answer = answering.targetAt(place);
+                int pair = turned ? answer * MOST_STATES + target : target * MOST_STATES + answer;
+                if (marks[pair] == KEPT_PAIR) {
+                    return true;
+                }
+            }
+            return false;
+        }
+    }
+
+    /** The formulas, and in which states of the graph that was asked last they hold. */
+    private static final class FormulaBook {
+        static final int TRUE = 0;
+        static final int NOT = 1;
+        static final int BOTH = 2;
+        static final int STEP = 3;
+        static final int WEAK_STEP = 4;
+        static final int REACH = 5;
+        private static final int WORK_ROW = MOST_FORMULAS * STATE_WORDS;
+
+        private final int[] kinds = new int[MOST_FORMULAS];
+        private final int[] slots = new int[MOST_FORMULAS];
+        private final int[] ones = new int[MOST_FORMULAS];
+        private final int[] others = new int[MOST_FORMULAS];
+        final int[] depths = new int[MOST_FORMULAS];
+        private final boolean[] isNeeded = new boolean[MOST_FORMULAS];
+        private final boolean[] wasTrue = new boolean[MOST_FORMULAS];
+        /** A row of bits for each formula, and one more to work on. */
+        private final long[] truth = new long[(MOST_FORMULAS + 1) * STATE_WORDS];
+        private int stateCount;
+        /** The formula that is true everywhere, number 0, is there from the first. */
+        int count = 1;
+
+        int put(int kind, int slot, int one, int other, int depth) {
+            kinds[count] = kind;
+            slots[count] = slot;
+            ones[count] = one;
+            others[count] = other;
+            depths[count] = depth;
+            count++;
+            return count - 1;
+        }
+
+        boolean isTrue(int formula, int state) {
+            return hasBit(truth, formula * STATE_WORDS, state);
+        }
+
+        int trueStates(int formula) {
+            int result = 0;
+            for (int word = 0; word < STATE_WORDS; word++) {
+                result += Long.bitCount(truth[formula * STATE_WORDS + word]);
+            }
+            return result;
+        }
+
+        void judge(Network graph, int formula) {
+            for (int each = 0; each < count; each++) {
+                isNeeded[each] = each == formula;
+            }
+            judgeNeeded(graph);
+        }
+
+        /** The lowest formula that just one of two first states holds, -1 if there is none. */
+        int firstUnlike(Network first, Network second) {
+            for (int formula = 0; formula < count; formula++) {
+                isNeeded[formula] = true;
+            }
+            judgeNeeded(first);
+            for (int formula = 0; formula < count; formula++) {
+                wasTrue[formula] = isTrue(formula, 0);
+            }
+            judgeNeeded(second);
+            for (int formula = 0; formula < count; formula++) {
+                if (wasTrue[formula] != isTrue(formula, 0)) {
+                    return formula;
+                }
+            }
+            return -1;
+        }
+
+        /** A formula is made of earlier ones, so that rising numbers judge these first. */
+        private void judgeNeeded(Network graph) {
+            stateCount = graph.stateCount;
+            for (int formula = count - 1; formula > 0; formula--) {
+                if (isNeeded[formula]) {
+                    isNeeded[ones[formula]] = true;
+                    isNeeded[others[formula]] = true;
+                }
+            }
+            for (int formula = 0; formula < count; formula++) {
+                if (isNeeded[formula]) {
+                    judgeOne(graph, formula);
+                }
+            }
+        }
+
+        private void judgeOne(Network graph, int formula) {
+            int row = formula * STATE_WORDS;
+            int one = ones[formula] * STATE_WORDS;
+            int other = others[formula] * STATE_WORDS;
+            switch (kinds[formula]) {
+                case TRUE:
+                    Arrays.fill(truth, row, row + STATE_WORDS, 0L);
+                    turn(row, row);
+                    break;
+                case NOT:
+                    turn(one, row);
+                    break;
+                case BOTH:
+                    for (int word = 0; word < STATE_WORDS; word++) {
+                        truth[row + word] = truth[one + word] & truth[other + word];
+                    }
+                    break;
+                case STEP:
+                    stepBack(graph, slots[formula], one, row);
+                    break;
+                case WEAK_STEP:
+                    System.arraycopy(truth, one, truth, row, STATE_WORDS);
+                    spreadBack(graph, row, 0);
+                    if (slots[formula] != 0) {
+                        System.arraycopy(truth, row, truth, WORK_ROW, STATE_WORDS);
+                        stepBack(graph, slots[formula], WORK_ROW, row);
+                        spreadBack(graph, row, 0);
+                    }
+                    break;
+                default:
+                    System.arraycopy(truth, one, truth, row, STATE_WORDS);
+                    spreadBack(graph, row, SLOTS);
+                    break;
+            }
+        }
+
+        private void turn(int from, int into) {
+            for (int word = 0; word < STATE_WORDS; word++) {
+                int states = Math.max(0, Math.min(64, stateCount - 64 * word));
+                long all = states == 64 ? -1L : (1L << states) - 1;
+                truth[into + word] = ~truth[from + word] & all;
+            }
+        }
+
+        /** Writes the states with a step to a state of the other row. */
+        private void stepBack(Network graph, int slot, int from, int into) {
+            Arrays.fill(truth, into, into + STATE_WORDS, 0L);
+            for (int state = 0; state < stateCount; state++) {
+                if (stepsInto(graph, state, slot, slot, from)) {
+                    setBit(truth, into, state);
+                }
+            }
+        }
+
+        /** Adds to a row the states that come into it by steps with slots up to the last one. */
+        private void spreadBack(Network graph, int row, int lastSlot) {
+            boolean grew = true;
+            for (int pass = 0; pass <= stateCount && grew; pass++) {
+                grew = false;
+                for (int state = stateCount - 1; state >= 0; state--) {
+                    if (!hasBit(truth, row, state) && stepsInto(graph, state, 0, lastSlot, row)) {
+                        setBit(truth, row, state);
+                        grew = true;
+                    }
+                }
+            }
+        }
+
+        private boolean stepsInto(Network graph, int state, int firstSlot, int lastSlot, int row) {
+            int end = graph.start[state + 1];
+            int place = graph.placeFrom(state, firstSlot);
+            for (; place < end && graph.slotAt(place) <= lastSlot; place++) {
+                if (hasBit(truth, row, graph.targetAt(place))) {
+                    return true;
+                }
+            }
+            return false;
+        }
+    }
+
+    /** A system and a tester beside each other: the states of both that can be come to. */
+    private static final class Bench {
+        /** For each pair of states its number, 1 more. */
+        private final int[] numbers = new int[MOST_STATES * MOST_STATES];
+        private final int[] pairs = new int[MOST_OF_BOTH];
+        private final long[] leads = new long[MOST_OF_BOTH * BOTH_WORDS];
+        private final boolean[] isContent = new boolean[MOST_OF_BOTH];
+        private final boolean[] comesToContent = new boolean[MOST_OF_BOTH];
+        private int count;
+        private boolean fits;
+
+        /** Whether there are not too many states. */
+        boolean explore(Network tested, Network tester) {
+            begin();
+            numberOf(0, 0);
+            for (int at = 0; at < count && fits; at++) {
+                Arrays.fill(leads, at * BOTH_WORDS, (at + 1) * BOTH_WORDS, 0L);
+                lookAround(at, tested, tester);
+            }
+            return fits;
+        }
+
+        void markContent(Network tester, int agent) {
+            for (int at = 0; at < count; at++) {
+                int code = tester.codes[pairs[at] % MOST_STATES];
+                isContent[at] = false;
+                for (int part = 0; part < tester.partCount; part++) {
+                    if ((code >> tester.shiftOf(part) + 2 & 15) == agent) {
+                        isContent[at] = true;
+                    }
+                }
+            }
+        }
+
+        boolean canContent() {
+            for (int at = 0; at < count; at++) {
+                if (isContent[at]) {
+                    return true;
+                }
+            }
+            return false;
+        }
+
+        /** Grows from content states to those all of whose steps come to such: loops and ends stay out. */
+        boolean alwaysContents() {
+            boolean grew = true;
+            for (int at = 0; at < count; at++) {
+                comesToContent[at] = isContent[at];
+            }
+            for (int pass = 0; pass <= count && grew && !comesToContent[0]; pass++) {
+                grew = false;
+                for (int at = count - 1; at >= 0; at--) {
+                    if (!comesToContent[at] && mustComeToContent(at)) {
+                        comesToContent[at] = true;
+                        grew = true;
+                    }
+                }
+            }
+            return comesToContent[0];
+        }
+
+        private boolean mustComeToContent(int at) {
+            int base = at * BOTH_WORDS;
+            for (int word = 0; word < BOTH_WORDS; word++) {
+                for (long left = leads[base + word]; left != 0; left &= left - 1) {
+                    if (!comesToContent[64 * word + lowestBit(left)]) {
+                        return false;
+                    }
+                }
+            }
+            return !isEmpty(leads, base, BOTH_WORDS);
+        }
+
+        private void begin() {
+            for (int at = 0; at < count; at++) {
+                numbers[pairs[at]] = 0;
+            }
+            count = 0;
+            fits = true;
+        }
+
+        /** The number of a pair of states, -1 if there are too many. */
+        private int numberOf(int tested, int tester) {
+            int pair = tested * MOST_STATES + tester;
+            if (numbers[pair] == 0) {
+                if (count >= MOST_OF_BOTH) {
+                    fits = false;
+                    return -1;
+                }
+                pairs[count] = pair;
+                count++;
+                numbers[pair] = count;
+            }
+            return numbers[pair] - 1;
+        }
+
+        private void putLead(int at, int tested, int tester) {
+            int number = numberOf(tested, tester);
+            if (number >= 0) {
+                setBit(leads, at * BOTH_WORDS, number);
+            }
+        }
+
+        private void lookAround(int at, Network tested, Network tester) {
+            int one = pairs[at] / MOST_STATES;
+            int other = pairs[at] % MOST_STATES;
+            for (int place = tested.start[one]; place < tested.start[one + 1] && fits; place++) {
+                int slot = tested.slotAt(place);
+                if (slot == 0) {
+                    putLead(at, tested.targetAt(place), other);
+                } else {
+                    meet(at, slot, tested.targetAt(place), tester, other);
+                }
+            }
+            int end = tester.start[other + 1];
+            for (int place = tester.start[other]; place < end && tester.slotAt(place) == 0 && fits; place++) {
+                putLead(at, one, tester.targetAt(place));
+            }
+        }
+
+        /** Sending meets receiving with the same names, and the other way round. */
+        private void meet(int at, int slot, int target, Network tester, int other) {
+            int partner = slot < FIRST_RECEIVING ? slot + SLOTS_OF_A_KIND : slot - SLOTS_OF_A_KIND;
+            int end = tester.start[other + 1];
+            int place = tester.placeFrom(other, partner);
+            for (; place < end && tester.slotAt(place) == partner && fits; place++) {
+                putLead(at, target, tester.targetAt(place));
+            }
+        }
+    }
+}
