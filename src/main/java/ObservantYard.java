@@ -675,6 +675,11 @@ public final class ObservantYard {
             return nextBefore;
         }
 
+        /** The place behind an agent's last branch. */
+        int endOf(int agent) {
+            return agent * MOST_BRANCHES + branchCounts[agent];
+        }
+
         int channelOf(int place, int kept) {
             return channels[place] == KEPT ? kept : channels[place];
         }
@@ -684,7 +689,7 @@ public final class ObservantYard {
         }
 
         boolean receives(int place, int name) {
-            return values[place] == KEPT || values[place] == name;
+            return kinds[place] == 'i' && (values[place] == KEPT || values[place] == name);
         }
 
         int keptAfter(int place, int kept, int name) {
@@ -777,7 +782,7 @@ public final class ObservantYard {
         int placeFrom(int state, int slot) {
             int low = start[state];
             int high = start[state + 1];
-            while (low < high) {
+            for (int halvings = 0; halvings < 32 && low < high; halvings++) {
                 int middle = low + high >> 1;
                 if (steps[middle] >> 8 < slot) {
                     low = middle + 1;
@@ -881,7 +886,7 @@ public final class ObservantYard {
         int placeOf(int item) {
             int low = 0;
             int high = count;
-            while (low < high) {
+            for (int halvings = 0; halvings < 32 && low < high; halvings++) {
                 int middle = low + high >> 1;
                 if (items[middle] < item) {
                     low = middle + 1;
@@ -929,10 +934,11 @@ public final class ObservantYard {
             network.beginGraph(code);
             numbers.count = 0;
             numbers.put(code << 8);
-            for (int state = 0; state < network.stateCount && network.fits; state++) {
+            for (int state = 0; state < MOST_STATES && state < network.stateCount && network.fits; state++) {
                 leads.count = 0;
                 for (int part = 0; part < network.partCount; part++) {
                     stepAlone(network, network.codes[state], network.shiftOf(part));
+                    receiveAlone(network, network.codes[state], network.shiftOf(part));
                     for (int other = 0; other < network.partCount; other++) {
                         if (other != part) {
                             meet(network.codes[state], network.shiftOf(part), network.shiftOf(other));
@@ -976,15 +982,13 @@ public final class ObservantYard {
         private void stepAlone(Network network, int code, int shift) {
             int agent = code >> shift + 2 & 15;
             int kept = code >> shift & 3;
-            int base = agent * MOST_BRANCHES;
-            for (int place = base; place < base + equations.branchCounts[agent]; place++) {
+            int end = equations.endOf(agent);
+            for (int place = agent * MOST_BRANCHES; place < end; place++) {
                 char kind = equations.kinds[place];
                 int channel = equations.channelOf(place, kept);
                 int name = equations.valueOf(place, kept);
                 int after = changed(code, shift, equations.nexts[place], kept);
-                if (kind == 'i') {
-                    receive(network, code, shift, place);
-                } else if (kind == 't' || kind == 'e' && name == kept) {
+                if (kind == 't' || kind == 'e' && name == kept) {
                     leads.put(after);
                 } else if (kind == 'o' && !network.hidden[channel] && !network.hidden[name]) {
                     leads.put(FIRST_SENDING + NAMES * channel + name << CODE_BITS | after);
@@ -992,38 +996,38 @@ public final class ObservantYard {
             }
         }
 
-        private void receive(Network network, int code, int shift, int place) {
+        private void receiveAlone(Network network, int code, int shift) {
+            int agent = code >> shift + 2 & 15;
             int kept = code >> shift & 3;
-            int channel = equations.channelOf(place, kept);
-            for (int name = 0; name < NAMES && !network.hidden[channel]; name++) {
-                if (!network.hidden[name] && equations.receives(place, name)) {
-                    int after = changed(code, shift, equations.nexts[place], equations.keptAfter(place, kept, name));
-                    leads.put(FIRST_RECEIVING + NAMES * channel + name << CODE_BITS | after);
+            int end = equations.endOf(agent);
+            for (int place = agent * MOST_BRANCHES; place < end; place++) {
+                int channel = equations.channelOf(place, kept);
+                for (int name = 0; name < NAMES; name++) {
+                    if (!network.hidden[channel] && !network.hidden[name] && equations.receives(place, name)) {
+                        int keptAfter = equations.keptAfter(place, kept, name);
+                        int after = changed(code, shift, equations.nexts[place], keptAfter);
+                        leads.put(FIRST_RECEIVING + NAMES * channel + name << CODE_BITS | after);
+                    }
                 }
             }
         }
 
+        /** Hidden names are passed on here as all others are. */
         private void meet(int code, int sender, int receiver) {
-            int agent = code >> sender + 2 & 15;
             int kept = code >> sender & 3;
-            int base = agent * MOST_BRANCHES;
-            for (int place = base; place < base + equations.branchCounts[agent]; place++) {
-                if (equations.kinds[place] == 'o') {
-                    int sent = changed(code, sender, equations.nexts[place], kept);
-                    handOver(sent, receiver, equations.channelOf(place, kept), equations.valueOf(place, kept));
-                }
-            }
-        }
-
-        /** In this code the sender has gone on already. */
-        private void handOver(int code, int receiver, int channel, int name) {
-            int agent = code >> receiver + 2 & 15;
-            int kept = code >> receiver & 3;
-            int base = agent * MOST_BRANCHES;
-            for (int place = base; place < base + equations.branchCounts[agent]; place++) {
-                if (equations.kinds[place] == 'i' && equations.channelOf(place, kept) == channel
-                        && equations.receives(place, name)) {
-                    leads.put(changed(code, receiver, equations.nexts[place], equations.keptAfter(place, kept, name)));
+            int keptThere = code >> receiver & 3;
+            int sending = code >> sender + 2 & 15;
+            int receiving = code >> receiver + 2 & 15;
+            for (int place = sending * MOST_BRANCHES; place < equations.endOf(sending); place++) {
+                int name = equations.valueOf(place, kept);
+                int sent = changed(code, sender, equations.nexts[place], kept);
+                int end = equations.kinds[place] == 'o' ? equations.endOf(receiving) : 0;
+                for (int partner = receiving * MOST_BRANCHES; partner < end; partner++) {
+                    if (equations.channelOf(place, kept) == equations.channelOf(partner, keptThere)
+                            && equations.receives(partner, name)) {
+                        int keptAfter = equations.keptAfter(partner, keptThere, name);
+                        leads.put(changed(sent, receiver, equations.nexts[partner], keptAfter));
+                    }
                 }
             }
         }
@@ -1122,11 +1126,13 @@ public final class ObservantYard {
                 reachShowing();
             }
             for (int round = 1; round <= arena.stateCount; round++) {
-                boolean split = refine(kind);
+                int countBefore = blockCount;
+                signAll(kind);
+                numberBlocks();
                 if (blocks[one] != blocks[other]) {
                     return round;
                 }
-                if (!split) {
+                if (blockCount == countBefore) {
                     return -1;
                 }
             }
@@ -1150,7 +1156,7 @@ public final class ObservantYard {
             return SLOTS;
         }
 
-        private boolean refine(char kind) {
+        private void signAll(char kind) {
             Arrays.fill(signs, 0, arena.stateCount * signWords, 0L);
             for (int state = 0; state < arena.stateCount; state++) {
                 if (kind == 'w') {
@@ -1161,14 +1167,11 @@ public final class ObservantYard {
                     signStrongly(state);
                 }
             }
-            System.arraycopy(blocks, 0, before, 0, arena.stateCount);
-            int countBefore = blockCount;
-            numberBlocks();
-            return blockCount > countBefore;
         }
 
         /** Numbers blocks by their first states, so that a round without a split leaves all numbers. */
         private void numberBlocks() {
+            System.arraycopy(blocks, 0, before, 0, arena.stateCount);
             Arrays.fill(heads, -1);
             blockCount = 0;
             for (int state = 0; state < arena.stateCount; state++) {
@@ -1207,8 +1210,10 @@ public final class ObservantYard {
             for (int label = 0; label < arena.labelCount; label++) {
                 int row = base + label * arena.words;
                 for (int word = 0; word < arena.words; word++) {
-                    for (long left = reached[row + word]; left != 0; left &= left - 1) {
+                    long left = reached[row + word];
+                    for (int turn = 0; turn < 64 && left != 0; turn++) {
                         setBit(signs, row, blocks[64 * word + lowestBit(left)]);
+                        left &= left - 1;
                     }
                 }
             }
@@ -1221,7 +1226,7 @@ public final class ObservantYard {
             setBit(seen, 0, state);
             stack[0] = state;
             int found = 1;
-            for (int at = 0; at < found; at++) {
+            for (int at = 0; at < found && at < stack.length; at++) {
                 int here = stack[at];
                 for (int place = arena.start[here]; place < arena.start[here + 1]; place++) {
                     int target = arena.targetAt(place);
@@ -1244,7 +1249,7 @@ public final class ObservantYard {
                 setBit(reached, row, state);
                 stack[0] = state;
                 int found = 1;
-                for (int at = 0; at < found; at++) {
+                for (int at = 0; at < found && at < stack.length; at++) {
                     int here = stack[at];
                     int end = arena.start[here + 1];
                     for (int place = arena.start[here]; place < end && arena.labelAt(place) == 0; place++) {
@@ -1263,8 +1268,10 @@ public final class ObservantYard {
             for (int state = 0; state < arena.stateCount; state++) {
                 int base = state * signWords;
                 for (int word = 0; word < arena.words; word++) {
-                    for (long left = reached[base + word]; left != 0; left &= left - 1) {
+                    long left = reached[base + word];
+                    for (int turn = 0; turn < 64 && left != 0; turn++) {
                         addShown(base, 64 * word + lowestBit(left));
+                        left &= left - 1;
                     }
                 }
             }
@@ -1295,6 +1302,8 @@ public final class ObservantYard {
         private final long[] afterOther = new long[SLOTS * WIDE_WORDS];
         private final long[] grown = new long[WIDE_WORDS];
         private final long[] grownOther = new long[WIDE_WORDS];
+        /** For each block a bit for each label that it can show, after silent steps, too. */
+        private final long[] shown = new long[MOST_SIDE_BY_SIDE];
         private long[] pairs = new long[64 * 2 * WIDE_WORDS];
         private int pairCount;
         private SetTable level = new SetTable();
@@ -1312,7 +1321,7 @@ public final class ObservantYard {
             int words = arena.words;
             pairCount = 0;
             putPair(refiner.signs, one * refiner.signWords, refiner.signs, other * refiner.signWords);
-            for (int at = 0; at < pairCount; at++) {
+            for (int at = 0; at < pairCount && at < MOST_PAIRS; at++) {
                 follow(pairs, 2 * at * words, after);
                 follow(pairs, (2 * at + 1) * words, afterOther);
                 for (int label = 1; label < arena.labelCount; label++) {
@@ -1331,46 +1340,80 @@ public final class ObservantYard {
 
         /** Each row of labels comes to just one set, so that rows are counted by sets. */
         int rowsOfLength(int state, int length) {
-            int words = arena.words;
-            level.begin(words);
+            noteShown();
+            if (length == 1) {
+                return labelsOf(refiner.signs, state * refiner.signWords);
+            }
+            level.begin(arena.words);
             level.put(refiner.signs, state * refiner.signWords, 1);
-            for (int done = 1; done < length; done++) {
-                nextLevel.begin(words);
-                for (int at = 0; at < level.count; at++) {
-                    follow(level.sets, at * words, after);
-                    for (int label = 1; label < arena.labelCount; label++) {
-                        if (!isEmpty(after, label * words, words)) {
-                            nextLevel.put(after, label * words, level.weights[at]);
-                        }
-                    }
-                }
-                SetTable swapped = level;
-                level = nextLevel;
-                nextLevel = swapped;
+            for (int done = 2; done < length; done++) {
+                goOn();
             }
             return rowsBehindLevel();
         }
 
+        private void goOn() {
+            int words = arena.words;
+            nextLevel.begin(words);
+            for (int at = 0; at < level.count; at++) {
+                follow(level.sets, at * words, after);
+                for (int label = 1; label < arena.labelCount; label++) {
+                    if (!isEmpty(after, label * words, words)) {
+                        nextLevel.put(after, label * words, level.weights[at]);
+                    }
+                }
+            }
+            SetTable swapped = level;
+            level = nextLevel;
+            nextLevel = swapped;
+        }
+
+        /** The last two labels need no sets to be kept. */
         private int rowsBehindLevel() {
             int result = 0;
             for (int at = 0; at < level.count; at++) {
                 follow(level.sets, at * arena.words, after);
                 for (int label = 1; label < arena.labelCount; label++) {
-                    if (!isEmpty(after, label * arena.words, arena.words)) {
-                        result += level.weights[at];
-                    }
+                    result += level.weights[at] * labelsOf(after, label * arena.words);
                 }
             }
             return result;
+        }
+
+        private void noteShown() {
+            for (int block = 0; block < refiner.blockCount; block++) {
+                int base = refiner.models[block] * refiner.signWords;
+                shown[block] = 0;
+                for (int label = 1; label < arena.labelCount; label++) {
+                    if (!isEmpty(refiner.signs, base + label * arena.words, arena.words)) {
+                        shown[block] |= 1L << label;
+                    }
+                }
+            }
+        }
+
+        /** How many labels can be shown next from a set. */
+        private int labelsOf(long[] sets, int base) {
+            long labels = 0;
+            for (int word = 0; word < arena.words; word++) {
+                long left = sets[base + word];
+                for (int turn = 0; turn < 64 && left != 0; turn++) {
+                    labels |= shown[64 * word + lowestBit(left)];
+                    left &= left - 1;
+                }
+            }
+            return Long.bitCount(labels);
         }
 
         /** Writes, for each label, the set that is come to from a set. */
         private void follow(long[] sets, int base, long[] into) {
             Arrays.fill(into, 0, refiner.signWords, 0L);
             for (int word = 0; word < arena.words; word++) {
-                for (long left = sets[base + word]; left != 0; left &= left - 1) {
+                long left = sets[base + word];
+                for (int turn = 0; turn < 64 && left != 0; turn++) {
                     int model = refiner.models[64 * word + lowestBit(left)];
                     unite(into, 0, refiner.signs, model * refiner.signWords, refiner.signWords);
+                    left &= left - 1;
                 }
             }
         }
@@ -1423,8 +1466,8 @@ public final class ObservantYard {
 
     /** Sets of blocks, like ones once, each with how many rows come to it. */
     private static final class SetTable {
-        /** 32 labels, four times: no more rows, and so no more sets, are ever put in. */
-        private static final int MOST_SETS = 1 << 20;
+        /** 32 labels, three times: no more rows, and so no more sets, are ever put in. */
+        private static final int MOST_SETS = 1 << 15;
 
         long[] sets = new long[64 * STATE_WORDS];
         int[] weights = new int[64];
@@ -1496,7 +1539,7 @@ public final class ObservantYard {
         boolean survives(Network asking, Network answering, boolean bothWays) {
             forgetPairs();
             find(0, 0);
-            for (int at = 0; at < foundCount; at++) {
+            for (int at = 0; at < foundCount && at < found.length; at++) {
                 findBehind(asking, found[at] / MOST_STATES, answering, found[at] % MOST_STATES);
             }
             boolean struck = true;
@@ -1615,24 +1658,33 @@ public final class ObservantYard {
             return result;
         }
 
+        /** A formula is made of earlier ones, so that rising numbers judge these first. */
         void judge(Network graph, int formula) {
-            for (int each = 0; each < count; each++) {
-                isNeeded[each] = each == formula;
+            for (int each = 0; each < formula; each++) {
+                isNeeded[each] = false;
             }
-            judgeNeeded(graph);
+            isNeeded[formula] = true;
+            for (int each = formula; each > 0; each--) {
+                if (isNeeded[each]) {
+                    isNeeded[ones[each]] = true;
+                    isNeeded[others[each]] = true;
+                }
+            }
+            for (int each = 0; each <= formula; each++) {
+                if (isNeeded[each]) {
+                    judgeOne(graph, each);
+                }
+            }
         }
 
         /** The lowest formula that just one of two first states holds, -1 if there is none. */
         int firstUnlike(Network first, Network second) {
             for (int formula = 0; formula < count; formula++) {
-                isNeeded[formula] = true;
-            }
-            judgeNeeded(first);
-            for (int formula = 0; formula < count; formula++) {
+                judgeOne(first, formula);
                 wasTrue[formula] = isTrue(formula, 0);
             }
-            judgeNeeded(second);
             for (int formula = 0; formula < count; formula++) {
+                judgeOne(second, formula);
                 if (wasTrue[formula] != isTrue(formula, 0)) {
                     return formula;
                 }
@@ -1640,23 +1692,8 @@ public final class ObservantYard {
             return -1;
         }
 
-        /** A formula is made of earlier ones, so that rising numbers judge these first. */
-        private void judgeNeeded(Network graph) {
-            stateCount = graph.stateCount;
-            for (int formula = count - 1; formula > 0; formula--) {
-                if (isNeeded[formula]) {
-                    isNeeded[ones[formula]] = true;
-                    isNeeded[others[formula]] = true;
-                }
-            }
-            for (int formula = 0; formula < count; formula++) {
-                if (isNeeded[formula]) {
-                    judgeOne(graph, formula);
-                }
-            }
-        }
-
         private void judgeOne(Network graph, int formula) {
+            stateCount = graph.stateCount;
             int row = formula * STATE_WORDS;
             int one = ones[formula] * STATE_WORDS;
             int other = others[formula] * STATE_WORDS;
@@ -1751,7 +1788,7 @@ public final class ObservantYard {
         boolean explore(Network tested, Network tester) {
             begin();
             numberOf(0, 0);
-            for (int at = 0; at < count && fits; at++) {
+            for (int at = 0; at < count && at < MOST_OF_BOTH && fits; at++) {
                 Arrays.fill(leads, at * BOTH_WORDS, (at + 1) * BOTH_WORDS, 0L);
                 lookAround(at, tested, tester);
             }
@@ -1800,10 +1837,12 @@ public final class ObservantYard {
         private boolean mustComeToContent(int at) {
             int base = at * BOTH_WORDS;
             for (int word = 0; word < BOTH_WORDS; word++) {
-                for (long left = leads[base + word]; left != 0; left &= left - 1) {
+                long left = leads[base + word];
+                for (int turn = 0; turn < 64 && left != 0; turn++) {
                     if (!comesToContent[64 * word + lowestBit(left)]) {
                         return false;
                     }
+                    left &= left - 1;
                 }
             }
             return !isEmpty(leads, base, BOTH_WORDS);
