@@ -260,13 +260,13 @@ public final class ModelTest {
 
     public static void main(String[] args) {
         String[] kinds = {"teoi", "ttoi", "to", "oi", "too", "teei", "ttttoi"};
-        for (long seed = 1; seed <= 400; seed++) {
+        for (long seed = 1; seed <= 1000; seed++) {
             ModelTest test = new ModelTest(seed, 24);
             int agents = 1 + test.random.nextInt(6);
             test.run(agents, agents + test.random.nextInt(2 * agents + 1), kinds[(int) (seed % kinds.length)],
                     1 + test.random.nextInt(4), 250);
         }
-        for (long seed = 1001; seed <= 1012; seed++) {
+        for (long seed = 10001; seed <= 10200; seed++) {
             ModelTest test = new ModelTest(seed, 150);
             test.run(5 + test.random.nextInt(11), 20 + test.random.nextInt(30), kinds[(int) (seed % kinds.length)],
                     1 + test.random.nextInt(3), 60);

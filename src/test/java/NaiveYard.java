@@ -42,13 +42,28 @@ final class NaiveYard {
     static final class Graph {
         final List<List<Integer>> states = new ArrayList<>();
         final List<List<Step>> steps = new ArrayList<>();
+        private final Map<Integer, Set<Integer>> kept = new HashMap<>();
+        final Map<Integer, Boolean> judged = new HashMap<>();
         boolean tooMany;
 
         int size() {
             return states.size();
         }
 
+        /** What was asked once is kept: all else would take too long. */
         Set<Integer> silently(int state) {
+            return weakly(state, 0);
+        }
+
+        Set<Integer> weakly(int state, int label) {
+            int key = 1000 * state + label;
+            if (!kept.containsKey(key)) {
+                kept.put(key, label == 0 ? walkSilently(state) : walkWeakly(state, label));
+            }
+            return kept.get(key);
+        }
+
+        private Set<Integer> walkSilently(int state) {
             Set<Integer> seen = new TreeSet<>();
             ArrayDeque<Integer> open = new ArrayDeque<>();
             open.add(state);
@@ -63,10 +78,7 @@ final class NaiveYard {
             return seen;
         }
 
-        Set<Integer> weakly(int state, int label) {
-            if (label == 0) {
-                return silently(state);
-            }
+        private Set<Integer> walkWeakly(int state, int label) {
             Set<Integer> result = new TreeSet<>();
             for (int between : silently(state)) {
                 for (Step step : steps.get(between)) {
@@ -739,6 +751,14 @@ final class NaiveYard {
     }
 
     private boolean judged(Graph graph, int state, int number) {
+        int key = 1000 * state + number;
+        if (!graph.judged.containsKey(key)) {
+            graph.judged.put(key, judge(graph, state, number));
+        }
+        return graph.judged.get(key);
+    }
+
+    private boolean judge(Graph graph, int state, int number) {
         Formula formula = formulas.get(number);
         boolean result = formula.kind == 'T';
         if (formula.kind == 'n') {
