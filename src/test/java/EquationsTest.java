@@ -128,6 +128,18 @@ public final class EquationsTest {
         Check.is(x.getLabel(0, 0, 4), 233);
     }
 
+    private static void dropOfLastAgent() {
+        ObservantYard x = withAgents(16);
+        for (int branch = 0; branch < 6; branch++) {
+            x.addBranch(15, 'o', 3, branch % 4, branch);
+        }
+        for (int left = 5; left >= 0; left--) {
+            Check.is(x.dropBranch(15, left > 2 ? 0 : left), left);
+            Check.is(x.countBranches(15), left);
+        }
+        Check.noIndex(() -> x.dropBranch(15, 0));
+    }
+
     private static void lead() {
         ObservantYard x = withAgents(3);
         x.addBranch(0, 'o', 1, 1, 1);
@@ -332,6 +344,7 @@ public final class EquationsTest {
         addBranch();
         dropBranch();
         dropMovesAllOfBranch();
+        dropOfLastAgent();
         lead();
         countBranches();
         addSystem();

@@ -230,6 +230,25 @@ public final class FormulasTest {
         Check.is(x.tellingFormula(0, 1), 2);
     }
 
+    /** The last of forty formulas is the only one that tells two apart. */
+    private static void lastOfForty() {
+        ObservantYard x = small();
+        x.addSystem(1, 0);
+        x.addSystem(0, 0);
+        for (int formula = 1; formula < 39; formula++) {
+            Check.is(x.addNot(0), formula);
+        }
+        Check.noElement(() -> x.tellingFormula(0, 1));
+        Check.is(x.addStep('w', 101, 0), 39);
+        Check.is(x.holds(0, 39), true);
+        Check.is(x.countHolding(0, 39), 1);
+        Check.is(x.holds(1, 39), false);
+        Check.is(x.tellingFormula(0, 1), 39);
+        Check.is(x.tellingFormula(1, 2), 39);
+        Check.noElement(() -> x.tellingFormula(0, 2));
+        Check.is(x.isSound(), true);
+    }
+
     public static void main(String[] args) {
         numbersAndDepths();
         upToDepthEight();
@@ -239,6 +258,7 @@ public final class FormulasTest {
         weakSteps();
         wrongHolds();
         tellingFormula();
+        lastOfForty();
         Check.end();
     }
 }
