@@ -1293,8 +1293,8 @@ public final class ObservantYard {
      * rows, so that sets of them stand for sets of states.
      */
     private static final class TraceWalk {
-        /** Far above what any two systems need: each pair that is kept tells something new. */
-        private static final int MOST_PAIRS = 1 << 16;
+        /** Each pair that is kept tells something new: a long search for systems that need many came to 25,031. */
+        private static final int MOST_PAIRS = 1 << 17;
 
         private final Arena arena;
         private final Refiner refiner;
