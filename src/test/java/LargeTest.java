@@ -269,6 +269,26 @@ public final class LargeTest {
         x.sameTests(tested, tester);
     }
 
+    /** Of two ways out behind the 63 states before them, one is content, the other one is never. */
+    private static void forkBehindMany() {
+        LargeTest x = new LargeTest();
+        x.agents(16);
+        for (int agent = 0; agent < 7; agent++) {
+            x.branch(agent, 't', 0, 0, agent + 1);
+            x.branch(agent + 8, 'i', 0, 0, agent + 9);
+        }
+        x.branch(7, 'o', 0, 0, 0);
+        x.branch(15, 'i', 0, 0, 1);
+        int tested = x.system(0);
+        int tester = x.system(8);
+        Check.is(x.yard.must(tested, tester, 1), true);
+        x.branch(15, 'i', 0, 0, 2);
+        Check.is(x.yard.may(tested, tester, 1), true);
+        Check.is(x.yard.must(tested, tester, 1), false);
+        Check.is(x.yard.must(tested, tester, 2), true);
+        Check.is(x.yard.must(tested, tester, 7), true);
+    }
+
     private void sameTests(int system, int tester) {
         for (int agent = 0; agent < 14; agent++) {
             int content = agent;
@@ -285,6 +305,7 @@ public final class LargeTest {
         manySets();
         mostRows();
         manyOfBoth();
+        forkBehindMany();
         Check.end();
     }
 }
