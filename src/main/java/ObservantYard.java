@@ -39,7 +39,6 @@ public final class ObservantYard {
     private final Equations equations;
     private final Network[] networks;
     private final Builder builder;
-    private final Arena arena;
     private final Refiner refiner;
     private final TraceWalk traceWalk;
     private final PairGame pairGame;
@@ -51,9 +50,8 @@ public final class ObservantYard {
         equations = new Equations();
         networks = new Network[MOST_SYSTEMS];
         builder = new Builder(equations);
-        arena = new Arena();
-        refiner = new Refiner(arena);
-        traceWalk = new TraceWalk(arena, refiner);
+        refiner = new Refiner();
+        traceWalk = new TraceWalk(refiner);
         pairGame = new PairGame();
         formulas = new FormulaBook();
         bench = new Bench();
@@ -498,12 +496,12 @@ public final class ObservantYard {
         return graph.codes[state] >> graph.shiftOf(part) & 63;
     }
 
-    /** Answers the number, in the arena, of the other system's first state. */
+    /** Answers the number, beside the states of the system, of the other one's first state. */
     private int laySideBySide(int system, int other) {
         Network first = fittingGraph(system);
         Network second = fittingGraph(other);
-        arena.begin(first);
-        return system == other ? 0 : arena.join(second);
+        refiner.begin(first);
+        return system == other ? 0 : refiner.join(second);
     }
 
     private boolean likeStates(int one, int other, char kind) {
@@ -526,7 +524,10 @@ public final class ObservantYard {
         bench.markContent(testing, content);
     }
 
-    /** The game is asked apart from the classes, though both refine alike: the document names both. */
+    /**
+     * The game is asked apart from the classes, though both refine alike: the document names both. Traces are
+     * asked behind weak likeness, on whose blocks they stand.
+     */
     private boolean isSoundFor(int system, int other) {
         Network first = networks[system];
         Network second = networks[other];
@@ -535,15 +536,15 @@ public final class ObservantYard {
         if (!first.fits || !second.fits || first.stateCount + second.stateCount > MOST_TO_CHECK) {
             return true;
         }
-        arena.begin(first);
-        int start = arena.join(second);
+        refiner.begin(first);
+        int start = refiner.join(second);
         if (!likeStates(0, start, 's')) {
             return true;
         }
         return pairGame.survives(first, second, true)
                 && likeStates(0, start, 'b')
                 && likeStates(0, start, 'w')
-                && likeStates(0, start, 't')
+                && traceWalk.sameRows(0, start)
                 && refiner.settle('s', 0, start) < 0
                 && formulas.firstUnlike(first, second) < 0;
     }
@@ -587,6 +588,10 @@ public final class ObservantYard {
         words[base + (bit >> 6)] |= 1L << (bit & 63);
     }
 
+    private static void clearBit(long[] words, int base, int bit) {
+        words[base + (bit >> 6)] &= ~(1L << (bit & 63));
+    }
+
     private static boolean isEmpty(long[] words, int base, int length) {
         for (int word = 0; word < length; word++) {
             if (words[base + word] != 0) {
@@ -604,6 +609,15 @@ public final class ObservantYard {
             }
         }
         return true;
+    }
+
+    private static boolean meets(long[] one, int oneBase, long[] other, int otherBase, int length) {
+        for (int word = 0; word < length; word++) {
+            if ((one[oneBase + word] & other[otherBase + word]) != 0) {
+                return true;
+            }
+        }
+        return false;
     }
 
     private static void unite(long[] into, int intoBase, long[] from, int fromBase, int length) {
@@ -625,9 +639,10 @@ public final class ObservantYard {
         long result = hash;
         for (int word = 0; word < length; word++) {
             result = (result ^ words[base + word]) * MIX;
-            result ^= result >>> 29;
+            result ^= result >>> 32;
         }
-        return result;
+        result *= MIX;
+        return result ^ result >>> 29;
     }
 
     /** The agents and their branches, in rows of six. */
@@ -1037,15 +1052,35 @@ public final class ObservantYard {
         }
     }
 
-    /** One graph, or two side by side, with the labels that occur numbered densely, the silent one 0. */
-    private static final class Arena {
-        final int[] start = new int[MOST_SIDE_BY_SIDE + 1];
-        final int[] steps = new int[MOST_SIDE_BY_SIDE * MOST_STEPS];
+    /**
+     * One graph, or two side by side, with the labels that occur numbered densely, the silent one 0. Parts the
+     * states into blocks, round by round: after a round two states share a block if they did before and their
+     * signs, the labels with the blocks that they come to, are the same.
+     */
+    private static final class Refiner {
+        private static final int BUCKETS = 128;
+
+        private final int[] start = new int[MOST_SIDE_BY_SIDE + 1];
+        private final int[] steps = new int[MOST_SIDE_BY_SIDE * MOST_STEPS];
         private final int[] dense = new int[SLOTS];
-        int stateCount;
+        private int stateCount;
         int labelCount;
         /** How many words hold a bit for each state. */
         int words;
+        final int[] blocks = new int[MOST_SIDE_BY_SIDE];
+        private final int[] before = new int[MOST_SIDE_BY_SIDE];
+        /** The first state of each block. */
+        final int[] models = new int[MOST_SIDE_BY_SIDE];
+        private final int[] heads = new int[BUCKETS];
+        private final int[] chain = new int[MOST_SIDE_BY_SIDE];
+        private final int[] stack = new int[MOST_SIDE_BY_SIDE];
+        private final long[] seen = new long[WIDE_WORDS];
+        /** For each state and label the blocks that it comes to; after the last round, of the last blocks. */
+        final long[] signs = new long[MOST_SIDE_BY_SIDE * SLOTS * WIDE_WORDS];
+        /** For each state and label the states that it comes to with silent steps before and behind. */
+        private final long[] reached = new long[MOST_SIDE_BY_SIDE * SLOTS * WIDE_WORDS];
+        int blockCount;
+        int signWords;
 
         void begin(Network graph) {
             Arrays.fill(dense, -1);
@@ -1080,52 +1115,24 @@ public final class ObservantYard {
             return dense[slot];
         }
 
-        int labelAt(int place) {
+        private int labelAt(int place) {
             return steps[place] >> 9;
         }
 
-        int targetAt(int place) {
+        private int targetAt(int place) {
             return steps[place] & 511;
-        }
-    }
-
-    /**
-     * Parts the states of the arena into blocks, round by round: after a round two states share a block
-     * if they did before and their signs, the labels with the blocks that they come to, are the same.
-     */
-    private static final class Refiner {
-        private static final int BUCKETS = 128;
-
-        private final Arena arena;
-        final int[] blocks = new int[MOST_SIDE_BY_SIDE];
-        private final int[] before = new int[MOST_SIDE_BY_SIDE];
-        /** The first state of each block. */
-        final int[] models = new int[MOST_SIDE_BY_SIDE];
-        private final int[] heads = new int[BUCKETS];
-        private final int[] chain = new int[MOST_SIDE_BY_SIDE];
-        private final int[] stack = new int[MOST_SIDE_BY_SIDE];
-        private final long[] seen = new long[WIDE_WORDS];
-        /** For each state and label the blocks that it comes to; after the last round, of the last blocks. */
-        final long[] signs = new long[MOST_SIDE_BY_SIDE * SLOTS * WIDE_WORDS];
-        /** For each state and label the states that it comes to with silent steps before and behind. */
-        private final long[] reached = new long[MOST_SIDE_BY_SIDE * SLOTS * WIDE_WORDS];
-        int blockCount;
-        int signWords;
-
-        Refiner(Arena arena) {
-            this.arena = arena;
         }
 
         /** Answers the round that parts the two states; -1 if none does, then the last blocks stand. */
         int settle(char kind, int one, int other) {
             blockCount = 1;
             Arrays.fill(blocks, 0);
-            signWords = arena.labelCount * arena.words;
+            signWords = labelCount * words;
             if (kind == 'w') {
                 reachSilently();
                 reachShowing();
             }
-            for (int round = 1; round <= arena.stateCount; round++) {
+            for (int round = 1; round <= stateCount; round++) {
                 int countBefore = blockCount;
                 signAll(kind);
                 numberBlocks();
@@ -1137,6 +1144,10 @@ public final class ObservantYard {
                 }
             }
             return -1;
+        }
+
+        int rowOf(int block, int label) {
+            return models[block] * signWords + label * words;
         }
 
         /** The lowest slot of a step of one first state that the other one could not answer one round before. */
@@ -1157,8 +1168,8 @@ public final class ObservantYard {
         }
 
         private void signAll(char kind) {
-            Arrays.fill(signs, 0, arena.stateCount * signWords, 0L);
-            for (int state = 0; state < arena.stateCount; state++) {
+            Arrays.fill(signs, 0, stateCount * signWords, 0L);
+            for (int state = 0; state < stateCount; state++) {
                 if (kind == 'w') {
                     signWeakly(state);
                 } else if (kind == 'b') {
@@ -1171,10 +1182,10 @@ public final class ObservantYard {
 
         /** Numbers blocks by their first states, so that a round without a split leaves all numbers. */
         private void numberBlocks() {
-            System.arraycopy(blocks, 0, before, 0, arena.stateCount);
+            System.arraycopy(blocks, 0, before, 0, stateCount);
             Arrays.fill(heads, -1);
             blockCount = 0;
-            for (int state = 0; state < arena.stateCount; state++) {
+            for (int state = 0; state < stateCount; state++) {
                 long hash = mixed(before[state], signs, state * signWords, signWords);
                 int bucket = (int) (hash ^ hash >>> 32) & BUCKETS - 1;
                 int block = heads[bucket];
@@ -1200,16 +1211,16 @@ public final class ObservantYard {
 
         private void signStrongly(int state) {
             int base = state * signWords;
-            for (int place = arena.start[state]; place < arena.start[state + 1]; place++) {
-                setBit(signs, base + arena.labelAt(place) * arena.words, blocks[arena.targetAt(place)]);
+            for (int place = start[state]; place < start[state + 1]; place++) {
+                setBit(signs, base + labelAt(place) * words, blocks[targetAt(place)]);
             }
         }
 
         private void signWeakly(int state) {
             int base = state * signWords;
-            for (int label = 0; label < arena.labelCount; label++) {
-                int row = base + label * arena.words;
-                for (int word = 0; word < arena.words; word++) {
+            for (int label = 0; label < labelCount; label++) {
+                int row = base + label * words;
+                for (int word = 0; word < words; word++) {
                     long left = reached[row + word];
                     for (int turn = 0; turn < 64 && left != 0; turn++) {
                         setBit(signs, row, blocks[64 * word + lowestBit(left)]);
@@ -1228,11 +1239,11 @@ public final class ObservantYard {
             int found = 1;
             for (int at = 0; at < found && at < stack.length; at++) {
                 int here = stack[at];
-                for (int place = arena.start[here]; place < arena.start[here + 1]; place++) {
-                    int target = arena.targetAt(place);
-                    int label = arena.labelAt(place);
+                for (int place = start[here]; place < start[here + 1]; place++) {
+                    int target = targetAt(place);
+                    int label = labelAt(place);
                     if (label != 0 || blocks[target] != blocks[state]) {
-                        setBit(signs, base + label * arena.words, blocks[target]);
+                        setBit(signs, base + label * words, blocks[target]);
                     } else if (!hasBit(seen, 0, target)) {
                         setBit(seen, 0, target);
                         stack[found] = target;
@@ -1243,17 +1254,17 @@ public final class ObservantYard {
         }
 
         private void reachSilently() {
-            Arrays.fill(reached, 0, arena.stateCount * signWords, 0L);
-            for (int state = 0; state < arena.stateCount; state++) {
+            Arrays.fill(reached, 0, stateCount * signWords, 0L);
+            for (int state = 0; state < stateCount; state++) {
                 int row = state * signWords;
                 setBit(reached, row, state);
                 stack[0] = state;
                 int found = 1;
                 for (int at = 0; at < found && at < stack.length; at++) {
                     int here = stack[at];
-                    int end = arena.start[here + 1];
-                    for (int place = arena.start[here]; place < end && arena.labelAt(place) == 0; place++) {
-                        int target = arena.targetAt(place);
+                    int end = start[here + 1];
+                    for (int place = start[here]; place < end && labelAt(place) == 0; place++) {
+                        int target = targetAt(place);
                         if (!hasBit(reached, row, target)) {
                             setBit(reached, row, target);
                             stack[found] = target;
@@ -1265,9 +1276,9 @@ public final class ObservantYard {
         }
 
         private void reachShowing() {
-            for (int state = 0; state < arena.stateCount; state++) {
+            for (int state = 0; state < stateCount; state++) {
                 int base = state * signWords;
-                for (int word = 0; word < arena.words; word++) {
+                for (int word = 0; word < words; word++) {
                     long left = reached[base + word];
                     for (int turn = 0; turn < 64 && left != 0; turn++) {
                         addShown(base, 64 * word + lowestBit(left));
@@ -1278,125 +1289,505 @@ public final class ObservantYard {
         }
 
         private void addShown(int base, int between) {
-            for (int place = arena.start[between]; place < arena.start[between + 1]; place++) {
-                int label = arena.labelAt(place);
+            for (int place = start[between]; place < start[between + 1]; place++) {
+                int label = labelAt(place);
                 if (label != 0) {
-                    int row = base + label * arena.words;
-                    unite(reached, row, reached, arena.targetAt(place) * signWords, arena.words);
+                    int row = base + label * words;
+                    unite(reached, row, reached, targetAt(place) * signWords, words);
                 }
             }
         }
     }
 
     /**
-     * Follows rows of shown labels through sets of blocks that are weakly alike: such blocks have the same
-     * rows, so that sets of them stand for sets of states.
+     * The blocks, weakly alike, that one state comes to, on the left, and those that another one comes to, on the
+     * right. Each has a seat there, so that a set of seats holds a pair of sets of blocks, one on each side.
      */
-    private static final class TraceWalk {
-        /** Each pair that is kept tells something new: a long search for systems that need many came to 25,031. */
-        private static final int MOST_PAIRS = 1 << 17;
-
-        private final Arena arena;
+    private static final class Seats {
         private final Refiner refiner;
-        private final long[] after = new long[SLOTS * WIDE_WORDS];
-        private final long[] afterOther = new long[SLOTS * WIDE_WORDS];
-        private final long[] grown = new long[WIDE_WORDS];
-        private final long[] grownOther = new long[WIDE_WORDS];
-        /** For each block a bit for each label that it can show, after silent steps, too. */
-        private final long[] shown = new long[MOST_SIDE_BY_SIDE];
-        private long[] pairs = new long[64 * 2 * WIDE_WORDS];
-        private int pairCount;
-        private SetTable level = new SetTable();
-        private SetTable nextLevel = new SetTable();
+        private final int[] blockAt = new int[MOST_SIDE_BY_SIDE];
+        private final int[] seatOf = new int[MOST_SIDE_BY_SIDE];
+        /** For each seat and label the seats on its side that it comes to, with silent steps before and behind. */
+        private final long[] rows = new long[MOST_SIDE_BY_SIDE * SLOTS * WIDE_WORDS];
+        /** The seats on the left, and behind them those on the right. */
+        final long[] sides = new long[2 * WIDE_WORDS];
+        /** For each seat those that can show, step by step, whatever it can. */
+        private final long[] above = new long[MOST_SIDE_BY_SIDE * WIDE_WORDS];
+        /** For each seat those that it is above. */
+        final long[] below = new long[MOST_SIDE_BY_SIDE * WIDE_WORDS];
+        /** Of those above, the ones on its own side; of some that are just alike the first one is above the others. */
+        private final long[] covers = new long[MOST_SIDE_BY_SIDE * WIDE_WORDS];
+        /** Of those above, the ones on the other side. */
+        private final long[] across = new long[MOST_SIDE_BY_SIDE * WIDE_WORDS];
+        private final long[] pending = new long[WIDE_WORDS];
+        private final long[] able = new long[WIDE_WORDS];
+        private int count;
+        int leftCount;
+        /** How many words hold a bit for each seat. */
+        int words;
+        int rowWords;
 
-        TraceWalk(Arena arena, Refiner refiner) {
-            this.arena = arena;
+        Seats(Refiner refiner) {
             this.refiner = refiner;
         }
 
-        boolean sameRows(int one, int other) {
-            if (refiner.blocks[one] == refiner.blocks[other]) {
-                return true;
+        /** Seats what one block comes to on the left and, if there is another one, what that comes to on the right. */
+        void take(int one, int other) {
+            count = 0;
+            gather(one);
+            leftCount = count;
+            if (other >= 0) {
+                gather(other);
             }
-            int words = arena.words;
-            pairCount = 0;
-            putPair(refiner.signs, one * refiner.signWords, refiner.signs, other * refiner.signWords);
-            for (int at = 0; at < pairCount && at < MOST_PAIRS; at++) {
-                follow(pairs, 2 * at * words, after);
-                follow(pairs, (2 * at + 1) * words, afterOther);
-                for (int label = 1; label < arena.labelCount; label++) {
-                    int row = label * words;
-                    boolean ends = isEmpty(after, row, words);
-                    if (ends != isEmpty(afterOther, row, words)) {
-                        return false;
-                    }
-                    if (!ends && !isKnown(row)) {
-                        putPair(after, row, afterOther, row);
+            words = count + 63 >> 6;
+            rowWords = refiner.labelCount * words;
+            Arrays.fill(rows, 0, count * rowWords, 0L);
+            Arrays.fill(sides, 0L);
+            fillRows(0, leftCount, 0);
+            fillRows(leftCount, count, WIDE_WORDS);
+            putTwinsAbove();
+        }
+
+        private void gather(int first) {
+            int begin = count;
+            Arrays.fill(seatOf, -1);
+            seat(first);
+            for (int at = begin; at < count && at < MOST_SIDE_BY_SIDE; at++) {
+                Arrays.fill(able, 0L);
+                for (int label = 1; label < refiner.labelCount; label++) {
+                    unite(able, 0, refiner.signs, refiner.rowOf(blockAt[at], label), refiner.words);
+                }
+                for (int block = 0; block < refiner.blockCount; block++) {
+                    if (hasBit(able, 0, block)) {
+                        seat(block);
                     }
                 }
             }
-            return true;
         }
 
-        /** Each row of labels comes to just one set, so that rows are counted by sets. */
-        int rowsOfLength(int state, int length) {
-            noteShown();
-            if (length == 1) {
-                return labelsOf(refiner.signs, state * refiner.signWords);
+        private void seat(int block) {
+            if (seatOf[block] < 0 && count < MOST_SIDE_BY_SIDE) {
+                seatOf[block] = count;
+                blockAt[count] = block;
+                count++;
             }
-            level.begin(arena.words);
-            level.put(refiner.signs, state * refiner.signWords, 1);
-            for (int done = 2; done < length; done++) {
-                goOn();
-            }
-            return rowsBehindLevel();
         }
 
-        private void goOn() {
-            int words = arena.words;
-            nextLevel.begin(words);
-            for (int at = 0; at < level.count; at++) {
-                follow(level.sets, at * words, after);
-                for (int label = 1; label < arena.labelCount; label++) {
-                    if (!isEmpty(after, label * words, words)) {
-                        nextLevel.put(after, label * words, level.weights[at]);
+        private void fillRows(int from, int end, int side) {
+            for (int seat = from; seat < end; seat++) {
+                seatOf[blockAt[seat]] = seat;
+                setBit(sides, side, seat);
+            }
+            for (int seat = from; seat < end; seat++) {
+                for (int label = 1; label < refiner.labelCount; label++) {
+                    int sign = refiner.rowOf(blockAt[seat], label);
+                    for (int target = from; target < end; target++) {
+                        if (hasBit(refiner.signs, sign, blockAt[target])) {
+                            setBit(rows, rowOf(seat, label), target);
+                        }
                     }
                 }
             }
-            SetTable swapped = level;
-            level = nextLevel;
-            nextLevel = swapped;
         }
 
-        /** The last two labels need no sets to be kept. */
-        private int rowsBehindLevel() {
-            int result = 0;
-            for (int at = 0; at < level.count; at++) {
-                follow(level.sets, at * arena.words, after);
-                for (int label = 1; label < arena.labelCount; label++) {
-                    result += level.weights[at] * labelsOf(after, label * arena.words);
+        int rowOf(int seat, int label) {
+            return seat * rowWords + label * words;
+        }
+
+        /** Before the seats are in order each is above itself, and above the same block on the other side. */
+        private void putTwinsAbove() {
+            Arrays.fill(above, 0L);
+            for (int seat = 0; seat < count; seat++) {
+                for (int twin = 0; twin < count; twin++) {
+                    if (blockAt[seat] == blockAt[twin]) {
+                        setBit(above, seat * WIDE_WORDS, twin);
+                    }
+                }
+            }
+            sortOrder();
+        }
+
+        /** Strikes out, from above each seat, what cannot answer it, until no more is to be struck out. */
+        void putInOrder() {
+            Arrays.fill(above, 0L);
+            Arrays.fill(pending, 0L);
+            for (int seat = 0; seat < count; seat++) {
+                setBit(pending, 0, seat);
+            }
+            for (int seat = 0; seat < count; seat++) {
+                System.arraycopy(pending, 0, above, seat * WIDE_WORDS, WIDE_WORDS);
+            }
+            for (int pass = 0; pass <= count * count && !isEmpty(pending, 0, WIDE_WORDS); pass++) {
+                for (int seat = 0; seat < count; seat++) {
+                    if (hasBit(pending, 0, seat)) {
+                        clearBit(pending, 0, seat);
+                        narrowBehind(seat);
+                    }
+                }
+            }
+            sortOrder();
+        }
+
+        private void sortOrder() {
+            Arrays.fill(below, 0L);
+            Arrays.fill(covers, 0L);
+            Arrays.fill(across, 0L);
+            for (int seat = 0; seat < count; seat++) {
+                for (int higher = 0; higher < count; higher++) {
+                    if (hasBit(above, seat * WIDE_WORDS, higher)) {
+                        boolean isAlike = hasBit(above, higher * WIDE_WORDS, seat);
+                        setBit(below, higher * WIDE_WORDS, seat);
+                        if (seat < leftCount != higher < leftCount) {
+                            setBit(across, seat * WIDE_WORDS, higher);
+                        } else if (!isAlike || higher < seat) {
+                            setBit(covers, seat * WIDE_WORDS, higher);
+                        }
+                    }
+                }
+            }
+        }
+
+        /** What is above a seat that comes to the target must come, by the same label, to what is above that. */
+        private void narrowBehind(int target) {
+            for (int label = 1; label < refiner.labelCount; label++) {
+                Arrays.fill(able, 0L);
+                for (int seat = 0; seat < count; seat++) {
+                    if (meets(rows, rowOf(seat, label), above, target * WIDE_WORDS, words)) {
+                        setBit(able, 0, seat);
+                    }
+                }
+                for (int seat = 0; seat < count; seat++) {
+                    int row = seat * WIDE_WORDS;
+                    if (hasBit(rows, rowOf(seat, label), target) && !isWithin(above, row, able, 0, WIDE_WORDS)) {
+                        for (int word = 0; word < WIDE_WORDS; word++) {
+                            above[row + word] &= able[word];
+                        }
+                        setBit(pending, 0, seat);
+                    }
+                }
+            }
+        }
+
+        /** Writes, for each label, the set that is come to from a set. */
+        void follow(long[] sets, int base, long[] into) {
+            Arrays.fill(into, 0, rowWords, 0L);
+            for (int word = 0; word < words; word++) {
+                long left = sets[base + word];
+                for (int turn = 0; turn < 64 && left != 0; turn++) {
+                    unite(into, 0, rows, (64 * word + lowestBit(left)) * rowWords, rowWords);
+                    left &= left - 1;
+                }
+            }
+        }
+
+        /** A bit for each label that can be shown from a seat. */
+        long labelsAt(int seat) {
+            long result = 0;
+            for (int label = 1; label < refiner.labelCount; label++) {
+                if (!isEmpty(rows, rowOf(seat, label), words)) {
+                    result |= 1L << label;
                 }
             }
             return result;
         }
 
-        private void noteShown() {
-            for (int block = 0; block < refiner.blockCount; block++) {
-                int base = refiner.models[block] * refiner.signWords;
-                shown[block] = 0;
-                for (int label = 1; label < arena.labelCount; label++) {
-                    if (!isEmpty(refiner.signs, base + label * arena.words, arena.words)) {
-                        shown[block] |= 1L << label;
+        /** Whether the set can do without the seat. */
+        boolean isBeneath(int seat, long[] sets, int base) {
+            return meets(covers, seat * WIDE_WORDS, sets, base, words);
+        }
+
+        /** Whether each seat of a set has one of the set above it on the other side: both sides have the same rows. */
+        boolean isBalanced(long[] set) {
+            for (int word = 0; word < words; word++) {
+                long left = set[word];
+                for (int turn = 0; turn < 64 && left != 0; turn++) {
+                    if (!meets(across, (64 * word + lowestBit(left)) * WIDE_WORDS, set, 0, words)) {
+                        return false;
+                    }
+                    left &= left - 1;
+                }
+            }
+            return true;
+        }
+    }
+
+    /** Follows rows of shown labels through sets of blocks, from one state or from two. */
+    private static final class TraceWalk {
+        /** So many pairs are looked at without an order of the seats, which is dear. */
+        private static final int FEW_PAIRS = 64;
+        /** So many are kept where most of them have just one way on: then it helps more to keep fewer of these. */
+        private static final int MANY_PAIRS = 1 << 16;
+        /** Of the pairs that are kept so many, the first ones, are looked through for what they tell together. */
+        private static final int MOST_RULES = 1 << 15;
+        /** So many looks at these may be in vain in a go. */
+        private static final long FEW_LOOKS = 1L << 26;
+        private static final long MANY_LOOKS = 1L << 30;
+        private static final long MOST_APART = 1L << 60;
+        private static final long STEPS_ASTRAY = 1L << 20;
+        /** Ages would pass before. */
+        private static final long MOST_GOES = 1L << 40;
+
+        private final Refiner refiner;
+        private final Seats seats;
+        private final long[] after = new long[SLOTS * WIDE_WORDS];
+        private final long[] here = new long[WIDE_WORDS];
+        private final long[] grown = new long[WIDE_WORDS];
+        private long[] next = new long[WIDE_WORDS];
+        private long[] fresh = new long[WIDE_WORDS];
+        private boolean hasNext;
+        private int forks;
+        private int mostPairs;
+        private long looks;
+        private long mostLooks;
+        /** How far apart milestones are. */
+        private long apart;
+        private boolean isAstray;
+        /** For each seat a bit for each label that it can show. */
+        private final long[] shown = new long[MOST_SIDE_BY_SIDE];
+        /** The pairs of a go; or the sets of a level of rows, and in the other table those of the next one. */
+        private final SetTable kept = new SetTable();
+        private final SetTable keptOther = new SetTable();
+
+        TraceWalk(Refiner refiner) {
+            this.refiner = refiner;
+            seats = new Seats(refiner);
+        }
+
+        /**
+         * Looks at the pairs of sets to which rows of labels lead, in goes: each ends when all have been looked at,
+         * or when there is no room to keep more.
+         */
+        boolean sameRows(int one, int other) {
+            if (refiner.blocks[one] == refiner.blocks[other]) {
+                return true;
+            }
+            seats.take(refiner.blocks[one], refiner.blocks[other]);
+            apart = 1;
+            mostPairs = FEW_PAIRS;
+            mostLooks = FEW_LOOKS;
+            isAstray = false;
+            for (long go = 0; go < MOST_GOES; go++) {
+                beginGo();
+                for (int at = 0; at < kept.count && at <= mostPairs && !kept.isFull; at++) {
+                    System.arraycopy(kept.sets, at * seats.words, here, 0, seats.words);
+                    if (comesApart(go)) {
+                        return false;
+                    }
+                }
+                if (hasRoom() && !isAstray) {
+                    return true;
+                }
+                prepareNextGo(go);
+            }
+            return true;
+        }
+
+        private void beginGo() {
+            forks = 0;
+            looks = mostLooks;
+            kept.begin(seats.words, 0);
+            Arrays.fill(fresh, 0L);
+            setBit(fresh, 0, 0);
+            setBit(fresh, 0, seats.leftCount);
+            kept.put(fresh, 0);
+        }
+
+        private boolean hasRoom() {
+            return kept.count <= mostPairs && !kept.isFull;
+        }
+
+        /**
+         * Where most pairs have just one way on, fewer of them are kept, so that the next go comes further. Where
+         * they have more, more are kept, and then looked through with more patience. If that is in vain, too, the
+         * search strays until it finds a row: that there is none it could not find out in so little room.
+         */
+        private void prepareNextGo(long go) {
+            if (go == 0) {
+                seats.putInOrder();
+                mostPairs = MANY_PAIRS;
+            } else if (forks <= kept.count / 2) {
+                apart = Math.min(MOST_APART, 8 * apart);
+            } else if (mostPairs == MANY_PAIRS) {
+                mostPairs = SetTable.MOST_PLACES;
+            } else if (mostLooks == FEW_LOOKS) {
+                mostLooks = MANY_LOOKS;
+                apart = Math.max(8, apart);
+            } else {
+                isAstray = true;
+            }
+        }
+
+        /**
+         * Walks on from a pair and keeps, where there are several ways on, all of them but one. The walk ends at a
+         * milestone, which is kept; without those it could go round for ever, or walk the same way too often. Astray
+         * nothing is kept, and each step chooses its way anew.
+         */
+        private boolean comesApart(long go) {
+            int words = seats.words;
+            long mostSteps = isAstray ? STEPS_ASTRAY : 4 * apart;
+            boolean walks = true;
+            for (long step = 1; step <= mostSteps && walks && hasRoom(); step++) {
+                long salt = isAstray ? go * STEPS_ASTRAY + step : go;
+                seats.follow(here, 0, after);
+                hasNext = false;
+                for (int label = 1; label < refiner.labelCount; label++) {
+                    boolean isOnLeft = meets(after, label * words, seats.sides, 0, words);
+                    if (isOnLeft != meets(after, label * words, seats.sides, WIDE_WORDS, words)) {
+                        return true;
+                    }
+                    if (isOnLeft && isNew(label * words)) {
+                        boolean isFork = hasNext;
+                        if (!isFork || mixed(salt, fresh, 0, words) > mixed(salt, next, 0, words)) {
+                            long[] swapped = next;
+                            next = fresh;
+                            fresh = swapped;
+                            hasNext = true;
+                        }
+                        if (isFork && !isAstray) {
+                            kept.put(fresh, 0);
+                            forks++;
+                        }
+                    }
+                }
+                boolean isMilestone = step == mostSteps || (mixed(salt, next, 0, words) & apart - 1) == 0;
+                walks = hasNext && (isAstray || !isMilestone);
+                if (walks) {
+                    System.arraycopy(next, 0, here, 0, words);
+                } else if (hasNext) {
+                    kept.put(next, 0);
+                }
+            }
+            return false;
+        }
+
+        /** Makes the pair behind a label, without seats that are beneath others; whether it has still to be looked at. */
+        private boolean isNew(int row) {
+            for (int word = 0; word < seats.words; word++) {
+                long left = after[row + word];
+                fresh[word] = left;
+                for (int turn = 0; turn < 64 && left != 0; turn++) {
+                    if (seats.isBeneath(64 * word + lowestBit(left), after, row)) {
+                        fresh[word] &= ~(left & -left);
+                    }
+                    left &= left - 1;
+                }
+            }
+            if (seats.isBalanced(fresh) || hasNext && isSame(fresh, 0, next, 0, seats.words) || kept.has(fresh)) {
+                return false;
+            }
+            return looks <= 0 || !growsOver(0) || !growsOver(WIDE_WORDS);
+        }
+
+        /**
+         * Whether one side of the fresh pair grows over the other one: what holds one side of a kept pair has the
+         * same rows with the other side added, if all kept pairs have the same rows on both sides.
+         */
+        private boolean growsOver(int side) {
+            int rules = Math.min(kept.count, MOST_RULES);
+            long looksBefore = looks;
+            Arrays.fill(grown, 0L);
+            addBelow(fresh, 0, side);
+            boolean holds = isWithin(fresh, 0, grown, 0, seats.words);
+            boolean grew = true;
+            for (int pass = 0; pass <= MOST_SIDE_BY_SIDE && grew && !holds && looks > 0; pass++) {
+                grew = false;
+                for (int at = 0; at < rules && !holds; at++) {
+                    int otherSide = sideToAdd(at * seats.words);
+                    if (otherSide >= 0) {
+                        addBelow(kept.sets, at * seats.words, otherSide);
+                        grew = true;
+                        holds = isWithin(fresh, 0, grown, 0, seats.words);
+                    }
+                }
+                looks -= rules;
+            }
+            if (holds) {
+                looks = looksBefore;
+            }
+            return holds;
+        }
+
+        /** The side of a kept pair that is not held yet, if just the other one is; otherwise -1. */
+        private int sideToAdd(int base) {
+            long left = 0;
+            long right = 0;
+            for (int word = 0; word < seats.words; word++) {
+                long missing = kept.sets[base + word] & ~grown[word];
+                left |= missing & seats.sides[word];
+                right |= missing & seats.sides[WIDE_WORDS + word];
+            }
+            if ((left == 0) == (right == 0)) {
+                return -1;
+            }
+            return left == 0 ? WIDE_WORDS : 0;
+        }
+
+        private void addBelow(long[] sets, int base, int side) {
+            for (int word = 0; word < seats.words; word++) {
+                long left = sets[base + word] & seats.sides[side + word];
+                for (int turn = 0; turn < 64 && left != 0; turn++) {
+                    unite(grown, 0, seats.below, (64 * word + lowestBit(left)) * WIDE_WORDS, seats.words);
+                    left &= left - 1;
+                }
+            }
+        }
+
+        /** Each row of labels comes to just one set, so that rows are counted by sets. */
+        int rowsOfLength(int state, int length) {
+            seats.take(refiner.blocks[state], -1);
+            for (int seat = 0; seat < seats.leftCount; seat++) {
+                shown[seat] = seats.labelsAt(seat);
+            }
+            if (length == 1) {
+                return Long.bitCount(shown[0]);
+            }
+            Arrays.fill(fresh, 0L);
+            setBit(fresh, 0, 0);
+            SetTable level = kept;
+            SetTable nextLevel = keptOther;
+            level.begin(seats.words, 1);
+            level.add(fresh, 0, 1);
+            for (int done = 2; done < length; done++) {
+                goOn(level, nextLevel);
+                SetTable swapped = level;
+                level = nextLevel;
+                nextLevel = swapped;
+            }
+            return rowsBehind(level);
+        }
+
+        private void goOn(SetTable level, SetTable nextLevel) {
+            int words = seats.words;
+            nextLevel.begin(words, 1);
+            for (int at = 0; at < level.count; at++) {
+                int base = at * (words + 1);
+                seats.follow(level.sets, base, after);
+                for (int label = 1; label < refiner.labelCount; label++) {
+                    if (!isEmpty(after, label * words, words)) {
+                        nextLevel.add(after, label * words, level.sets[base + words]);
                     }
                 }
             }
         }
 
+        /** The last two labels need no sets to be kept. */
+        private int rowsBehind(SetTable level) {
+            int result = 0;
+            for (int at = 0; at < level.count; at++) {
+                int base = at * (seats.words + 1);
+                seats.follow(level.sets, base, after);
+                for (int label = 1; label < refiner.labelCount; label++) {
+                    result += (int) level.sets[base + seats.words] * labelsOf(label * seats.words);
+                }
+            }
+            return result;
+        }
+
         /** How many labels can be shown next from a set. */
-        private int labelsOf(long[] sets, int base) {
+        private int labelsOf(int row) {
             long labels = 0;
-            for (int word = 0; word < arena.words; word++) {
-                long left = sets[base + word];
+            for (int word = 0; word < seats.words; word++) {
+                long left = after[row + word];
                 for (int turn = 0; turn < 64 && left != 0; turn++) {
                     labels |= shown[64 * word + lowestBit(left)];
                     left &= left - 1;
@@ -1404,107 +1795,73 @@ public final class ObservantYard {
             }
             return Long.bitCount(labels);
         }
-
-        /** Writes, for each label, the set that is come to from a set. */
-        private void follow(long[] sets, int base, long[] into) {
-            Arrays.fill(into, 0, refiner.signWords, 0L);
-            for (int word = 0; word < arena.words; word++) {
-                long left = sets[base + word];
-                for (int turn = 0; turn < 64 && left != 0; turn++) {
-                    int model = refiner.models[64 * word + lowestBit(left)];
-                    unite(into, 0, refiner.signs, model * refiner.signWords, refiner.signWords);
-                    left &= left - 1;
-                }
-            }
-        }
-
-        /** Whether the two sets behind a label have the same rows if all kept pairs have. */
-        private boolean isKnown(int row) {
-            if (isSame(after, row, afterOther, row, arena.words)) {
-                return true;
-            }
-            System.arraycopy(after, row, grown, 0, arena.words);
-            System.arraycopy(afterOther, row, grownOther, 0, arena.words);
-            grow(grown);
-            grow(grownOther);
-            return isSame(grown, 0, grownOther, 0, arena.words);
-        }
-
-        /** What holds one side of a pair has the same rows with the other side added. */
-        private void grow(long[] set) {
-            int words = arena.words;
-            boolean grew = true;
-            for (int pass = 0; pass <= MOST_SIDE_BY_SIDE && grew; pass++) {
-                grew = false;
-                for (int at = 0; at < pairCount; at++) {
-                    int one = 2 * at * words;
-                    int other = one + words;
-                    boolean hasOne = isWithin(pairs, one, set, 0, words);
-                    boolean hasOther = isWithin(pairs, other, set, 0, words);
-                    if (hasOne != hasOther) {
-                        unite(set, 0, pairs, hasOne ? other : one, words);
-                        grew = true;
-                    }
-                }
-            }
-        }
-
-        private void putPair(long[] one, int oneBase, long[] other, int otherBase) {
-            int words = arena.words;
-            int place = 2 * pairCount * words;
-            if (pairCount >= MOST_PAIRS) {
-                return;
-            }
-            if (place + 2 * words > pairs.length) {
-                pairs = Arrays.copyOf(pairs, 2 * pairs.length);
-            }
-            System.arraycopy(one, oneBase, pairs, place, words);
-            System.arraycopy(other, otherBase, pairs, place + words, words);
-            pairCount++;
-        }
     }
 
-    /** Sets of blocks, like ones once, each with how many rows come to it. */
+    /** Sets of seats, like ones once, numbered from 0; each may have a weight behind its words. */
     private static final class SetTable {
-        /** 32 labels, three times: no more rows, and so no more sets, are ever put in. */
-        private static final int MOST_SETS = 1 << 15;
+        /** Counting rows needs room for 32 labels three times; a search takes what there is. */
+        static final int MOST_PLACES = 1 << 21;
 
-        long[] sets = new long[64 * STATE_WORDS];
-        int[] weights = new int[64];
-        /** Numbers of sets, 1 more each, by their hashes; always twice as many as weights. */
-        private int[] places = new int[128];
-        private int words;
+        /** Numbers of sets, 1 more each, by their hashes. */
+        private int[] places = new int[1 << 9];
+        /** Always half as many words again as places. */
+        long[] sets = new long[3 << 8];
+        private int setWords;
+        private int stride;
         int count;
+        /** Whether a set was left out for want of room. */
+        boolean isFull;
 
-        void begin(int wordsOfSet) {
-            words = wordsOfSet;
+        void begin(int wordsOfSet, int wordsOfWeight) {
+            setWords = wordsOfSet;
+            stride = wordsOfSet + wordsOfWeight;
             count = 0;
+            isFull = false;
             Arrays.fill(places, 0);
         }
 
-        void put(long[] from, int base, int weight) {
-            if (count >= weights.length) {
+        boolean has(long[] set) {
+            return places[placeOf(set, 0)] > 0;
+        }
+
+        /** Answers the number of the set, -1 if it is left out. */
+        int put(long[] from, int base) {
+            if (!hasRoom()) {
                 widen();
             }
             int place = placeOf(from, base);
-            int number = places[place] - 1;
-            if (number >= 0) {
-                weights[number] += weight;
-            } else if (count < weights.length) {
-                System.arraycopy(from, base, sets, count * words, words);
-                weights[count] = weight;
+            if (places[place] == 0) {
+                if (!hasRoom()) {
+                    isFull = true;
+                    return -1;
+                }
+                System.arraycopy(from, base, sets, count * stride, setWords);
+                Arrays.fill(sets, count * stride + setWords, (count + 1) * stride, 0L);
                 count++;
                 places[place] = count;
             }
+            return places[place] - 1;
+        }
+
+        void add(long[] from, int base, long weight) {
+            int number = put(from, base);
+            if (number >= 0) {
+                sets[number * stride + setWords] += weight;
+            }
+        }
+
+        /** Some places stay free, so that sets are found soon. */
+        private boolean hasRoom() {
+            return count < places.length / 4 * 3 && (count + 1) * stride <= sets.length;
         }
 
         /** The place of a set like this one, or the free one where it belongs. */
         private int placeOf(long[] from, int base) {
-            long hash = mixed(words, from, base, words);
+            long hash = mixed(setWords, from, base, setWords);
             int mask = places.length - 1;
             int place = (int) (hash ^ hash >>> 32) & mask;
             for (int tries = 0; tries <= mask && places[place] > 0; tries++) {
-                if (isSame(sets, (places[place] - 1) * words, from, base, words)) {
+                if (isSame(sets, (places[place] - 1) * stride, from, base, setWords)) {
                     return place;
                 }
                 place = place + 1 & mask;
@@ -1513,14 +1870,14 @@ public final class ObservantYard {
         }
 
         private void widen() {
-            if (weights.length >= MOST_SETS) {
+            if (places.length >= MOST_PLACES) {
                 return;
             }
-            sets = Arrays.copyOf(sets, 2 * sets.length);
-            weights = Arrays.copyOf(weights, 2 * weights.length);
-            places = new int[2 * places.length];
+            int room = 16 * places.length;
+            sets = Arrays.copyOf(sets, room / 2 * 3);
+            places = new int[room];
             for (int number = 0; number < count; number++) {
-                places[placeOf(sets, number * words)] = number + 1;
+                places[placeOf(sets, number * stride)] = number + 1;
             }
         }
     }
