@@ -1070,7 +1070,7 @@ public final class ObservantYard {
         final int[] blocks = new int[MOST_SIDE_BY_SIDE];
         private final int[] before = new int[MOST_SIDE_BY_SIDE];
         /** The first state of each block. */
-        final int[] models = new int[MOST_SIDE_BY_SIDE];
+        private final int[] models = new int[MOST_SIDE_BY_SIDE];
         private final int[] heads = new int[BUCKETS];
         private final int[] chain = new int[MOST_SIDE_BY_SIDE];
         private final int[] stack = new int[MOST_SIDE_BY_SIDE];
@@ -1080,7 +1080,7 @@ public final class ObservantYard {
         /** For each state and label the states that it comes to with silent steps before and behind. */
         private final long[] reached = new long[MOST_SIDE_BY_SIDE * SLOTS * WIDE_WORDS];
         int blockCount;
-        int signWords;
+        private int signWords;
 
         void begin(Network graph) {
             Arrays.fill(dense, -1);
@@ -1515,17 +1515,17 @@ public final class ObservantYard {
     private static final class TraceWalk {
         /** So many pairs are looked at without an order of the seats, which is dear. */
         private static final int FEW_PAIRS = 64;
-        /** So many are kept where most of them have just one way on: then it helps more to keep fewer of these. */
-        private static final int MANY_PAIRS = 1 << 16;
-        /** Of the pairs that are kept so many, the first ones, are looked through for what they tell together. */
-        private static final int MOST_RULES = 1 << 15;
+        /**
+         * So many are kept where most of them have just one way on: then it helps more to keep fewer of these. And
+         * so many, the first ones, are looked through for what they tell together.
+         */
+        private static final int MANY_PAIRS = 1 << 15;
         /** So many looks at these may be in vain in a go. */
         private static final long FEW_LOOKS = 1L << 26;
         private static final long MANY_LOOKS = 1L << 30;
         private static final long MOST_APART = 1L << 60;
-        private static final long STEPS_ASTRAY = 1L << 20;
         /** Ages would pass before. */
-        private static final long MOST_GOES = 1L << 40;
+        private static final long MOST_GOES = 1L << 60;
 
         private final Refiner refiner;
         private final Seats seats;
@@ -1541,7 +1541,9 @@ public final class ObservantYard {
         private long mostLooks;
         /** How far apart milestones are. */
         private long apart;
-        private boolean isAstray;
+        private boolean forgets;
+        /** Whether no pair was left out since the beginning. */
+        private boolean isWhole;
         /** For each seat a bit for each label that it can show. */
         private final long[] shown = new long[MOST_SIDE_BY_SIDE];
         /** The pairs of a go; or the sets of a level of rows, and in the other table those of the next one. */
@@ -1554,8 +1556,8 @@ public final class ObservantYard {
         }
 
         /**
-         * Looks at the pairs of sets to which rows of labels lead, in goes: each ends when all have been looked at,
-         * or when there is no room to keep more.
+         * Looks at the pairs of sets to which rows of labels lead, in goes: each ends when all that are kept have
+         * been looked at, or when there is no room to keep more.
          */
         boolean sameRows(int one, int other) {
             if (refiner.blocks[one] == refiner.blocks[other]) {
@@ -1565,26 +1567,28 @@ public final class ObservantYard {
             apart = 1;
             mostPairs = FEW_PAIRS;
             mostLooks = FEW_LOOKS;
-            isAstray = false;
+            forgets = false;
+            beginAnew();
             for (long go = 0; go < MOST_GOES; go++) {
-                beginGo();
-                for (int at = 0; at < kept.count && at <= mostPairs && !kept.isFull; at++) {
+                int at = 0;
+                for (; at < kept.count && at <= mostPairs && hasRoom(); at++) {
                     System.arraycopy(kept.sets, at * seats.words, here, 0, seats.words);
                     if (comesApart(go)) {
                         return false;
                     }
                 }
-                if (hasRoom() && !isAstray) {
+                if (hasRoom() && isWhole) {
                     return true;
                 }
-                prepareNextGo(go);
+                prepareNextGo(go, hasRoom() ? at : at - 1);
             }
             return true;
         }
 
-        private void beginGo() {
+        private void beginAnew() {
             forks = 0;
             looks = mostLooks;
+            isWhole = true;
             kept.begin(seats.words, 0);
             Arrays.fill(fresh, 0L);
             setBit(fresh, 0, 0);
@@ -1598,14 +1602,15 @@ public final class ObservantYard {
 
         /**
          * Where most pairs have just one way on, fewer of them are kept, so that the next go comes further. Where
-         * they have more, more are kept, and then looked through with more patience. If that is in vain, too, the
-         * search strays until it finds a row: that there is none it could not find out in so little room.
+         * they have more, more are kept, and then looked through with more patience. If there is no room for that,
+         * too, those that have been looked at are forgotten and, where it must be, some of the others: then the
+         * search can still find a row that tells the two apart, but hardly ever that there is none.
          */
-        private void prepareNextGo(long go) {
+        private void prepareNextGo(long go, int looked) {
             if (go == 0) {
                 seats.putInOrder();
                 mostPairs = MANY_PAIRS;
-            } else if (forks <= kept.count / 2) {
+            } else if (!forgets && forks <= kept.count / 2) {
                 apart = Math.min(MOST_APART, 8 * apart);
             } else if (mostPairs == MANY_PAIRS) {
                 mostPairs = SetTable.MOST_PLACES;
@@ -1613,21 +1618,25 @@ public final class ObservantYard {
                 mostLooks = MANY_LOOKS;
                 apart = Math.max(8, apart);
             } else {
-                isAstray = true;
+                forgets = true;
+                apart = 1;
+            }
+            if (forgets && looked < kept.count) {
+                isWhole &= kept.forget(looked, go);
+            } else {
+                beginAnew();
             }
         }
 
         /**
          * Walks on from a pair and keeps, where there are several ways on, all of them but one. The walk ends at a
-         * milestone, which is kept; without those it could go round for ever, or walk the same way too often. Astray
-         * nothing is kept, and each step chooses its way anew.
+         * milestone, which is kept; without those it could go round for ever, or walk the same way too often.
          */
         private boolean comesApart(long go) {
             int words = seats.words;
-            long mostSteps = isAstray ? STEPS_ASTRAY : 4 * apart;
+            long mostSteps = 4 * apart;
             boolean walks = true;
             for (long step = 1; step <= mostSteps && walks && hasRoom(); step++) {
-                long salt = isAstray ? go * STEPS_ASTRAY + step : go;
                 seats.follow(here, 0, after);
                 hasNext = false;
                 for (int label = 1; label < refiner.labelCount; label++) {
@@ -1637,20 +1646,19 @@ public final class ObservantYard {
                     }
                     if (isOnLeft && isNew(label * words)) {
                         boolean isFork = hasNext;
-                        if (!isFork || mixed(salt, fresh, 0, words) > mixed(salt, next, 0, words)) {
+                        if (!isFork || mixed(go, fresh, 0, words) > mixed(go, next, 0, words)) {
                             long[] swapped = next;
                             next = fresh;
                             fresh = swapped;
                             hasNext = true;
                         }
-                        if (isFork && !isAstray) {
+                        if (isFork) {
                             kept.put(fresh, 0);
                             forks++;
                         }
                     }
                 }
-                boolean isMilestone = step == mostSteps || (mixed(salt, next, 0, words) & apart - 1) == 0;
-                walks = hasNext && (isAstray || !isMilestone);
+                walks = hasNext && step < mostSteps && (mixed(go, next, 0, words) & apart - 1) != 0;
                 if (walks) {
                     System.arraycopy(next, 0, here, 0, words);
                 } else if (hasNext) {
@@ -1683,7 +1691,7 @@ public final class ObservantYard {
          * same rows with the other side added, if all kept pairs have the same rows on both sides.
          */
         private boolean growsOver(int side) {
-            int rules = Math.min(kept.count, MOST_RULES);
+            int toLookAt = Math.min(kept.count, MANY_PAIRS);
             long looksBefore = looks;
             Arrays.fill(grown, 0L);
             addBelow(fresh, 0, side);
@@ -1691,7 +1699,7 @@ public final class ObservantYard {
             boolean grew = true;
             for (int pass = 0; pass <= MOST_SIDE_BY_SIDE && grew && !holds && looks > 0; pass++) {
                 grew = false;
-                for (int at = 0; at < rules && !holds; at++) {
+                for (int at = 0; at < toLookAt && !holds; at++) {
                     int otherSide = sideToAdd(at * seats.words);
                     if (otherSide >= 0) {
                         addBelow(kept.sets, at * seats.words, otherSide);
@@ -1699,7 +1707,7 @@ public final class ObservantYard {
                         holds = isWithin(fresh, 0, grown, 0, seats.words);
                     }
                 }
-                looks -= rules;
+                looks -= toLookAt;
             }
             if (holds) {
                 looks = looksBefore;
@@ -1876,9 +1884,30 @@ public final class ObservantYard {
             int room = 16 * places.length;
             sets = Arrays.copyOf(sets, room / 2 * 3);
             places = new int[room];
+            placeAll();
+        }
+
+        private void placeAll() {
             for (int number = 0; number < count; number++) {
                 places[placeOf(sets, number * stride)] = number + 1;
             }
+        }
+
+        /** Leaves out the sets before one and, if it is crowded then, half of the others; whether none of these. */
+        boolean forget(int first, long salt) {
+            int last = count;
+            boolean isCrowded = (last - first) * 2 * stride > sets.length || (last - first) * 2 > places.length / 4 * 3;
+            count = 0;
+            for (int number = first; number < last; number++) {
+                if (!isCrowded || (mixed(salt, sets, number * stride, setWords) & 1) == 0) {
+                    System.arraycopy(sets, number * stride, sets, count * stride, stride);
+                    count++;
+                }
+            }
+            isFull = false;
+            Arrays.fill(places, 0);
+            placeAll();
+            return count == last - first;
         }
     }
 
