@@ -28,7 +28,7 @@ final class Check {
         }
     }
 
-    private static void fails(Call call, Class<?> due) {
+    static void fails(Call call, Class<?> due) {
         checks++;
         try {
             tell("answered " + call.make() + ", due is " + due.getSimpleName());
