@@ -1535,13 +1535,17 @@ public final class ObservantYard {
         private long[] next = new long[WIDE_WORDS];
         private long[] fresh = new long[WIDE_WORDS];
         private boolean hasNext;
-        private int forks;
+        /** How many pairs are kept that are no milestones. */
+        private int others;
         private int mostPairs;
         private long looks;
         private long mostLooks;
         /** How far apart milestones are. */
         private long apart;
         private boolean forgets;
+        /** How often the search began anew, and how many goes may still forget before it does so again. */
+        private long beginnings;
+        private long goesLeft;
         /** Whether no pair was left out since the beginning. */
         private boolean isWhole;
         /** For each seat a bit for each label that it can show. */
@@ -1568,6 +1572,7 @@ public final class ObservantYard {
             mostPairs = FEW_PAIRS;
             mostLooks = FEW_LOOKS;
             forgets = false;
+            beginnings = 0;
             beginAnew();
             for (long go = 0; go < MOST_GOES; go++) {
                 int at = 0;
@@ -1586,7 +1591,9 @@ public final class ObservantYard {
         }
 
         private void beginAnew() {
-            forks = 0;
+            beginnings++;
+            goesLeft = beginnings & -beginnings;
+            others = 0;
             looks = mostLooks;
             isWhole = true;
             kept.begin(seats.words, 0);
@@ -1601,16 +1608,17 @@ public final class ObservantYard {
         }
 
         /**
-         * Where most pairs have just one way on, fewer of them are kept, so that the next go comes further. Where
-         * they have more, more are kept, and then looked through with more patience. If there is no room for that,
+         * Where most kept pairs are milestones, fewer of these are kept, so that the next go comes further. Where
+         * others are, as most pairs have several ways on, more are kept, and then looked through with more patience. If there is no room for that,
          * too, those that have been looked at are forgotten and, where it must be, some of the others: then the
-         * search can still find a row that tells the two apart, but hardly ever that there is none.
+         * search can still find a row that tells the two apart, but hardly ever that there is none. As it could stray
+         * to where there is no such row, it begins anew, now soon, now late.
          */
         private void prepareNextGo(long go, int looked) {
             if (go == 0) {
                 seats.putInOrder();
                 mostPairs = MANY_PAIRS;
-            } else if (!forgets && forks <= kept.count / 2) {
+            } else if (!forgets && others <= kept.count / 2) {
                 apart = Math.min(MOST_APART, 8 * apart);
             } else if (mostPairs == MANY_PAIRS) {
                 mostPairs = SetTable.MOST_PLACES;
@@ -1621,7 +1629,8 @@ public final class ObservantYard {
                 forgets = true;
                 apart = 1;
             }
-            if (forgets && looked < kept.count) {
+            if (forgets && looked < kept.count && goesLeft > 0) {
+                goesLeft--;
                 isWhole &= kept.forget(looked, go);
             } else {
                 beginAnew();
@@ -1630,7 +1639,8 @@ public final class ObservantYard {
 
         /**
          * Walks on from a pair and keeps, where there are several ways on, all of them but one. The walk ends at a
-         * milestone, which is kept; without those it could go round for ever, or walk the same way too often.
+         * milestone, which is kept, or where none is met for long: else it could go round for ever, or walk the same
+         * way too often.
          */
         private boolean comesApart(long go) {
             int words = seats.words;
@@ -1654,15 +1664,17 @@ public final class ObservantYard {
                         }
                         if (isFork) {
                             kept.put(fresh, 0);
-                            forks++;
+                            others++;
                         }
                     }
                 }
-                walks = hasNext && step < mostSteps && (mixed(go, next, 0, words) & apart - 1) != 0;
+                boolean isMilestone = (mixed(go, next, 0, words) & apart - 1) == 0;
+                walks = hasNext && step < mostSteps && !isMilestone;
                 if (walks) {
                     System.arraycopy(next, 0, here, 0, words);
                 } else if (hasNext) {
                     kept.put(next, 0);
+                    others += isMilestone ? 0 : 1;
                 }
             }
             return false;
@@ -1807,13 +1819,14 @@ public final class ObservantYard {
 
     /** Sets of seats, like ones once, numbered from 0; each may have a weight behind its words. */
     private static final class SetTable {
+        private static final int FIRST_PLACES = 1 << 9;
         /** Counting rows needs room for 32 labels three times; a search takes what there is. */
         static final int MOST_PLACES = 1 << 21;
 
         /** Numbers of sets, 1 more each, by their hashes. */
-        private int[] places = new int[1 << 9];
+        private int[] places = new int[FIRST_PLACES];
         /** Always half as many words again as places. */
-        long[] sets = new long[3 << 8];
+        long[] sets = new long[FIRST_PLACES / 2 * 3];
         private int setWords;
         private int stride;
         int count;
