@@ -538,12 +538,12 @@ public final class ObservantYard {
         }
         refiner.begin(first);
         int start = refiner.join(second);
-        if (!likeStates(0, start, 's')) {
+        if (refiner.settle('s', 0, start) >= 0) {
             return true;
         }
         return pairGame.survives(first, second, true)
-                && likeStates(0, start, 'b')
-                && likeStates(0, start, 'w')
+                && refiner.settle('b', 0, start) < 0
+                && refiner.settle('w', 0, start) < 0
                 && traceWalk.sameRows(0, start)
                 && refiner.settle('s', 0, start) < 0
                 && formulas.firstUnlike(first, second) < 0;
@@ -1317,6 +1317,8 @@ public final class ObservantYard {
         final long[] below = new long[MOST_SIDE_BY_SIDE * WIDE_WORDS];
         /** Of those above, the ones on its own side; of some that are just alike the first one is above the others. */
         private final long[] covers = new long[MOST_SIDE_BY_SIDE * WIDE_WORDS];
+        /** The seats that are such for any other one. */
+        final long[] covering = new long[WIDE_WORDS];
         /** Of those above, the ones on the other side. */
         private final long[] across = new long[MOST_SIDE_BY_SIDE * WIDE_WORDS];
         private final long[] pending = new long[WIDE_WORDS];
@@ -1431,6 +1433,7 @@ public final class ObservantYard {
         private void sortOrder() {
             Arrays.fill(below, 0L);
             Arrays.fill(covers, 0L);
+            Arrays.fill(covering, 0L);
             Arrays.fill(across, 0L);
             for (int seat = 0; seat < count; seat++) {
                 for (int higher = 0; higher < count; higher++) {
@@ -1441,6 +1444,7 @@ public final class ObservantYard {
                             setBit(across, seat * WIDE_WORDS, higher);
                         } else if (!isAlike || higher < seat) {
                             setBit(covers, seat * WIDE_WORDS, higher);
+                            setBit(covering, 0, higher);
                         }
                     }
                 }
@@ -1468,13 +1472,13 @@ public final class ObservantYard {
             }
         }
 
-        /** Writes, for each label, the set that is come to from a set. */
+        /** Writes, for each label but the silent one, the set that is come to from a set. */
         void follow(long[] sets, int base, long[] into) {
             Arrays.fill(into, 0, rowWords, 0L);
             for (int word = 0; word < words; word++) {
                 long left = sets[base + word];
                 for (int turn = 0; turn < 64 && left != 0; turn++) {
-                    unite(into, 0, rows, (64 * word + lowestBit(left)) * rowWords, rowWords);
+                    unite(into, words, rows, rowOf(64 * word + lowestBit(left), 1), rowWords - words);
                     left &= left - 1;
                 }
             }
@@ -1523,9 +1527,16 @@ public final class ObservantYard {
         /** So many looks at these may be in vain in a go. */
         private static final long FEW_LOOKS = 1L << 26;
         private static final long MANY_LOOKS = 1L << 30;
-        private static final long MOST_APART = 1L << 60;
+        private static final long MOST_APART = 1L << 50;
         /** Ages would pass before. */
         private static final long MOST_GOES = 1L << 60;
+
+        /** The manners of a search, one behind the other, each for what the one before has no room for. */
+        private static final int UNORDERED = 0;
+        private static final int ORDERED = 1;
+        private static final int ROOMY = 2;
+        private static final int PATIENT = 3;
+        private static final int FORGETFUL = 4;
 
         private final Refiner refiner;
         private final Seats seats;
@@ -1535,18 +1546,19 @@ public final class ObservantYard {
         private long[] next = new long[WIDE_WORDS];
         private long[] fresh = new long[WIDE_WORDS];
         private boolean hasNext;
-        /** How many pairs are kept that are no milestones. */
-        private int others;
+        private int manner;
         private int mostPairs;
         private long looks;
-        private long mostLooks;
         /** How far apart milestones are. */
         private long apart;
-        private boolean forgets;
+        /** How many more milestones than other pairs were kept in this go. */
+        private int milestonesAhead;
+        /** Of the pairs that are kept, the first ones, so many have been looked at. */
+        private int looked;
         /** How often the search began anew, and how many goes may still forget before it does so again. */
         private long beginnings;
         private long goesLeft;
-        /** Whether no pair was left out since the beginning. */
+        /** Whether no pair was left out, since the beginning, that had not been looked at. */
         private boolean isWhole;
         /** For each seat a bit for each label that it can show. */
         private final long[] shown = new long[MOST_SIDE_BY_SIDE];
@@ -1568,24 +1580,28 @@ public final class ObservantYard {
                 return true;
             }
             seats.take(refiner.blocks[one], refiner.blocks[other]);
-            apart = 1;
+            manner = UNORDERED;
             mostPairs = FEW_PAIRS;
-            mostLooks = FEW_LOOKS;
-            forgets = false;
+            apart = 1;
             beginnings = 0;
-            beginAnew();
+            kept.count = 0;
             for (long go = 0; go < MOST_GOES; go++) {
-                int at = 0;
-                for (; at < kept.count && at <= mostPairs && hasRoom(); at++) {
+                if (kept.count == 0) {
+                    beginAnew();
+                }
+                looks = manner == PATIENT ? MANY_LOOKS : FEW_LOOKS;
+                milestonesAhead = 0;
+                for (int at = looked; at < kept.count && at <= mostPairs && hasRoom(); at++) {
                     System.arraycopy(kept.sets, at * seats.words, here, 0, seats.words);
-                    if (comesApart(go)) {
+                    if (comesApart()) {
                         return false;
                     }
+                    looked = hasRoom() ? at + 1 : at;
                 }
                 if (hasRoom() && isWhole) {
                     return true;
                 }
-                prepareNextGo(go, hasRoom() ? at : at - 1);
+                makeRoom(go);
             }
             return true;
         }
@@ -1593,8 +1609,7 @@ public final class ObservantYard {
         private void beginAnew() {
             beginnings++;
             goesLeft = beginnings & -beginnings;
-            others = 0;
-            looks = mostLooks;
+            looked = 0;
             isWhole = true;
             kept.begin(seats.words, 0);
             Arrays.fill(fresh, 0L);
@@ -1608,32 +1623,56 @@ public final class ObservantYard {
         }
 
         /**
-         * Where most kept pairs are milestones, fewer of these are kept, so that the next go comes further. Where
-         * others are, as most pairs have several ways on, more are kept, and then looked through with more patience. If there is no room for that,
-         * too, those that have been looked at are forgotten and, where it must be, some of the others: then the
-         * search can still find a row that tells the two apart, but hardly ever that there is none. As it could stray
-         * to where there is no such row, it begins anew, now soon, now late.
+         * Where most kept pairs are milestones, fewer of these are enough. Where others are, as most pairs have
+         * several ways on, more are kept, and then looked through with more patience. If there is no room for that,
+         * too, the search becomes forgetful.
          */
-        private void prepareNextGo(long go, int looked) {
-            if (go == 0) {
-                seats.putInOrder();
+        private void makeRoom(long go) {
+            if (manner == UNORDERED) {
+                manner = ORDERED;
                 mostPairs = MANY_PAIRS;
-            } else if (!forgets && others <= kept.count / 2) {
-                apart = Math.min(MOST_APART, 8 * apart);
-            } else if (mostPairs == MANY_PAIRS) {
+                seats.putInOrder();
+                kept.count = 0;
+            } else if (manner < FORGETFUL && milestonesAhead >= 0) {
+                thinOut();
+            } else if (manner == ORDERED) {
+                manner = ROOMY;
                 mostPairs = SetTable.MOST_PLACES;
-            } else if (mostLooks == FEW_LOOKS) {
-                mostLooks = MANY_LOOKS;
+            } else if (manner == ROOMY) {
+                manner = PATIENT;
                 apart = Math.max(8, apart);
+                kept.count = 0;
             } else {
-                forgets = true;
+                manner = FORGETFUL;
                 apart = 1;
+                forget(go);
             }
-            if (forgets && looked < kept.count && goesLeft > 0) {
-                goesLeft--;
-                isWhole &= kept.forget(looked, go);
-            } else {
-                beginAnew();
+        }
+
+        /** What has been looked at need not be kept; but milestones tell where a way comes to what was walked before. */
+        private void thinOut() {
+            apart = Math.min(MOST_APART, 8 * apart);
+            looked = kept.thinOut(looked, beginnings, apart - 1);
+            if (kept.count > mostPairs / 2 || kept.isCrowded()) {
+                kept.count = 0;
+            }
+        }
+
+        /**
+         * Leaves out what has been looked at and, where it must be, half of the others: then the search can still
+         * find a row that tells the two apart, but hardly ever that there is none. As it could stray to where there
+         * is no such row, it begins anew, now soon, now late.
+         */
+        private void forget(long go) {
+            kept.thinOut(looked, go, -1);
+            looked = 0;
+            if (kept.isCrowded()) {
+                kept.thinOut(kept.count, go, 1);
+                isWhole = false;
+            }
+            goesLeft--;
+            if (goesLeft < 0) {
+                kept.count = 0;
             }
         }
 
@@ -1642,7 +1681,7 @@ public final class ObservantYard {
          * milestone, which is kept, or where none is met for long: else it could go round for ever, or walk the same
          * way too often.
          */
-        private boolean comesApart(long go) {
+        private boolean comesApart() {
             int words = seats.words;
             long mostSteps = 4 * apart;
             boolean walks = true;
@@ -1654,38 +1693,42 @@ public final class ObservantYard {
                     if (isOnLeft != meets(after, label * words, seats.sides, WIDE_WORDS, words)) {
                         return true;
                     }
-                    if (isOnLeft && isNew(label * words)) {
-                        boolean isFork = hasNext;
-                        if (!isFork || mixed(go, fresh, 0, words) > mixed(go, next, 0, words)) {
-                            long[] swapped = next;
-                            next = fresh;
-                            fresh = swapped;
-                            hasNext = true;
-                        }
-                        if (isFork) {
-                            kept.put(fresh, 0);
-                            others++;
-                        }
+                    if (isOnLeft && isNew(label * words) && isFork()) {
+                        kept.put(fresh, 0);
+                        milestonesAhead--;
                     }
                 }
-                boolean isMilestone = (mixed(go, next, 0, words) & apart - 1) == 0;
+                boolean isMilestone = (mixed(beginnings, next, 0, words) & apart - 1) == 0;
                 walks = hasNext && step < mostSteps && !isMilestone;
                 if (walks) {
                     System.arraycopy(next, 0, here, 0, words);
                 } else if (hasNext) {
                     kept.put(next, 0);
-                    others += isMilestone ? 0 : 1;
+                    milestonesAhead += isMilestone ? 1 : -1;
                 }
             }
             return false;
         }
 
+        /** Of two ways on the fresh one is for later: which one that is should not be the labels' choice. */
+        private boolean isFork() {
+            boolean hadNext = hasNext;
+            if (!hadNext || mixed(beginnings, fresh, 0, seats.words) > mixed(beginnings, next, 0, seats.words)) {
+                long[] swapped = next;
+                next = fresh;
+                fresh = swapped;
+                hasNext = true;
+            }
+            return hadNext;
+        }
+
         /** Makes the pair behind a label, without seats that are beneath others; whether it has still to be looked at. */
         private boolean isNew(int row) {
+            boolean isCovered = meets(after, row, seats.covering, 0, seats.words);
             for (int word = 0; word < seats.words; word++) {
                 long left = after[row + word];
                 fresh[word] = left;
-                for (int turn = 0; turn < 64 && left != 0; turn++) {
+                for (int turn = 0; turn < 64 && left != 0 && isCovered; turn++) {
                     if (seats.isBeneath(64 * word + lowestBit(left), after, row)) {
                         fresh[word] &= ~(left & -left);
                     }
@@ -1900,27 +1943,39 @@ public final class ObservantYard {
             placeAll();
         }
 
+        /** Gives each set its place; no two are like. */
         private void placeAll() {
+            int mask = places.length - 1;
+            Arrays.fill(places, 0);
             for (int number = 0; number < count; number++) {
-                places[placeOf(sets, number * stride)] = number + 1;
+                long hash = mixed(setWords, sets, number * stride, setWords);
+                int place = (int) (hash ^ hash >>> 32) & mask;
+                for (int tries = 0; tries <= mask && places[place] > 0; tries++) {
+                    place = place + 1 & mask;
+                }
+                places[place] = number + 1;
             }
         }
 
-        /** Leaves out the sets before one and, if it is crowded then, half of the others; whether none of these. */
-        boolean forget(int first, long salt) {
+        /** Leaves out, of the sets before one, all that are no milestones; answers how many of these stay. */
+        int thinOut(int end, long salt, long mask) {
             int last = count;
-            boolean isCrowded = (last - first) * 2 * stride > sets.length || (last - first) * 2 > places.length / 4 * 3;
+            int stay = 0;
             count = 0;
-            for (int number = first; number < last; number++) {
-                if (!isCrowded || (mixed(salt, sets, number * stride, setWords) & 1) == 0) {
+            for (int number = 0; number < last; number++) {
+                if (number >= end || (mixed(salt, sets, number * stride, setWords) & mask) == 0) {
                     System.arraycopy(sets, number * stride, sets, count * stride, stride);
                     count++;
+                    stay += number < end ? 1 : 0;
                 }
             }
             isFull = false;
-            Arrays.fill(places, 0);
             placeAll();
-            return count == last - first;
+            return stay;
+        }
+
+        boolean isCrowded() {
+            return 2 * count * stride > sets.length || 2 * count > places.length / 4 * 3;
         }
     }
 
