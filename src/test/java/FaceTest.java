@@ -93,8 +93,28 @@ public final class FaceTest {
         }
     }
 
+    /** From the head of each method to the bracket that closes it. */
+    private static void keepsMethodsShort() throws IOException {
+        String[] lines = Files.readString(SOURCE).split("\n");
+        Pattern head = Pattern.compile("^(    |        )(?!for|if|while|switch|else)[a-zA-Z].*\\w\\(.*\\)( throws .*)?( \\{)?$");
+        int methods = 0;
+        for (int begin = 0; begin < lines.length; begin++) {
+            Matcher found = head.matcher(lines[begin]);
+            if (found.find()) {
+                int end = begin + 1;
+                while (end < lines.length && !lines[end].equals(found.group(1) + "}")) {
+                    end++;
+                }
+                methods++;
+                Check.is(end - begin < 60 ? "" : lines[begin] + " has " + (end - begin), "");
+            }
+        }
+        Check.is(methods > 150, true);
+    }
+
     public static void main(String[] args) throws IOException {
         hasTheFace();
+        keepsMethodsShort();
         reusesNoName();
         keepsToTheLanguage();
         Check.end();
