@@ -223,7 +223,7 @@ public final class ObservantYard {
         needSystem(other);
         needLikeness(kind, true);
         int second = laySideBySide(system, other);
-        return likeStates(0, second, kind);
+        return kind == 't' ? traceWalk.sameRows(0, second) : refiner.settle(kind, 0, second) < 0;
     }
 
     public boolean areAlike(int system, int state, int other, char kind)
@@ -232,7 +232,7 @@ public final class ObservantYard {
         needState(system, other);
         needLikeness(kind, true);
         laySideBySide(system, system);
-        return likeStates(state, other, kind);
+        return kind == 't' ? traceWalk.sameRows(state, other) : refiner.settle(kind, state, other) < 0;
     }
 
     public int countClasses(int system, char kind)
@@ -277,7 +277,6 @@ public final class ObservantYard {
             throw new IllegalArgumentException("a length is from 1 to 5");
         }
         laySideBySide(system, system);
-        refiner.settle('w', 0, 0);
         return traceWalk.rowsOfLength(0, length);
     }
 
@@ -370,14 +369,18 @@ public final class ObservantYard {
     }
 
     public boolean isSound() {
-        for (int first = 0; first < networkCount; first++) {
-            for (int second = first + 1; second < networkCount; second++) {
-                if (!isSoundFor(first, second)) {
-                    return false;
+        boolean result = true;
+        for (int system = 0; system < networkCount; system++) {
+            for (int other = system + 1; other < networkCount; other++) {
+                if (isToCheck(system, other)) {
+                    int second = laySideBySide(system, other);
+                    result = result && (refiner.settle('s', 0, second) >= 0
+                            || isAlikeOtherwise(networks[system], networks[other], second)
+                            && traceWalk.sameRows(0, second));
                 }
             }
         }
-        return true;
+        return result;
     }
 
     // ---- what the calls share
@@ -504,14 +507,6 @@ public final class ObservantYard {
         return system == other ? 0 : refiner.join(second);
     }
 
-    private boolean likeStates(int one, int other, char kind) {
-        if (kind == 't') {
-            refiner.settle('w', 0, 0);
-            return traceWalk.sameRows(one, other);
-        }
-        return refiner.settle(kind, one, other) < 0;
-    }
-
     private void putOnBench(int system, int tester, int content) {
         needSystem(system);
         needSystem(tester);
@@ -524,29 +519,49 @@ public final class ObservantYard {
         bench.markContent(testing, content);
     }
 
-    /**
-     * The game is asked apart from the classes, though both refine alike: the document names both. Traces are
-     * asked behind weak likeness, on whose blocks they stand.
-     */
-    private boolean isSoundFor(int system, int other) {
+    private boolean isToCheck(int system, int other) {
         Network first = networks[system];
         Network second = networks[other];
         builder.refresh(first);
         builder.refresh(second);
-        if (!first.fits || !second.fits || first.stateCount + second.stateCount > MOST_TO_CHECK) {
-            return true;
-        }
-        refiner.begin(first);
-        int start = refiner.join(second);
-        if (refiner.settle('s', 0, start) >= 0) {
-            return true;
-        }
+        return first.fits && second.fits && first.stateCount + second.stateCount <= MOST_TO_CHECK;
+    }
+
+    /** The game is asked apart from the classes, though both refine alike: the document names both. */
+    private boolean isAlikeOtherwise(Network first, Network second, int start) {
         return pairGame.survives(first, second, true)
                 && refiner.settle('b', 0, start) < 0
                 && refiner.settle('w', 0, start) < 0
-                && traceWalk.sameRows(0, start)
                 && refiner.settle('s', 0, start) < 0
                 && formulas.firstUnlike(first, second) < 0;
+    }
+
+    // ---- numbers in rising order, like ones once
+
+    /** The place, among so many numbers, of the first one that is not less. */
+    private static int placeAmong(int[] numbers, int count, int number) {
+        int low = 0;
+        int high = count;
+        for (int halvings = 0; halvings < 32 && low < high; halvings++) {
+            int middle = low + high >> 1;
+            if (numbers[middle] < number) {
+                low = middle + 1;
+            } else {
+                high = middle;
+            }
+        }
+        return low;
+    }
+
+    /** Answers how many there are then. */
+    private static int putAmong(int[] numbers, int count, int number) {
+        int place = placeAmong(numbers, count, number);
+        if (place < count && numbers[place] == number || count >= numbers.length) {
+            return count;
+        }
+        System.arraycopy(numbers, place, numbers, place + 1, count - place);
+        numbers[place] = number;
+        return count + 1;
     }
 
     // ---- labels and bits
@@ -770,11 +785,11 @@ public final class ObservantYard {
             isFresh = true;
         }
 
-        void takeRow(SortedRow row) {
+        void takeRow(int[] row, int count) {
             int at = start[rowCount];
-            System.arraycopy(row.items, 0, steps, at, row.count);
+            System.arraycopy(row, 0, steps, at, count);
             rowCount++;
-            start[rowCount] = at + row.count;
+            start[rowCount] = at + count;
         }
 
         int width(int state) {
@@ -889,40 +904,6 @@ public final class ObservantYard {
         }
     }
 
-    /** Numbers in rising order, like ones once. */
-    private static final class SortedRow {
-        final int[] items;
-        int count;
-
-        SortedRow(int capacity) {
-            items = new int[capacity];
-        }
-
-        int placeOf(int item) {
-            int low = 0;
-            int high = count;
-            for (int halvings = 0; halvings < 32 && low < high; halvings++) {
-                int middle = low + high >> 1;
-                if (items[middle] < item) {
-                    low = middle + 1;
-                } else {
-                    high = middle;
-                }
-            }
-            return low;
-        }
-
-        void put(int item) {
-            int place = placeOf(item);
-            if (place < count && items[place] == item || count >= items.length) {
-                return;
-            }
-            System.arraycopy(items, place, items, place + 1, count - place);
-            items[place] = item;
-            count++;
-        }
-    }
-
     /** Finds the states of a system and their steps. */
     private static final class Builder {
         private static final int CODE_BITS = 18;
@@ -930,11 +911,14 @@ public final class ObservantYard {
 
         private final Equations equations;
         /** Codes with their numbers in the lowest 8 bits. */
-        private final SortedRow numbers = new SortedRow(MOST_STATES);
+        private final int[] numbers = new int[MOST_STATES];
+        private int numberCount;
         /** Slots with codes: the order in which states are found. */
-        private final SortedRow leads = new SortedRow(MOST_STEPS);
+        private final int[] leads = new int[MOST_STEPS];
+        private int leadCount;
         /** Slots with numbers: the order in which steps are told. */
-        private final SortedRow row = new SortedRow(MOST_STEPS);
+        private final int[] row = new int[MOST_STEPS];
+        private int rowCount;
 
         Builder(Equations equations) {
             this.equations = equations;
@@ -947,10 +931,9 @@ public final class ObservantYard {
             }
             int code = network.firstCode();
             network.beginGraph(code);
-            numbers.count = 0;
-            numbers.put(code << 8);
+            numberCount = putAmong(numbers, 0, code << 8);
             for (int state = 0; state < MOST_STATES && state < network.stateCount && network.fits; state++) {
-                leads.count = 0;
+                leadCount = 0;
                 for (int part = 0; part < network.partCount; part++) {
                     stepAlone(network, network.codes[state], network.shiftOf(part));
                     receiveAlone(network, network.codes[state], network.shiftOf(part));
@@ -962,15 +945,15 @@ public final class ObservantYard {
                 }
                 numberLeads(network);
                 if (network.fits) {
-                    network.takeRow(row);
+                    network.takeRow(row, rowCount);
                 }
             }
         }
 
         private void numberLeads(Network graph) {
-            row.count = 0;
-            for (int at = 0; at < leads.count && graph.fits; at++) {
-                int code = leads.items[at] & CODE_MASK;
+            rowCount = 0;
+            for (int at = 0; at < leadCount && graph.fits; at++) {
+                int code = leads[at] & CODE_MASK;
                 int number = numberOf(code);
                 if (number < 0 && graph.stateCount >= MOST_STATES) {
                     graph.fits = false;
@@ -979,17 +962,17 @@ public final class ObservantYard {
                         number = graph.stateCount;
                         graph.codes[number] = code;
                         graph.stateCount++;
-                        numbers.put(code << 8 | number);
+                        numberCount = putAmong(numbers, numberCount, code << 8 | number);
                     }
-                    row.put(leads.items[at] >> CODE_BITS << 8 | number);
+                    rowCount = putAmong(row, rowCount, leads[at] >> CODE_BITS << 8 | number);
                 }
             }
         }
 
         private int numberOf(int code) {
-            int place = numbers.placeOf(code << 8);
-            if (place < numbers.count && numbers.items[place] >> 8 == code) {
-                return numbers.items[place] & 255;
+            int place = placeAmong(numbers, numberCount, code << 8);
+            if (place < numberCount && numbers[place] >> 8 == code) {
+                return numbers[place] & 255;
             }
             return -1;
         }
@@ -1004,9 +987,10 @@ public final class ObservantYard {
                 int name = equations.valueOf(place, kept);
                 int after = changed(code, shift, equations.nexts[place], kept);
                 if (kind == 't' || kind == 'e' && name == kept) {
-                    leads.put(after);
+                    leadCount = putAmong(leads, leadCount, after);
                 } else if (kind == 'o' && !network.hidden[channel] && !network.hidden[name]) {
-                    leads.put(FIRST_SENDING + NAMES * channel + name << CODE_BITS | after);
+                    int slot = FIRST_SENDING + NAMES * channel + name;
+                    leadCount = putAmong(leads, leadCount, slot << CODE_BITS | after);
                 }
             }
         }
@@ -1021,7 +1005,8 @@ public final class ObservantYard {
                     if (!network.hidden[channel] && !network.hidden[name] && equations.receives(place, name)) {
                         int keptAfter = equations.keptAfter(place, kept, name);
                         int after = changed(code, shift, equations.nexts[place], keptAfter);
-                        leads.put(FIRST_RECEIVING + NAMES * channel + name << CODE_BITS | after);
+                        int slot = FIRST_RECEIVING + NAMES * channel + name;
+                        leadCount = putAmong(leads, leadCount, slot << CODE_BITS | after);
                     }
                 }
             }
@@ -1041,7 +1026,8 @@ public final class ObservantYard {
                     if (equations.channelOf(place, kept) == equations.channelOf(partner, keptThere)
                             && equations.receives(partner, name)) {
                         int keptAfter = equations.keptAfter(partner, keptThere, name);
-                        leads.put(changed(sent, receiver, equations.nexts[partner], keptAfter));
+                        int after = changed(sent, receiver, equations.nexts[partner], keptAfter);
+                        leadCount = putAmong(leads, leadCount, after);
                     }
                 }
             }
@@ -1308,11 +1294,11 @@ public final class ObservantYard {
         private final int[] blockAt = new int[MOST_SIDE_BY_SIDE];
         private final int[] seatOf = new int[MOST_SIDE_BY_SIDE];
         /** For each seat and label the seats on its side that it comes to, with silent steps before and behind. */
-        private final long[] rows = new long[MOST_SIDE_BY_SIDE * SLOTS * WIDE_WORDS];
+        final long[] rows = new long[MOST_SIDE_BY_SIDE * SLOTS * WIDE_WORDS];
         /** The seats on the left, and behind them those on the right. */
         final long[] sides = new long[2 * WIDE_WORDS];
         /** For each seat those that can show, step by step, whatever it can. */
-        private final long[] above = new long[MOST_SIDE_BY_SIDE * WIDE_WORDS];
+        final long[] above = new long[MOST_SIDE_BY_SIDE * WIDE_WORDS];
         /** For each seat those that it is above. */
         final long[] below = new long[MOST_SIDE_BY_SIDE * WIDE_WORDS];
         /** Of those above, the ones on its own side; of some that are just alike the first one is above the others. */
@@ -1321,9 +1307,11 @@ public final class ObservantYard {
         final long[] covering = new long[WIDE_WORDS];
         /** Of those above, the ones on the other side. */
         private final long[] across = new long[MOST_SIDE_BY_SIDE * WIDE_WORDS];
+        /** For each seat a bit for each label that can be shown from it. */
+        final long[] shown = new long[MOST_SIDE_BY_SIDE];
         private final long[] pending = new long[WIDE_WORDS];
         private final long[] able = new long[WIDE_WORDS];
-        private int count;
+        int count;
         int leftCount;
         /** How many words hold a bit for each seat. */
         int words;
@@ -1347,6 +1335,9 @@ public final class ObservantYard {
             Arrays.fill(sides, 0L);
             fillRows(0, leftCount, 0);
             fillRows(leftCount, count, WIDE_WORDS);
+            for (int seat = 0; seat < count; seat++) {
+                shown[seat] = labelsAt(seat);
+            }
             putTwinsAbove();
         }
 
@@ -1484,8 +1475,7 @@ public final class ObservantYard {
             }
         }
 
-        /** A bit for each label that can be shown from a seat. */
-        long labelsAt(int seat) {
+        private long labelsAt(int seat) {
             long result = 0;
             for (int label = 1; label < refiner.labelCount; label++) {
                 if (!isEmpty(rows, rowOf(seat, label), words)) {
@@ -1519,14 +1509,15 @@ public final class ObservantYard {
     private static final class TraceWalk {
         /** So many pairs are looked at without an order of the seats, which is dear. */
         private static final int FEW_PAIRS = 64;
-        /**
-         * So many are kept where most of them have just one way on: then it helps more to keep fewer of these. And
-         * so many, the first ones, are looked through for what they tell together.
-         */
+        /** So many are kept before another manner is tried. */
+        private static final int SOME_PAIRS = 1 << 12;
+        /** So many, the first ones, are looked through for what they tell together. */
         private static final int MANY_PAIRS = 1 << 15;
         /** So many looks at these may be in vain in a go. */
         private static final long FEW_LOOKS = 1L << 26;
-        private static final long MANY_LOOKS = 1L << 30;
+        /** So many looks a dispute may take that comes before pairs have had all the room. */
+        private static final long SHORT_DISPUTE = 1L << 28;
+        private static final long LONG_DISPUTE = 1L << 60;
         private static final long MOST_APART = 1L << 50;
         /** Ages would pass before. */
         private static final long MOST_GOES = 1L << 60;
@@ -1535,8 +1526,7 @@ public final class ObservantYard {
         private static final int UNORDERED = 0;
         private static final int ORDERED = 1;
         private static final int ROOMY = 2;
-        private static final int PATIENT = 3;
-        private static final int FORGETFUL = 4;
+        private static final int FORGETFUL = 3;
 
         private final Refiner refiner;
         private final Seats seats;
@@ -1560,15 +1550,15 @@ public final class ObservantYard {
         private long goesLeft;
         /** Whether no pair was left out, since the beginning, that had not been looked at. */
         private boolean isWhole;
-        /** For each seat a bit for each label that it can show. */
-        private final long[] shown = new long[MOST_SIDE_BY_SIDE];
         /** The pairs of a go; or the sets of a level of rows, and in the other table those of the next one. */
-        private final SetTable kept = new SetTable();
-        private final SetTable keptOther = new SetTable();
+        private final SetTable kept = new SetTable(SetTable.MOST_PLACES);
+        private final SetTable keptOther = new SetTable(SetTable.MANY_PLACES);
+        private final Dispute dispute;
 
         TraceWalk(Refiner refiner) {
             this.refiner = refiner;
             seats = new Seats(refiner);
+            dispute = new Dispute(refiner, seats, kept, keptOther);
         }
 
         /**
@@ -1576,6 +1566,7 @@ public final class ObservantYard {
          * been looked at, or when there is no room to keep more.
          */
         boolean sameRows(int one, int other) {
+            refiner.settle('w', 0, 0);
             if (refiner.blocks[one] == refiner.blocks[other]) {
                 return true;
             }
@@ -1589,7 +1580,7 @@ public final class ObservantYard {
                 if (kept.count == 0) {
                     beginAnew();
                 }
-                looks = manner == PATIENT ? MANY_LOOKS : FEW_LOOKS;
+                looks = FEW_LOOKS;
                 milestonesAhead = 0;
                 for (int at = looked; at < kept.count && at <= mostPairs && hasRoom(); at++) {
                     System.arraycopy(kept.sets, at * seats.words, here, 0, seats.words);
@@ -1601,9 +1592,20 @@ public final class ObservantYard {
                 if (hasRoom() && isWhole) {
                     return true;
                 }
+                if (callsForDispute()) {
+                    int verdict = dispute.decide(manner == ORDERED ? SHORT_DISPUTE : LONG_DISPUTE);
+                    if (verdict != Dispute.OPEN) {
+                        return verdict == Dispute.HOLDS;
+                    }
+                }
                 makeRoom(go);
             }
             return true;
+        }
+
+        /** Claims need far less room than pairs do where most of these have several ways on; on long ways far more. */
+        private boolean callsForDispute() {
+            return milestonesAhead < 0 && (manner == ORDERED || manner == ROOMY);
         }
 
         private void beginAnew() {
@@ -1624,28 +1626,23 @@ public final class ObservantYard {
 
         /**
          * Where most kept pairs are milestones, fewer of these are enough. Where others are, as most pairs have
-         * several ways on, more are kept, and then looked through with more patience. If there is no room for that,
-         * too, the search becomes forgetful.
+         * several ways on, more are kept. If there is no room for that, too, the search becomes forgetful.
          */
         private void makeRoom(long go) {
             if (manner == UNORDERED) {
                 manner = ORDERED;
-                mostPairs = MANY_PAIRS;
+                mostPairs = SOME_PAIRS;
                 seats.putInOrder();
                 kept.count = 0;
-            } else if (manner < FORGETFUL && milestonesAhead >= 0) {
-                thinOut();
-            } else if (manner == ORDERED) {
-                manner = ROOMY;
-                mostPairs = SetTable.MOST_PLACES;
-            } else if (manner == ROOMY) {
-                manner = PATIENT;
-                apart = Math.max(8, apart);
-                kept.count = 0;
-            } else {
-                manner = FORGETFUL;
-                apart = 1;
+            } else if (manner == FORGETFUL) {
                 forget(go);
+            } else if (milestonesAhead >= 0) {
+                thinOut();
+            } else {
+                manner++;
+                mostPairs = SetTable.MOST_PLACES;
+                apart = 1;
+                kept.count = 0;
             }
         }
 
@@ -1797,12 +1794,10 @@ public final class ObservantYard {
 
         /** Each row of labels comes to just one set, so that rows are counted by sets. */
         int rowsOfLength(int state, int length) {
+            refiner.settle('w', 0, 0);
             seats.take(refiner.blocks[state], -1);
-            for (int seat = 0; seat < seats.leftCount; seat++) {
-                shown[seat] = seats.labelsAt(seat);
-            }
             if (length == 1) {
-                return Long.bitCount(shown[0]);
+                return Long.bitCount(seats.shown[0]);
             }
             Arrays.fill(fresh, 0L);
             setBit(fresh, 0, 0);
@@ -1852,7 +1847,7 @@ public final class ObservantYard {
             for (int word = 0; word < seats.words; word++) {
                 long left = after[row + word];
                 for (int turn = 0; turn < 64 && left != 0; turn++) {
-                    labels |= shown[64 * word + lowestBit(left)];
+                    labels |= seats.shown[64 * word + lowestBit(left)];
                     left &= left - 1;
                 }
             }
@@ -1860,21 +1855,287 @@ public final class ObservantYard {
         }
     }
 
+    /**
+     * A dispute over claims, each that what one seat can show the seats of a set can show, too. A claim calls for
+     * others: for each seat to which its own one comes by a label one on what the set comes to. A denial speaks
+     * against claims: it has the most seats that cannot show, even together, all that a seat can. A claim is made on
+     * as few seats of those there are as denials allow. Claims stand if all that they call for stands.
+     */
+    private static final class Dispute {
+        static final int OPEN = 0;
+        static final int HOLDS = 1;
+        static final int FAILS = 2;
+        /** Ages would pass before. */
+        private static final long MOST_TURNS = 1L << 60;
+        private static final int NOTHING = 0;
+        private static final int TO_CHECK = 0;
+        private static final int CHECKED = 1;
+        /** In a chain: what was taken out of it. */
+        private static final int OUT = -1;
+
+        private final Refiner refiner;
+        private final Seats seats;
+        /** Rows of a seat, a set, the next row in the chain of the seat, and whether it is to be checked. */
+        private final SetTable claims;
+        /** Rows of a seat, a set, and the next row in the chain of the seat. */
+        private final SetTable denials;
+        /** Chains have numbers of rows, 1 more each, 0 at their ends. */
+        private final int[] firstClaims = new int[MOST_SIDE_BY_SIDE];
+        private final int[] firstDenials = new int[MOST_SIDE_BY_SIDE];
+        /** For each label the seats that can show it. */
+        private final long[] able = new long[SLOTS * WIDE_WORDS];
+        /** For each seat those that it comes to, by whatever label. */
+        private final long[] ahead = new long[MOST_SIDE_BY_SIDE * WIDE_WORDS];
+        private final long[] after = new long[SLOTS * WIDE_WORDS];
+        /** The row that is being made. */
+        private final long[] made = new long[1 + WIDE_WORDS];
+        private int words;
+        private long looks;
+
+        Dispute(Refiner refiner, Seats seats, SetTable claims, SetTable denials) {
+            this.refiner = refiner;
+            this.seats = seats;
+            this.claims = claims;
+            this.denials = denials;
+        }
+
+        /** Whether both sides can show the same rows; open, if there is no room to tell, or if it takes too many looks. */
+        int decide(long mostLooks) {
+            begin();
+            looks = mostLooks;
+            int verdict = verdictOn(0, seats.leftCount);
+            return verdict == HOLDS ? verdictOn(seats.leftCount, 0) : verdict;
+        }
+
+        private void begin() {
+            words = seats.words;
+            claims.begin(1 + words, 2);
+            denials.begin(1 + words, 1);
+            Arrays.fill(firstClaims, 0);
+            Arrays.fill(firstDenials, 0);
+            Arrays.fill(able, 0L);
+            Arrays.fill(ahead, 0L);
+            for (int seat = 0; seat < seats.count; seat++) {
+                for (int label = 1; label < refiner.labelCount; label++) {
+                    int row = seats.rowOf(seat, label);
+                    unite(ahead, seat * WIDE_WORDS, seats.rows, row, words);
+                    if (!isEmpty(seats.rows, row, words)) {
+                        setBit(able, label * words, seat);
+                    }
+                }
+            }
+        }
+
+        /** Claims are checked round and round until none is to be checked again, or the first one is denied. */
+        private int verdictOn(int seat, int other) {
+            made[0] = seat;
+            Arrays.fill(made, 1, 1 + words, 0L);
+            setBit(made, 1, other);
+            if (isAnswered(seat, made, 1)) {
+                return HOLDS;
+            }
+            if (against(seat, made, 1) != NOTHING) {
+                return FAILS;
+            }
+            int first = claims.put(made, 0);
+            if (first < 0) {
+                return OPEN;
+            }
+            chain(claims, firstClaims, first);
+            int at = first;
+            int calm = 0;
+            for (long turn = 0; turn < MOST_TURNS && calm < claims.count; turn++) {
+                if (looks < 0 || claims.isFull || denials.isFull) {
+                    return OPEN;
+                }
+                if (claims.sets[first * claims.stride + words + 1] == OUT) {
+                    return FAILS;
+                }
+                int row = at * claims.stride + words + 1;
+                calm++;
+                if (claims.sets[row] != OUT && claims.sets[row + 1] == TO_CHECK) {
+                    check(at);
+                    calm = 0;
+                }
+                at = at + 1 < claims.count ? at + 1 : 0;
+            }
+            return HOLDS;
+        }
+
+        /** Makes the claims that one calls for, or denies it, if one of these is denied. */
+        private void check(int number) {
+            int row = number * claims.stride;
+            int seat = (int) claims.sets[row];
+            claims.sets[row + words + 2] = CHECKED;
+            seats.follow(claims.sets, row + 1, after);
+            for (int label = 1; label < refiner.labelCount; label++) {
+                int set = label * words;
+                for (int word = 0; word < words; word++) {
+                    long left = seats.rows[seats.rowOf(seat, label) + word];
+                    for (int turn = 0; turn < 64 && left != 0; turn++) {
+                        int target = 64 * word + lowestBit(left);
+                        left &= left - 1;
+                        if (!isAnswered(target, after, set)) {
+                            int reason = against(target, after, set);
+                            if (reason != NOTHING) {
+                                makeDenial(seat, label, reason);
+                                deny(denials.put(made, 0));
+                                return;
+                            }
+                            makeClaim(target, set);
+                            chain(claims, firstClaims, claims.put(made, 0));
+                        }
+                    }
+                }
+            }
+        }
+
+        /** Whether a seat of the set can follow the seat, step by step, or a claim on some of the set is there. */
+        private boolean isAnswered(int seat, long[] sets, int base) {
+            if (meets(seats.above, seat * WIDE_WORDS, sets, base, words)) {
+                return true;
+            }
+            int claim = firstClaims[seat];
+            for (int turn = 0; turn < claims.count && claim > 0; turn++) {
+                int row = (claim - 1) * claims.stride;
+                if (isWithin(claims.sets, row + 1, sets, base, words)) {
+                    return true;
+                }
+                claim = (int) claims.sets[row + words + 1];
+                looks--;
+            }
+            return false;
+        }
+
+        /** What speaks against a claim: a label of the seat that the set cannot show, below 0, or a denial, 1 more. */
+        private int against(int seat, long[] sets, int base) {
+            for (int label = 1; label < refiner.labelCount; label++) {
+                if ((seats.shown[seat] >>> label & 1) != 0 && !meets(able, label * words, sets, base, words)) {
+                    return -label;
+                }
+            }
+            int denial = firstDenials[seat];
+            for (int turn = 0; turn < denials.count && denial > 0; turn++) {
+                int row = (denial - 1) * denials.stride;
+                if (isWithin(sets, base, denials.sets, row + 1, words)) {
+                    return denial;
+                }
+                denial = (int) denials.sets[row + words + 1];
+                looks--;
+            }
+            return NOTHING;
+        }
+
+        /** A claim on what was come to, without the seats that it can do without. */
+        private void makeClaim(int seat, int set) {
+            made[0] = seat;
+            System.arraycopy(after, set, made, 1, words);
+            for (int each = seats.count - 1; each >= 0; each--) {
+                if (hasBit(made, 1, each)) {
+                    clearBit(made, 1, each);
+                    if (against(seat, made, 1) != NOTHING) {
+                        setBit(made, 1, each);
+                    }
+                }
+            }
+        }
+
+        /** The denial with all seats that come, by the label, to nothing but what the reason speaks against. */
+        private void makeDenial(int seat, int label, int reason) {
+            made[0] = seat;
+            Arrays.fill(made, 1, 1 + words, 0L);
+            for (int each = 0; each < seats.count; each++) {
+                int row = seats.rowOf(each, label);
+                boolean isHelpless = reason < 0
+                        ? !meets(seats.rows, row, able, -reason * words, words)
+                        : isWithin(seats.rows, row, denials.sets, (reason - 1) * denials.stride + 1, words);
+                if (isHelpless) {
+                    setBit(made, 1, each);
+                }
+            }
+        }
+
+        /** Where claims are taken out those that may have called for them are to be checked again. */
+        private void deny(int denial) {
+            int seat = (int) made[0];
+            takeOut(denials, firstDenials, seat);
+            chain(denials, firstDenials, denial);
+            if (takeOut(claims, firstClaims, seat)) {
+                for (int each = 0; each < seats.count; each++) {
+                    if (hasBit(ahead, each * WIDE_WORDS, seat)) {
+                        checkAgain(each);
+                    }
+                }
+            }
+        }
+
+        private void checkAgain(int seat) {
+            int claim = firstClaims[seat];
+            for (int turn = 0; turn < claims.count && claim > 0; turn++) {
+                int row = (claim - 1) * claims.stride + words + 1;
+                claims.sets[row + 1] = TO_CHECK;
+                claim = (int) claims.sets[row];
+                looks--;
+            }
+        }
+
+        /** Puts a row, unless it was left out for want of room, into the chain of its seat. */
+        private void chain(SetTable table, int[] firsts, int number) {
+            if (number >= 0) {
+                int row = number * table.stride;
+                int seat = (int) table.sets[row];
+                table.sets[row + words + 1] = firsts[seat];
+                firsts[seat] = number + 1;
+            }
+        }
+
+        /** Takes out of a chain all rows with sets within the one that is made; whether there was one. */
+        private boolean takeOut(SetTable table, int[] firsts, int seat) {
+            boolean found = false;
+            int before = -1;
+            int number = firsts[seat];
+            for (int turn = 0; turn < table.count && number > 0; turn++) {
+                int row = (number - 1) * table.stride;
+                int next = row + words + 1;
+                number = (int) table.sets[next];
+                if (!isWithin(table.sets, row + 1, made, 1, words)) {
+                    before = next;
+                } else {
+                    found = true;
+                    table.sets[next] = OUT;
+                    if (before < 0) {
+                        firsts[seat] = number;
+                    } else {
+                        table.sets[before] = number;
+                    }
+                }
+                looks--;
+            }
+            return found;
+        }
+    }
+
     /** Sets of seats, like ones once, numbered from 0; each may have a weight behind its words. */
     private static final class SetTable {
-        private static final int FIRST_PLACES = 1 << 9;
-        /** Counting rows needs room for 32 labels three times; a search takes what there is. */
-        static final int MOST_PLACES = 1 << 21;
+        private static final int FIRST_PLACES = 1 << 8;
+        /** Counting rows needs room for 32 labels three times. */
+        static final int MANY_PLACES = 1 << 17;
+        static final int MOST_PLACES = 1 << 20;
 
+        private final int mostPlaces;
         /** Numbers of sets, 1 more each, by their hashes. */
         private int[] places = new int[FIRST_PLACES];
-        /** Always half as many words again as places. */
-        long[] sets = new long[FIRST_PLACES / 2 * 3];
+        /** Always three times as many words as places. */
+        long[] sets = new long[3 * FIRST_PLACES];
         private int setWords;
-        private int stride;
+        int stride;
         int count;
         /** Whether a set was left out for want of room. */
         boolean isFull;
+
+        SetTable(int mostPlaces) {
+            this.mostPlaces = mostPlaces;
+        }
 
         void begin(int wordsOfSet, int wordsOfWeight) {
             setWords = wordsOfSet;
@@ -1890,8 +2151,8 @@ public final class ObservantYard {
 
         /** Answers the number of the set, -1 if it is left out. */
         int put(long[] from, int base) {
-            if (!hasRoom()) {
-                widen();
+            if (!hasRoom() && widen()) {
+                placeAll();
             }
             int place = placeOf(from, base);
             if (places[place] == 0) {
@@ -1933,14 +2194,15 @@ public final class ObservantYard {
             return place;
         }
 
-        private void widen() {
-            if (places.length >= MOST_PLACES) {
-                return;
+        /** Whether it could be done: then all sets are to be placed anew. */
+        private boolean widen() {
+            if (places.length >= mostPlaces) {
+                return false;
             }
-            int room = 16 * places.length;
-            sets = Arrays.copyOf(sets, room / 2 * 3);
+            int room = Math.min(8 * places.length, mostPlaces);
+            sets = Arrays.copyOf(sets, 3 * room);
             places = new int[room];
-            placeAll();
+            return true;
         }
 
         /** Gives each set its place; no two are like. */

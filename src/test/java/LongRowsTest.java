@@ -92,11 +92,11 @@ public final class LongRowsTest {
     }
 
     /**
-     * Branches such as 0o041: agent, kind, channel, value, next. Two systems, each the agents and names of its
-     * parts, and the names that both hide.
+     * Branches such as 0o041: agent, kind, channel, value, next; agent 10 is the sign behind 9. Two systems, each the
+     * agents and names of its parts, and the names that both hide.
      */
     private static ObservantYard dense(String branches, String one, String other, String hidden) {
-        ObservantYard x = Yards.withAgents(9);
+        ObservantYard x = Yards.withAgents(11);
         for (String branch : branches.split(" ")) {
             x.addBranch(branch.charAt(0) - '0', branch.charAt(1), branch.charAt(2) - '0', branch.charAt(3) - '0',
                     branch.charAt(4) - '0');
@@ -115,11 +115,10 @@ public final class LongRowsTest {
 
     /** Asks both ways round, and whether the object has still made no more than there is room for. */
     private static void alike(boolean due, String branches, String one, String other, String hidden) {
-        long before = Yards.bytes();
         ObservantYard x = dense(branches, one, other, hidden);
         Check.is(x.isAlike(0, 1, 't'), due);
         Check.is(x.isAlike(1, 0, 't'), due);
-        Check.is(Yards.bytes() - before < Yards.MOST_BYTES, true);
+        Check.is(Room.made(x) < Room.MOST_ELEMENTS, true);
     }
 
     /** Found, as those below, by a search for systems whose rows come to very many unlike sets of states. */
@@ -129,6 +128,16 @@ public final class LongRowsTest {
         alike(true, "0o122 0o124 0o142 0o241 0o202 0o221 1o125 1o012 1o140 1o214 1o212 1o400 2o411 2o425 2o215 2o002"
                 + " 2o025 2o023 3o113 3o221 3o003 3o241 3o124 3o103 4o114 4o214 4o225 4o041 4t414 4o423 5t123 5o125"
                 + " 5o045 5o210 5o223 5o025", "4211", "4011", "03");
+    }
+
+    /** Far more pairs of sets than there is room for, most of them with several ways on; and yet all rows are the same. */
+    private static void moreRowsThanRoom() {
+        alike(true, "0o402 0o014 0o212 1o142 1o400 1o002 2t003 2o112 2i331 3o100 3o001 3o013 3o132 4o440 4o103 4o031"
+                + " 4o244 4t004 4o030", "302231", "303123", "23");
+        alike(true, "0o00: 0o110 0o409 0o409 0o043 1o012 1o147 1o104 1o005 1o310 1o147 2o012 2o110 2o409 2o409 3o024"
+                + " 3o010 3o111 3o106 4o108 4o00: 4o006 4o117 4o012 4o013 5o111 5o105 5o012 5o009 5o006 5o041 6o005"
+                + " 6o103 6o446 6o118 6o010 7o425 7o016 7o049 7o113 7o001 7o319 8o104 8o040 8o412 8o119 8o113 9o436"
+                + " 9o002 9o311 9o444 9o127 :o131 :o144 :o107 :o414 :o038", "4051", "5101", "23");
     }
 
     private static void manyRowsApart() {
@@ -148,6 +157,7 @@ public final class LongRowsTest {
         if (args.length == 0) {
             waysRound();
             manyRows();
+            moreRowsThanRoom();
         }
         Check.end();
     }

@@ -9,10 +9,8 @@ public final class RoomTest {
     }
 
     private static void anObject() {
-        sixSystems();
-        long before = Yards.bytes();
-        sixSystems();
-        Check.is(Yards.bytes() - before < Yards.MOST_BYTES / 10, true);
+        Check.is(Room.made(new ObservantYard()) < 300000, true);
+        Check.is(Room.made(sixSystems()) < 400000, true);
     }
 
     /** An edit each time makes the graphs stale, so that they are built again. */
@@ -25,6 +23,7 @@ public final class RoomTest {
             call.of(x);
         }
         Check.is(Yards.bytes() - before < HARDLY_ANY, true);
+        Check.is(Room.made(x) < 500000, true);
     }
 
     private static void dearCalls() {

@@ -35,9 +35,6 @@ final class Yards {
     static final Maker NEARLY_FULL = Yards::nearlyFull;
     static final Maker FULL = Yards::full;
 
-    /** Of 7.3 million elements, the room of a run. */
-    static final long MOST_BYTES = 7300000L * 8;
-
     private static final Map<Maker, String> TOLD = new HashMap<>();
 
     private Yards() {
