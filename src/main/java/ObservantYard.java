@@ -1515,9 +1515,9 @@ public final class ObservantYard {
         private static final int MANY_PAIRS = 1 << 15;
         /** So many looks at these may be in vain in a go. */
         private static final long FEW_LOOKS = 1L << 26;
-        /** So many looks a dispute may take that comes before pairs have had all the room. */
+        /** So many looks a dispute may take that comes before pairs have had all the room, and one that comes then. */
         private static final long SHORT_DISPUTE = 1L << 28;
-        private static final long LONG_DISPUTE = 1L << 60;
+        private static final long LONG_DISPUTE = 1L << 32;
         private static final long MOST_APART = 1L << 50;
         /** Ages would pass before. */
         private static final long MOST_GOES = 1L << 60;
@@ -1593,19 +1593,34 @@ public final class ObservantYard {
                     return true;
                 }
                 if (callsForDispute()) {
-                    int verdict = dispute.decide(manner == ORDERED ? SHORT_DISPUTE : LONG_DISPUTE);
+                    int verdict = dispute.decide(looksOfDispute());
                     if (verdict != Dispute.OPEN) {
                         return verdict == Dispute.HOLDS;
                     }
+                    changeManner();
+                } else {
+                    makeRoom(go);
                 }
-                makeRoom(go);
             }
             return true;
         }
 
-        /** Claims need far less room than pairs do where most of these have several ways on; on long ways far more. */
+        /**
+         * Claims need far less room than pairs do where most of these have several ways on; on long ways far more. A
+         * forgetful search gives way to a dispute now and then, when it would begin anew anyhow.
+         */
         private boolean callsForDispute() {
-            return milestonesAhead < 0 && (manner == ORDERED || manner == ROOMY);
+            if (manner == FORGETFUL) {
+                return goesLeft == 0 && (beginnings & beginnings - 1) == 0;
+            }
+            return manner != UNORDERED && milestonesAhead < 0;
+        }
+
+        private long looksOfDispute() {
+            if (manner == FORGETFUL) {
+                return LONG_DISPUTE * beginnings;
+            }
+            return manner == ORDERED ? SHORT_DISPUTE : LONG_DISPUTE;
         }
 
         private void beginAnew() {
@@ -1624,10 +1639,7 @@ public final class ObservantYard {
             return kept.count <= mostPairs && !kept.isFull;
         }
 
-        /**
-         * Where most kept pairs are milestones, fewer of these are enough. Where others are, as most pairs have
-         * several ways on, more are kept. If there is no room for that, too, the search becomes forgetful.
-         */
+        /** Where most kept pairs are milestones, fewer of these are enough. */
         private void makeRoom(long go) {
             if (manner == UNORDERED) {
                 manner = ORDERED;
@@ -1636,14 +1648,17 @@ public final class ObservantYard {
                 kept.count = 0;
             } else if (manner == FORGETFUL) {
                 forget(go);
-            } else if (milestonesAhead >= 0) {
-                thinOut();
             } else {
-                manner++;
-                mostPairs = SetTable.MOST_PLACES;
-                apart = 1;
-                kept.count = 0;
+                thinOut();
             }
+        }
+
+        /** After a dispute, in which nothing of the search is kept: with all the room there is, and then forgetful. */
+        private void changeManner() {
+            manner = manner == ORDERED ? ROOMY : FORGETFUL;
+            mostPairs = SetTable.MOST_PLACES;
+            apart = 1;
+            kept.count = 0;
         }
 
         /** What has been looked at need not be kept; but milestones tell where a way comes to what was walked before. */
@@ -1967,6 +1982,7 @@ public final class ObservantYard {
             int row = number * claims.stride;
             int seat = (int) claims.sets[row];
             claims.sets[row + words + 2] = CHECKED;
+            looks -= seats.rowWords;
             seats.follow(claims.sets, row + 1, after);
             for (int label = 1; label < refiner.labelCount; label++) {
                 int set = label * words;
@@ -1990,18 +2006,29 @@ public final class ObservantYard {
             }
         }
 
-        /** Whether a seat of the set can follow the seat, step by step, or a claim on some of the set is there. */
+        /**
+         * Whether a seat of the set can follow the seat, step by step, or a claim on some of the set is there. Such a
+         * claim is put first in its chain, since it will soon be asked for again.
+         */
         private boolean isAnswered(int seat, long[] sets, int base) {
             if (meets(seats.above, seat * WIDE_WORDS, sets, base, words)) {
                 return true;
             }
+            int before = -1;
             int claim = firstClaims[seat];
             for (int turn = 0; turn < claims.count && claim > 0; turn++) {
                 int row = (claim - 1) * claims.stride;
+                int next = row + words + 1;
                 if (isWithin(claims.sets, row + 1, sets, base, words)) {
+                    if (before >= 0) {
+                        claims.sets[before] = claims.sets[next];
+                        claims.sets[next] = firstClaims[seat];
+                        firstClaims[seat] = claim;
+                    }
                     return true;
                 }
-                claim = (int) claims.sets[row + words + 1];
+                before = next;
+                claim = (int) claims.sets[next];
                 looks--;
             }
             return false;
