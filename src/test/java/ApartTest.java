@@ -1,6 +1,6 @@
 import java.util.Random;
 
-/** Promise 23: random systems that are apart by traces, as the model tells, are told to be apart, whatever the room. */
+/** Promises 23 and 24: random systems and states that are apart by traces, as the model tells, whatever the room. */
 public final class ApartTest {
     private final Random random;
     private final ObservantYard yard = new ObservantYard();
@@ -45,7 +45,21 @@ public final class ApartTest {
         }
         Check.is(yard.isAlike(0, 1, 't'), false);
         Check.is(yard.isAlike(1, 0, 't'), false);
+        statesApart();
         return true;
+    }
+
+    /** What was looked at for one pair of states must be nothing to the next one. */
+    private void statesApart() {
+        int states = model.countStates(0);
+        for (int turn = 0; turn < 8; turn++) {
+            int state = random.nextInt(states);
+            int other = random.nextInt(states);
+            if (!model.areAlike(0, state, other, 't')) {
+                Check.is(yard.areAlike(0, state, other, 't'), false);
+                Check.is(yard.areAlike(0, other, state, 't'), false);
+            }
+        }
     }
 
     public static void main(String[] args) {

@@ -75,6 +75,17 @@ public final class LikenessTest {
         alike(yard("a1, b2, , a4, t2 b2", 0, 3), "---+");
     }
 
+    /** The last of seven states on a round can stop by one label or by another one, whichever is asked first. */
+    private static void lastOfARound() {
+        String round = "a1 b2, a2 b3, a3 b4, a4 b5, a5 b6, a6 b0, a0 b1 c14, ";
+        String other = "a8 b9, a9 b10, a10 b11, a11 b12, a12 b13, a13 b7, a7 b8 ";
+        alike(yard(round + other + "c14, ", 0, 7), "++++");
+        alike(yard(round + other + "d14, ", 0, 7), "----");
+        alike(yard(round + other + "d14, ", 10, 3), "----");
+        alike(yard(round + other + "c14 d14, ", 7, 0), "----");
+        alike(yard(round + other + ", ", 5, 12), "----");
+    }
+
     /** Labels differ by channel, name and direction, and a hidden name has none. */
     private static void alikeByLabels() {
         ObservantYard x = withAgents(6);
@@ -308,6 +319,7 @@ public final class LikenessTest {
     public static void main(String[] args) {
         isAlike();
         silentBehind();
+        lastOfARound();
         alikeByLabels();
         wrongAlike();
         areAlike();
