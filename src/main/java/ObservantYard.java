@@ -1883,14 +1883,20 @@ public final class ObservantYard {
         /** Ages would pass before. */
         private static final long MOST_TURNS = 1L << 60;
         private static final int NOTHING = 0;
-        private static final int TO_CHECK = 0;
-        private static final int CHECKED = 1;
+        /** As what answers: no claim, but a seat that is above. */
+        private static final int ABOVE = -1;
         /** In a chain: what was taken out of it. */
         private static final int OUT = -1;
+        /** All that a claim calls for is there. */
+        private static final long CALM = -1L;
 
         private final Refiner refiner;
         private final Seats seats;
-        /** Rows of a seat, a set, the next row in the chain of the seat, and whether it is to be checked. */
+        /**
+         * Rows of a seat, a set, the next row in the chain of the seat, a bit for each seat to which that one comes
+         * if what the claim calls for there was found, and a bit for each claim that was found. One bit stands for
+         * several seats or claims: then too much is looked for again, and never too little.
+         */
         private final SetTable claims;
         /** Rows of a seat, a set, and the next row in the chain of the seat. */
         private final SetTable denials;
@@ -1924,7 +1930,7 @@ public final class ObservantYard {
 
         private void begin() {
             words = seats.words;
-            claims.begin(1 + words, 2);
+            claims.begin(1 + words, 3);
             denials.begin(1 + words, 1);
             Arrays.fill(firstClaims, 0);
             Arrays.fill(firstDenials, 0);
@@ -1946,7 +1952,7 @@ public final class ObservantYard {
             made[0] = seat;
             Arrays.fill(made, 1, 1 + words, 0L);
             setBit(made, 1, other);
-            if (isAnswered(seat, made, 1)) {
+            if (answerTo(seat, made, 1) != NOTHING) {
                 return HOLDS;
             }
             if (against(seat, made, 1) != NOTHING) {
@@ -1968,7 +1974,7 @@ public final class ObservantYard {
                 }
                 int row = at * claims.stride + words + 1;
                 calm++;
-                if (claims.sets[row] != OUT && claims.sets[row + 1] == TO_CHECK) {
+                if (claims.sets[row] != OUT && claims.sets[row + 1] != CALM) {
                     check(at);
                     calm = 0;
                 }
@@ -1981,9 +1987,11 @@ public final class ObservantYard {
         private void check(int number) {
             int row = number * claims.stride;
             int seat = (int) claims.sets[row];
-            claims.sets[row + words + 2] = CHECKED;
+            int bits = row + words + 2;
+            long calm = claims.sets[bits];
             looks -= seats.rowWords;
             seats.follow(claims.sets, row + 1, after);
+            claims.sets[bits] = CALM;
             for (int label = 1; label < refiner.labelCount; label++) {
                 int set = label * words;
                 for (int word = 0; word < words; word++) {
@@ -1991,15 +1999,20 @@ public final class ObservantYard {
                     for (int turn = 0; turn < 64 && left != 0; turn++) {
                         int target = 64 * word + lowestBit(left);
                         left &= left - 1;
-                        if (!isAnswered(target, after, set)) {
-                            int reason = against(target, after, set);
-                            if (reason != NOTHING) {
-                                makeDenial(seat, label, reason);
-                                deny(denials.put(made, 0));
-                                return;
-                            }
+                        int answer = (calm >>> target & 1) != 0 ? ABOVE : answerTo(target, after, set);
+                        int reason = answer != NOTHING ? NOTHING : against(target, after, set);
+                        if (reason != NOTHING) {
+                            makeDenial(seat, label, reason);
+                            deny(denials.put(made, 0));
+                            return;
+                        }
+                        if (answer == NOTHING) {
                             makeClaim(target, set);
-                            chain(claims, firstClaims, claims.put(made, 0));
+                            answer = 1 + claims.put(made, 0);
+                            chain(claims, firstClaims, answer - 1);
+                        }
+                        if (answer > 0) {
+                            claims.sets[bits + 1] |= 1L << answer;
                         }
                     }
                 }
@@ -2007,12 +2020,12 @@ public final class ObservantYard {
         }
 
         /**
-         * Whether a seat of the set can follow the seat, step by step, or a claim on some of the set is there. Such a
-         * claim is put first in its chain, since it will soon be asked for again.
+         * The number of a claim on the seat and some of the set, 1 more, if there is one, unless a seat of the set is
+         * above. The claim is put first in its chain, since it will soon be asked for again.
          */
-        private boolean isAnswered(int seat, long[] sets, int base) {
+        private int answerTo(int seat, long[] sets, int base) {
             if (meets(seats.above, seat * WIDE_WORDS, sets, base, words)) {
-                return true;
+                return ABOVE;
             }
             int before = -1;
             int claim = firstClaims[seat];
@@ -2025,13 +2038,13 @@ public final class ObservantYard {
                         claims.sets[next] = firstClaims[seat];
                         firstClaims[seat] = claim;
                     }
-                    return true;
+                    return claim;
                 }
                 before = next;
                 claim = (int) claims.sets[next];
                 looks--;
             }
-            return false;
+            return NOTHING;
         }
 
         /** What speaks against a claim: a label of the seat that the set cannot show, below 0, or a denial, 1 more. */
@@ -2082,26 +2095,27 @@ public final class ObservantYard {
             }
         }
 
-        /** Where claims are taken out those that may have called for them are to be checked again. */
+        /** Claims that called for those that are taken out have to find others. */
         private void deny(int denial) {
             int seat = (int) made[0];
             takeOut(denials, firstDenials, seat);
             chain(denials, firstDenials, denial);
-            if (takeOut(claims, firstClaims, seat)) {
-                for (int each = 0; each < seats.count; each++) {
-                    if (hasBit(ahead, each * WIDE_WORDS, seat)) {
-                        checkAgain(each);
-                    }
+            long lost = takeOut(claims, firstClaims, seat);
+            for (int each = 0; each < seats.count && lost != 0; each++) {
+                if (hasBit(ahead, each * WIDE_WORDS, seat)) {
+                    checkAgain(each, seat, lost);
                 }
             }
         }
 
-        private void checkAgain(int seat) {
+        private void checkAgain(int seat, int target, long lost) {
             int claim = firstClaims[seat];
             for (int turn = 0; turn < claims.count && claim > 0; turn++) {
-                int row = (claim - 1) * claims.stride + words + 1;
-                claims.sets[row + 1] = TO_CHECK;
-                claim = (int) claims.sets[row];
+                int next = (claim - 1) * claims.stride + words + 1;
+                if ((claims.sets[next + 2] & lost) != 0) {
+                    claims.sets[next + 1] &= ~(1L << target);
+                }
+                claim = (int) claims.sets[next];
                 looks--;
             }
         }
@@ -2116,29 +2130,30 @@ public final class ObservantYard {
             }
         }
 
-        /** Takes out of a chain all rows with sets within the one that is made; whether there was one. */
-        private boolean takeOut(SetTable table, int[] firsts, int seat) {
-            boolean found = false;
+        /** Takes out of a chain all rows with sets within the one that is made; answers the bits of their numbers. */
+        private long takeOut(SetTable table, int[] firsts, int seat) {
+            long taken = 0;
             int before = -1;
             int number = firsts[seat];
             for (int turn = 0; turn < table.count && number > 0; turn++) {
                 int row = (number - 1) * table.stride;
                 int next = row + words + 1;
-                number = (int) table.sets[next];
+                int behind = (int) table.sets[next];
                 if (!isWithin(table.sets, row + 1, made, 1, words)) {
                     before = next;
                 } else {
-                    found = true;
+                    taken |= 1L << number;
                     table.sets[next] = OUT;
                     if (before < 0) {
-                        firsts[seat] = number;
+                        firsts[seat] = behind;
                     } else {
-                        table.sets[before] = number;
+                        table.sets[before] = behind;
                     }
                 }
+                number = behind;
                 looks--;
             }
-            return found;
+            return taken;
         }
     }
 
